@@ -602,14 +602,13 @@ public final class TicketGate {
          * name, if they are not 1 to 4 letters.
          */
         int nameBetween(int from, int to) {
-            if (to - from > MAX_NAME || endOfRun(from, 'a', 'z') < to) {
-                return 0;
-            }
+            boolean good = to - from <= MAX_NAME;
             int name = 0;
-            for (int i = from; i < to; i++) {
+            for (int i = from; good && i < to; i++) {
+                good = at(i) >= 'a' && at(i) <= 'z';
                 name = name << 8 | at(i);
             }
-            return name;
+            return good ? name : 0;
         }
 
         /** Stops growing far above every range, so that a number of any length fits. */
@@ -631,7 +630,7 @@ public final class TicketGate {
     }
 
     /** Rows of numbers. A cell outside of the rows reads as 0, so no index can go wrong. */
-    private static class Table {
+    private abstract static class Table {
         private final int limit;
         private final int width;
         private final int[] cells;
@@ -720,7 +719,6 @@ public final class TicketGate {
     private static final class Realms extends Table {
         static final int NAME = 0, LIFETIME = 1, RENEWAL = 2, OFFSET = 3, TRUSTED = 4;
         private static final int WIDTH = 5;
-        private static final int NO_WAY = 1000;
 
         Realms() {
             super(MAX_REALMS, WIDTH);
@@ -776,40 +774,51 @@ public final class TicketGate {
         }
 
         int countDistanceErrors() {
-            Table ways = waysByHalfway();
+            Ways ways = new Ways();
+            ways.addDirect(this);
+            for (int half = 0; half < size(); half++) {
+                ways.goThrough(half);
+            }
             int errors = 0;
             for (int from = 0; from < size(); from++) {
                 for (int to = 0; to < size(); to++) {
-                    int way = ways.get(from, to) >= NO_WAY ? NONE : ways.get(from, to);
-                    errors += way == referrals(from, to) ? 0 : 1;
+                    errors += ways.lengthOf(from, to) == referrals(from, to) ? 0 : 1;
                 }
             }
             return errors;
         }
+    }
 
-        private Table waysByHalfway() {
-            Table ways = directWays();
-            for (int half = 0; half < size(); half++) {
-                for (int from = 0; from < size(); from++) {
-                    for (int to = 0; to < size(); to++) {
-                        int way = ways.get(from, half) + ways.get(half, to);
-                        ways.set(from, to, Math.min(way, ways.get(from, to)));
-                    }
-                }
-            }
-            return ways;
+    /** The lengths of the ways between realms once more, found by going through halfway realms. */
+    private static final class Ways extends Table {
+        private static final int NO_WAY = 1000;
+
+        Ways() {
+            super(MAX_REALMS, MAX_REALMS);
         }
 
-        private Table directWays() {
-            Table ways = new Table(MAX_REALMS, MAX_REALMS);
-            for (int from = 0; from < size(); from++) {
-                ways.addRow();
-                for (int to = 0; to < size(); to++) {
-                    int way = hasTrust(from, to) ? 1 : NO_WAY;
-                    ways.set(from, to, from == to ? 0 : way);
+        void addDirect(Realms realms) {
+            for (int from = 0; from < realms.size(); from++) {
+                addRow();
+                for (int to = 0; to < realms.size(); to++) {
+                    int length = realms.hasTrust(from, to) ? 1 : NO_WAY;
+                    set(from, to, from == to ? 0 : length);
                 }
             }
-            return ways;
+        }
+
+        void goThrough(int half) {
+            for (int from = 0; from < size(); from++) {
+                for (int to = 0; to < size(); to++) {
+                    int length = get(from, half) + get(half, to);
+                    set(from, to, Math.min(length, get(from, to)));
+                }
+            }
+        }
+
+        int lengthOf(int from, int to) {
+            int length = get(from, to);
+            return length >= NO_WAY ? NONE : length;
         }
     }
 

@@ -90,6 +90,11 @@ public final class CountsTest {
         Check.same("the last minute", gate.bestTicket(0, 0), 3);
         gate.pass(1);
         Check.same("not valid any more", gate.bestTicket(0, 0), TicketGate.NONE);
+        gate.undo();
+        gate.drop(0);
+        gate.drop(1);
+        gate.drop(2);
+        Check.same("the first of all", gate.bestTicket(0, 0), 3);
         Check.fails("no user", Check.INDEX, () -> gate.bestTicket(2, 0));
         Check.fails("no user", Check.INDEX, () -> gate.bestTicket(-1, 0));
         Check.fails("no service", Check.INDEX, () -> gate.bestTicket(0, 2));
@@ -104,7 +109,9 @@ public final class CountsTest {
         Check.same("two", gate.useCount(), 2);
         gate.pass(1);
         gate.cheese(1);
+        Check.same("v has asked for none", gate.cheeseRefusal(4), 0);
         gate.cheese(4);
+        Check.same("v has", gate.cheeseRefusal(4), 4);
         Check.same("four", gate.useCount(), 4);
         gate.pass(1);
         Check.same("as many minutes as the tolerance", gate.useCount(), 4);

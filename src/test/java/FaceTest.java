@@ -6,13 +6,16 @@ import java.nio.file.Files;
 import java.nio.file.Path;
 import java.util.Arrays;
 import java.util.TreeSet;
+import java.util.regex.Matcher;
+import java.util.regex.Pattern;
+import java.util.stream.Collectors;
 
 /** The face is the document's: its lines of methods and constants, and no other open member. */
 public final class FaceTest {
     public static void main(String[] args) throws Exception {
         members();
         constants();
-        throwsClauses();
+        asInTheDocument();
         rules();
         Check.end();
     }
@@ -58,21 +61,30 @@ public final class FaceTest {
         Check.same("FOR_SERVICE", TicketGate.FOR_SERVICE, 1);
     }
 
-    private static void throwsClauses() throws Exception {
-        clause("appendInput", "IllegalStateException", int.class, int.class, int.class, int.class, int.class);
-        clause("login", "IndexOutOfBoundsException IllegalArgumentException IllegalStateException", int.class, int.class, boolean.class);
-        clause("refer", "NoSuchElementException IndexOutOfBoundsException IllegalStateException", int.class, int.class);
-        clause("restore", "IndexOutOfBoundsException IllegalStateException", int.class);
-        clause("undo", "IllegalStateException");
-        clause("sweep", "");
+    /** Each line of "The public face" names its answer, name, arguments and throws clause. */
+    private static void asInTheDocument() throws Exception {
+        TreeSet<String> due = new TreeSet<>();
+        Pattern line = Pattern.compile("    public (\\w+) (\\w+)\\((.*)\\)( throws .*)?;");
+        for (String text : Files.readAllLines(Path.of("../shared/DOC.md"))) {
+            Matcher found = line.matcher(text);
+            if (found.matches()) {
+                String takes = found.group(3).replaceAll(" \\w+(, |$)", "$1");
+                String clause = found.group(4) == null ? "" : found.group(4).substring(" throws ".length());
+                due.add(found.group(1) + " " + found.group(2) + "(" + takes + ") " + clause);
+            }
+        }
+        TreeSet<String> got = new TreeSet<>();
+        for (Method method : TicketGate.class.getDeclaredMethods()) {
+            if (Modifier.isPublic(method.getModifiers())) {
+                got.add(method.getReturnType() + " " + method.getName() + "(" + names(method.getParameterTypes()) + ") "
+                        + names(method.getExceptionTypes()));
+            }
+        }
+        Check.same("the face", got, due);
     }
 
-    private static void clause(String name, String kinds, Class<?>... takes) throws Exception {
-        StringBuilder found = new StringBuilder();
-        for (Class<?> kind : TicketGate.class.getMethod(name, takes).getExceptionTypes()) {
-            found.append(found.length() == 0 ? "" : " ").append(kind.getSimpleName());
-        }
-        Check.same("throws of " + name, found.toString(), kinds);
+    private static String names(Class<?>[] types) {
+        return Arrays.stream(types).map(Class::getSimpleName).collect(Collectors.joining(", "));
     }
 
     /** Some of LANGUAGE.md that a look at the text can tell. */

@@ -86,7 +86,7 @@ public final class LoadTest {
             "service 1 a 7;|8", "service t 1 7;|10", "service t a x;|12", "service t a 7 7;|14", "login 1 7;|6",
             "login u u;|8", "login u 7 renew;|10", "login u 7 renewable renewable;|20", "login u 7 renewables;|10",
             "login u 7 0;|10", "refer u b;|6", "request u s;|8", "renew u;|6", "cheese u;|7", "drop u;|5",
-            "sweep 0;|6", "pass u;|5", "pass 1 1;|7", "pass;|4", "sweep:|5", "loginu 7;|0", "trust a %;|8"}) {
+            "sweep 0;|6", "pass u;|5", "pass 1 1;|7", "pass;|4", "sweep:|5", "loginu 7;|0", "xogin u 7;|0", "logix u 7;|0", "login u 7 xenewable;|10", "trust a %;|8"}) {
             rest(rest, 1);
         }
         rest("login u 7;refer 0 1;|18", 1);

@@ -32,7 +32,6 @@ public final class ModelTest {
         TicketGate gate = new TicketGate();
         Model model = new Model();
         StringBuilder story = new StringBuilder(name);
-        int[] calls = {0};
         for (int i = 0; i < CALLS; i++) {
             boolean same = random.nextInt(40) == 0 ? text(random, gate, model, story) : step(random, gate, model, story);
             if (!same) {
@@ -40,7 +39,6 @@ public final class ModelTest {
                 System.out.println(story.substring(Math.max(0, story.length() - 1500)));
                 return;
             }
-            calls[0]++;
         }
     }
 

@@ -46,6 +46,10 @@ public final class RealmsTest {
                 + "realm e 1 1 even;trust e d;trust d c;trust c b;trust b a;");
         Check.same("the longest way", line.distance(4, 0), 4);
         Check.same("its first realm", line.nextRealm(4, 0), 3);
+        Check.same("no next realm back", line.nextRealm(0, 4), TicketGate.NONE);
+        TicketGate hub = Check.loaded("gate 0 0;realm a 1 0 even;realm b 2 0 even;realm c 3 0 even;trust a b;trust b a;");
+        Check.same("to itself, and trusted by another one", hub.nextRealm(0, 0), TicketGate.NONE);
+        Check.same("to one that nobody trusts", hub.nextRealm(0, 2), TicketGate.NONE);
         Check.same("no way back", line.distance(0, 4), TicketGate.NONE);
     }
 
