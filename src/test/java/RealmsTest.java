@@ -34,6 +34,7 @@ public final class RealmsTest {
         Check.same("b a next", gate.nextRealm(1, 0), TicketGate.NONE);
         Check.same("a c", gate.distance(0, 2), TicketGate.NONE);
         Check.same("a c next", gate.nextRealm(0, 2), TicketGate.NONE);
+        Check.same("a a next, without a way back", gate.nextRealm(0, 0), TicketGate.NONE);
         Check.same("c c", gate.distance(2, 2), 0);
         Check.same("c c next", gate.nextRealm(2, 2), TicketGate.NONE);
         Check.same("b a trust", gate.trusts(1, 0), false);
