@@ -12,14 +12,20 @@ final class Check {
     }
 
     private static int wrong = 0;
+    private static String topic = "";
 
     private Check() {
+    }
+
+    /** What the next answers are about; it is printed before those that are not as due. */
+    static void topic(String text) {
+        topic = text;
     }
 
     static void same(String what, Object got, Object want) {
         if (!got.equals(want)) {
             wrong++;
-            System.out.println(what + ": answered " + got + ", due is " + want);
+            System.out.println(topic + what + ": answered " + got + ", due is " + want);
         }
     }
 
