@@ -681,8 +681,9 @@ public final class TicketGate {
                 return;
             }
             for (int place = row * width; place < (rows - 1) * width; place++) {
-                if (place >= 0 && place + width >= 0 && place + width < cells.length) {
-                    cells[place] = cells[place + width];
+                int next = place + width;
+                if (place >= 0 && place < cells.length && next >= 0 && next < cells.length) {
+                    cells[place] = cells[next];
                 }
             }
             rows--;
@@ -1231,7 +1232,6 @@ public final class TicketGate {
             end = 0;
             error = 0;
             errorAt = NONE;
-            draft.begin(0, 0);
             take();
             readGate();
             for (int i = 0; i < MAX_INPUT && error == 0 && kind != END; i++) {

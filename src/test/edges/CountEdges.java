@@ -153,6 +153,10 @@ final class CountEdges {
             Check.same("of u for s", gate.bestTicket(0, 0), 3);
             Check.same("of v for s", gate.bestTicket(1, 0), TicketGate.NONE);
             Check.same("of u for t", gate.bestTicket(0, 1), TicketGate.NONE);
+            gate.drop(0);
+            Check.same("the first of all tickets", gate.bestTicket(1, 1), 1);
+            gate.drop(2);
+            Check.same("the last of all tickets", gate.bestTicket(0, 0), 3);
             Check.same("of no tickets", Check.loaded(HEAD).bestTicket(0, 0), TicketGate.NONE);
             Check.same("of a gate ticket", Check.loaded(HEAD + "login u 7;").bestTicket(0, 0), TicketGate.NONE);
         });

@@ -258,6 +258,18 @@ final class TermsEdges {
             Check.fails("wrong password", Check.STATE, () -> gate.login(0, 8, false));
             Check.same("a refused login draws none", gate.seed(), 1023);
         });
+        Edge.of("Section 2", "To make a ticket draws a key: the seed becomes (21 * seed + 7) modulo 1024, and the key is the new seed.", () -> {
+            TicketGate gate = Check.loaded(HEAD + "login u 7;request 0 s;");
+            int seed = gate.seed();
+            gate.cheese(1);
+            gate.drop(1);
+            gate.setPassword(0, 8);
+            gate.setClock(0, 1);
+            gate.pass(10);
+            gate.sweep();
+            gate.save(0);
+            Check.same("calls that make none draw none", gate.seed(), seed);
+        });
         Edge.of("Section 2", "The start is the time.", () -> {
             TicketGate gate = Check.loaded(HEAD + "trust a b;login u 7;pass 9;refer 0 b;request 0 s;login u 7;");
             Check.same("at the time 0", gate.startOf(0), 0);

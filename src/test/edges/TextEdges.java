@@ -17,6 +17,7 @@ final class TextEdges {
         statementsOfTickets();
         order();
         positions();
+        notAllowed();
         codes();
         lateCodes();
     }
@@ -270,6 +271,48 @@ final class TextEdges {
             rest("realm c 1 1 fast|16", 1);
             rest("gate|0", 1);
         });
+    }
+
+    /** Each token of each statement, and the text behind it, is put in the wrong place once. */
+    private static void notAllowed() {
+        Edge.of("Section 5 code 1", "the token is not allowed here, or the text ends too early (also an empty text)", () -> {
+            wrongTokens("", "gate 2 5 ;");
+            String head = HEAD + "trust a b;login u 7 renewable;request 0 s;pass 1;";
+            for (String statement : new String[] {"realm c 1 1 even ;", "realm c 1 1 fast 1 ;", "trust b a ;", "user v a 7 even ;",
+                "user v a 7 slow 1 ;", "service t a 7 ;", "login u 7 ;", "login u 7 renewable ;", "refer 0 b ;", "request 0 s ;",
+                "renew 0 ;", "cheese 1 ;", "drop 0 ;", "sweep ;", "pass 5 ;"}) {
+                Check.same(statement, Check.answer(() -> Check.load(new TicketGate(), head + statement)) instanceof Integer, true);
+                wrongTokens(head, statement);
+            }
+        });
+    }
+
+    private static void wrongTokens(String head, String statement) {
+        String[] tokens = statement.split(" ");
+        StringBuilder before = new StringBuilder(head);
+        for (int i = 0; i < tokens.length; i++) {
+            for (String wrong : wrongFor(tokens[i])) {
+                Check.error(before + wrong + " ;", 1, before.length());
+            }
+            if (i > 0 || head.isEmpty()) {
+                Check.error(before.toString(), 1, before.length());
+            }
+            before.append(tokens[i]).append(' ');
+        }
+    }
+
+    private static String[] wrongFor(String token) {
+        if (token.equals(";")) {
+            return new String[] {"?", "x", "7", ":", "even"};
+        }
+        if (token.matches("\\d+")) {
+            return new String[] {"?", "x", ";", "-1", "even"};
+        }
+        if (token.length() == 1) {
+            return new String[] {"?", "7", ";", "A"};
+        }
+        return new String[] {"?", "7", token.equals("renewable") ? "renew" : ";", "x" + token.substring(1), token + "s",
+            token.substring(0, token.length() - 1), token.toUpperCase()};
     }
 
     private static void codes() {

@@ -178,7 +178,9 @@ final class WorldEdges {
             Check.same("both the same, with a way around", ring.nextRealm(0, 0), TicketGate.NONE);
             Check.same("both the same, without trust", ring.nextRealm(4, 4), TicketGate.NONE);
             Check.same("no way", ring.nextRealm(0, 4), TicketGate.NONE);
-            Check.same("no way back", Check.loaded(FIVE + "trust a b;").nextRealm(1, 0), TicketGate.NONE);
+            TicketGate there = Check.loaded(FIVE + "trust a b;");
+            Check.same("no way back", there.nextRealm(1, 0), TicketGate.NONE);
+            Check.same("both the same, without a way back", there.nextRealm(0, 0), TicketGate.NONE);
         });
     }
 
