@@ -17,11 +17,11 @@ final class ActionEdges {
         passBounds();
     }
 
-    private static TicketGate three() {
+    private static Gate three() {
         return Check.loaded(HEAD + "login u 7;request 0 s;login v 0;");
     }
 
-    private static String numbers(TicketGate gate) {
+    private static String numbers(Gate gate) {
         StringBuilder text = new StringBuilder();
         for (int i = 0; i < gate.ticketCount(); i++) {
             text.append(gate.ticketAt(i)).append(' ');
@@ -34,19 +34,19 @@ final class ActionEdges {
             int[] dropped = {0, 1, 2};
             String[] left = {"1 2", "0 2", "0 1"};
             for (int i = 0; i < dropped.length; i++) {
-                TicketGate gate = three();
+                Gate gate = three();
                 gate.drop(dropped[i]);
                 Check.same("without " + dropped[i], numbers(gate), left[i]);
             }
-            TicketGate gate = three();
+            Gate gate = three();
             gate.drop(0);
             Check.same("a ticket made with it stays", gate.cheeseRefusal(1), 0);
-            TicketGate ended = three();
+            Gate ended = three();
             ended.pass(10);
             Check.same("one that is not valid", ended.drop(0), 2);
         });
         Edge.of("Promise 56", "Returns the number of tickets afterwards.", () -> {
-            TicketGate gate = Check.loaded(HEAD + "login u 7;".repeat(24));
+            Gate gate = Check.loaded(HEAD + "login u 7;".repeat(24));
             for (int left = 23; left >= 0; left--) {
                 Check.same("left", gate.drop(left), left);
             }
@@ -56,7 +56,7 @@ final class ActionEdges {
 
     private static void sweep() {
         Edge.of("Promise 57", "All tickets that are not valid are swept away.", () -> {
-            TicketGate gate = Check.loaded(HEAD + "login u 7;login v 0;login u 7;login v 0;login u 7;pass 9;");
+            Gate gate = Check.loaded(HEAD + "login u 7;login v 0;login u 7;login v 0;login u 7;pass 9;");
             gate.sweep();
             Check.same("a minute before their end", numbers(gate), "0 1 2 3 4");
             gate.pass(1);
@@ -71,7 +71,7 @@ final class ActionEdges {
         });
         Edge.of("Promise 57", "Returns the number of tickets that were swept away.", () -> {
             Check.same("of none", Check.loaded(HEAD).sweep(), 0);
-            TicketGate gate = Check.loaded(HEAD + "login u 7;".repeat(24));
+            Gate gate = Check.loaded(HEAD + "login u 7;".repeat(24));
             Check.same("of 24 valid ones", gate.sweep(), 0);
             gate.pass(10);
             Check.same("of 24 that are not", gate.sweep(), 24);
@@ -81,14 +81,14 @@ final class ActionEdges {
 
     private static void setPassword() {
         Edge.of("Promise 58", "Sets the password of a user.", () -> {
-            TicketGate gate = three();
+            Gate gate = three();
             gate.setPassword(0, 8);
             Check.same("the new one is right", gate.loginRefusal(0, 8), 0);
             Check.same("the old one is wrong", gate.loginRefusal(0, 7), 1);
             Check.same("that of the other user stays", gate.loginRefusal(1, 0), 0);
         });
         Edge.of("Promise 58", "Tickets stay as they are.", () -> {
-            TicketGate gate = three();
+            Gate gate = three();
             gate.setPassword(0, 8);
             Check.same("all are there", numbers(gate), "0 1 2");
             Check.same("and valid", gate.validTickets(), 3);
@@ -97,7 +97,7 @@ final class ActionEdges {
             Check.same("for a cheese", gate.cheese(1), 1);
         });
         Edge.of("Promise 58", "Returns the former password.", () -> {
-            TicketGate gate = three();
+            Gate gate = three();
             Check.same("of the text", gate.setPassword(0, 9999), 7);
             Check.same("the greatest", gate.setPassword(0, 0), 9999);
             Check.same("the least", gate.setPassword(0, 0), 0);
@@ -108,7 +108,7 @@ final class ActionEdges {
 
     private static void passwordBounds() {
         Edge.of("Promise 58", "- `password`: a password, 0 to 9999", () -> {
-            TicketGate gate = three();
+            Gate gate = three();
             gate.setPassword(0, 0);
             Check.same("the least can be used", gate.loginRefusal(0, 0), 0);
             gate.setPassword(0, 9999);
@@ -121,7 +121,7 @@ final class ActionEdges {
 
     private static void setClock() {
         Edge.of("Promise 59", "Sets the offset of the clock of a user.", () -> {
-            TicketGate gate = three();
+            Gate gate = three();
             gate.setClock(0, 9);
             Check.same("9", gate.skew(0, 0), 9);
             Check.same("the other user's stays", gate.skew(1, 0), 0);
@@ -136,7 +136,7 @@ final class ActionEdges {
             Check.same("a use keeps its time", gate.cheeseRefusal(1), 4);
         });
         Edge.of("Promise 59", "Returns the former offset.", () -> {
-            TicketGate gate = Check.loaded("gate 9 5;realm a 1 0 even;user u a 7 slow 9;user v a 7 fast 9;");
+            Gate gate = Check.loaded("gate 9 5;realm a 1 0 even;user u a 7 slow 9;user v a 7 fast 9;");
             Check.same("the least", gate.setClock(0, 9), -9);
             Check.same("the greatest", gate.setClock(0, 9), 9);
             Check.same("the same", gate.setClock(0, 0), 9);
@@ -148,7 +148,7 @@ final class ActionEdges {
     private static void clockBounds() {
         Edge.of("Promise 59", "- `offset`: an offset, -9 to 9", () -> {
             for (int offset = -9; offset <= 9; offset++) {
-                TicketGate gate = three();
+                Gate gate = three();
                 Check.same("it was 0", gate.setClock(0, offset), 0);
                 Check.same("it is " + offset, gate.setClock(0, 0), offset);
             }
@@ -160,7 +160,7 @@ final class ActionEdges {
 
     private static void pass() {
         Edge.of("Promise 60", "Minutes pass.", () -> {
-            TicketGate gate = Check.loaded("gate 2 5;realm a 10 20 slow 2;user u a 7 even;service s a 9;login u 7;request 0 s;cheese 1;");
+            Gate gate = Check.loaded("gate 2 5;realm a 10 20 slow 2;user u a 7 even;service s a 9;login u 7;request 0 s;cheese 1;");
             gate.pass(1);
             Check.same("the time", gate.time(), 1);
             Check.same("the clock of a realm", gate.clockOf(0), -1);
@@ -174,13 +174,13 @@ final class ActionEdges {
         });
         Edge.of("Promise 60", "Returns the number of tickets that were valid before and are not valid any more.", () -> {
             Check.same("of none", Check.loaded(HEAD).pass(999), 0);
-            TicketGate gate = Check.loaded(HEAD + "login u 7;".repeat(23) + "login v 0;");
+            Gate gate = Check.loaded(HEAD + "login u 7;".repeat(23) + "login v 0;");
             Check.same("to a minute before the end", gate.pass(9), 0);
             Check.same("to the end", gate.pass(1), 23);
             Check.same("they were not valid before", gate.pass(1), 0);
             Check.same("the last one", gate.pass(999), 1);
             Check.same("none is left", gate.pass(999), 0);
-            TicketGate most = Check.loaded(HEAD + "login v 0;".repeat(24));
+            Gate most = Check.loaded(HEAD + "login v 0;".repeat(24));
             Check.same("998 minutes", most.pass(998), 0);
             most.undo();
             Check.same("999 minutes", most.pass(999), 24);
@@ -189,15 +189,15 @@ final class ActionEdges {
 
     private static void passBounds() {
         Edge.of("Promise 60", "- `minutes`: a number of minutes, 1 to 999", () -> {
-            TicketGate gate = three();
+            Gate gate = three();
             gate.pass(1);
             Check.same("the least", gate.time(), 1);
             gate.pass(999);
             Check.same("the greatest", gate.time(), 1000);
         });
         Edge.of("Promise 60", "Throws `IllegalArgumentException` if the number is out of range", () ->
-            Bounds.ranged(ActionEdges::three, 1, 999, Check.ARGUMENT, TicketGate::pass));
+            Bounds.ranged(ActionEdges::three, 1, 999, Check.ARGUMENT, Gate::pass));
         Edge.of("Promise 60", "Throws `IllegalArgumentException` if the number is out of range", () ->
-            Twin.refuses("0, which a text may say", Check.ARGUMENT, TicketGate::new, gate -> gate.pass(0)));
+            Twin.refuses("0, which a text may say", Check.ARGUMENT, Gate::new, gate -> gate.pass(0)));
     }
 }

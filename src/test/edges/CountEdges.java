@@ -28,7 +28,7 @@ final class CountEdges {
     private static void validTickets() {
         Edge.of("Promise 41", "Returns the number of valid tickets.", () -> {
             Check.same("of none", Check.loaded(HEAD).validTickets(), 0);
-            TicketGate gate = Check.loaded(HEAD + "login u 7;".repeat(24));
+            Gate gate = Check.loaded(HEAD + "login u 7;".repeat(24));
             Check.same("of 24", gate.validTickets(), 24);
             gate.pass(9);
             Check.same("a minute before their end", gate.validTickets(), 24);
@@ -43,7 +43,7 @@ final class CountEdges {
 
     private static void validAfter() {
         Edge.of("Promise 42", "Returns the number of tickets that are valid after these minutes.", () -> {
-            TicketGate gate = Check.loaded(HEAD + "login u 7;login v 7;pass 3;login u 7 renewable;");
+            Gate gate = Check.loaded(HEAD + "login u 7;login v 7;pass 3;login u 7 renewable;");
             int[] minutes = {0, 6, 7, 9, 10, 995, 996, 999};
             int[] valid = {3, 3, 2, 2, 1, 1, 0, 0};
             for (int i = 0; i < minutes.length; i++) {
@@ -52,7 +52,7 @@ final class CountEdges {
             Check.same("of none", Check.loaded(HEAD).validAfter(0), 0);
         });
         Edge.of("Promise 42", "- `minutes`: a number of minutes, 0 to 999", () -> {
-            TicketGate gate = Check.loaded(HEAD + "login v 7;");
+            Gate gate = Check.loaded(HEAD + "login v 7;");
             Check.same("the least", gate.validAfter(0), 1);
             Check.same("a minute before its end", gate.validAfter(998), 1);
             Check.same("the most, at its end", gate.validAfter(999), 0);
@@ -63,12 +63,12 @@ final class CountEdges {
             Check.same("one less", gate.validAfter(998), 1);
         });
         Edge.of("Promise 42", "Throws `IllegalArgumentException` if the number is out of range", () ->
-            Bounds.ranged(TicketGate::new, 0, 999, Check.ARGUMENT, TicketGate::validAfter));
+            Bounds.ranged(Gate::new, 0, 999, Check.ARGUMENT, Gate::validAfter));
     }
 
     private static void shortWaits() {
         Edge.of("Promise 43", WAIT, () -> {
-            TicketGate gate = Check.loaded(HEAD + "login u 7;request 0 s;pass 8;");
+            Gate gate = Check.loaded(HEAD + "login u 7;request 0 s;pass 8;");
             Check.same("0", gate.minutesUntilCheese(1), 0);
             gate.cheese(1);
             Check.same("1, the last minute of the ticket", gate.minutesUntilCheese(1), 1);
@@ -80,7 +80,7 @@ final class CountEdges {
             Check.same("none for a gate ticket", gate.minutesUntilCheese(0), TicketGate.NONE);
         });
         Edge.of("Promise 43", WAIT, () -> {
-            TicketGate gate = Check.loaded("gate 1 5;realm a 999 0 even;user u a 7 even;service s a 1;login u 7;request 0 s;");
+            Gate gate = Check.loaded("gate 1 5;realm a 999 0 even;user u a 7 even;service s a 1;login u 7;request 0 s;");
             gate.setClock(0, 1);
             Check.same("as skewed as the tolerance", gate.minutesUntilCheese(1), 0);
             gate.setClock(0, 2);
@@ -92,8 +92,8 @@ final class CountEdges {
     }
 
     /** Uses of one minute by the clocks 0 to tolerance minutes ahead meet the even clock in each minute that follows. */
-    private static TicketGate waiting(int tolerance, int lifetime) {
-        TicketGate gate = Check.loaded("gate " + tolerance + " 5;realm a " + lifetime + " 0 even;user u a 7 even;service s a 99;login u 7;request 0 s;");
+    private static Gate waiting(int tolerance, int lifetime) {
+        Gate gate = Check.loaded("gate " + tolerance + " 5;realm a " + lifetime + " 0 even;user u a 7 even;service s a 99;login u 7;request 0 s;");
         for (int offset = tolerance; offset >= 0; offset--) {
             gate.setClock(0, offset);
             gate.cheese(1);
@@ -109,7 +109,7 @@ final class CountEdges {
                 Check.same("it ends a minute later", waiting(tolerance, tolerance + 2).minutesUntilCheese(1), tolerance + 1);
                 Check.same("it ends then", waiting(tolerance, tolerance + 1).minutesUntilCheese(1), TicketGate.NONE);
             }
-            TicketGate gap = waiting(9, 999);
+            Gate gap = waiting(9, 999);
             gap.setClock(0, 5);
             Check.same("five minutes are met", gap.minutesUntilCheese(1), 5);
             gap.setClock(0, 9);
@@ -125,7 +125,7 @@ final class CountEdges {
 
     private static void bestTicket() {
         Edge.of("Promise 44", BEST, () -> {
-            TicketGate gate = Check.loaded(HEAD + "login u 7 renewable;request 0 s;request 0 s;pass 1;login u 7;request 3 s;request 3 s;request 0 s;");
+            Gate gate = Check.loaded(HEAD + "login u 7 renewable;request 0 s;request 0 s;pass 1;login u 7;request 3 s;request 3 s;request 0 s;");
             Check.same("the first of two with the greatest end", gate.bestTicket(0, 0), 4);
             gate.drop(4);
             Check.same("the second of them", gate.bestTicket(0, 0), 5);
@@ -140,15 +140,15 @@ final class CountEdges {
             Check.same("at its end", gate.bestTicket(0, 0), TicketGate.NONE);
         });
         Edge.of("Promise 44", "Throws `IndexOutOfBoundsException` if the user or the service does not exist", () -> {
-            Bounds.counted(TicketGate::new, 2, Check.INDEX, (gate, user) -> gate.bestTicket(user, 0));
-            Bounds.counted(TicketGate::new, 2, Check.INDEX, (gate, service) -> gate.bestTicket(0, service));
+            Bounds.counted(Gate::new, 2, Check.INDEX, (gate, user) -> gate.bestTicket(user, 0));
+            Bounds.counted(Gate::new, 2, Check.INDEX, (gate, service) -> gate.bestTicket(0, service));
             Bounds.counted(() -> Check.loaded("gate 0 0;"), 0, Check.INDEX, (gate, both) -> gate.bestTicket(both, both));
         });
     }
 
     private static void noBestTicket() {
         Edge.of("Promise 44", BEST, () -> {
-            TicketGate gate = Check.loaded(HEAD + "login v 7;request 0 t;login u 7;request 2 s;");
+            Gate gate = Check.loaded(HEAD + "login v 7;request 0 t;login u 7;request 2 s;");
             Check.same("of v for t", gate.bestTicket(1, 1), 1);
             Check.same("of u for s", gate.bestTicket(0, 0), 3);
             Check.same("of v for s", gate.bestTicket(1, 0), TicketGate.NONE);
@@ -165,7 +165,7 @@ final class CountEdges {
     private static void useCount() {
         Edge.of("Promise 45", "Returns the number of remembered uses.", () -> {
             Check.same("none", Check.loaded(HEAD).useCount(), 0);
-            TicketGate gate = Check.loaded(HEAD + "login v 7;request 0 t;");
+            Gate gate = Check.loaded(HEAD + "login v 7;request 0 t;");
             for (int use = 1; use <= 40; use++) {
                 gate.setClock(1, use % 19 - 9);
                 Check.answer(() -> gate.cheese(1));
@@ -174,7 +174,7 @@ final class CountEdges {
             }
         });
         Edge.of("Promise 45", "Returns the number of remembered uses.", () -> {
-            TicketGate gate = Check.loaded("gate 9 5;realm a 10 20 even;user u a 7 even;service s a 99;service t a 99;login u 7;request 0 s;request 0 t;");
+            Gate gate = Check.loaded("gate 9 5;realm a 10 20 even;user u a 7 even;service s a 99;service t a 99;login u 7;request 0 s;request 0 t;");
             for (int use = 1; use <= 38; use++) {
                 gate.setClock(0, (use - 1) / 2 - 9);
                 gate.cheese(1 + use % 2);
@@ -203,9 +203,9 @@ final class CountEdges {
     private static void cheeseDifference() {
         String sentence = "Returns the cheeses of all services of the text minus those that the services have now and those of all users; " + ALWAYS_0;
         Edge.of("Promise 46", sentence, () -> {
-            Check.same("at first", new TicketGate().cheeseDifference(), 0);
+            Check.same("at first", new Gate().cheeseDifference(), 0);
             Check.same("no services", Check.loaded("gate 0 0;").cheeseDifference(), 0);
-            TicketGate gate = Check.loaded(HEAD + "login u 7;request 0 s;cheese 1;login v 7;request 2 t;");
+            Gate gate = Check.loaded(HEAD + "login u 7;request 0 s;cheese 1;login v 7;request 2 t;");
             Check.same("a cheese in the text", gate.cheeseDifference(), 0);
             gate.cheese(3);
             Check.same("another one", gate.cheeseDifference(), 0);
@@ -220,45 +220,47 @@ final class CountEdges {
             gate.undo();
             Check.same("the cheese undone", gate.cheeseDifference() + gate.cheesesOf(1), 0);
         });
-        Edge.of("Promise 46", sentence, () -> eachMinute(gate -> Check.same("minute " + gate.time(), gate.cheeseDifference(), 0)));
+        Edge.of("Promise 46", sentence, () -> eachTime(gate -> Check.same("time " + gate.time(), gate.cheeseDifference(), 0)));
     }
 
-    /** Does what can be done in each minute until tickets, cheeses and lives are at their ends. */
-    private static void eachMinute(Consumer<TicketGate> look) {
-        TicketGate gate = new TicketGate();
-        for (int minute = 0; minute < 40; minute++) {
-            for (int i = 0; i < gate.ticketCount(); i++) {
-                int ticket = gate.ticketAt(i);
-                Check.answer(() -> gate.renew(ticket));
-                Check.answer(() -> gate.cheese(ticket));
-                Check.answer(() -> gate.refer(ticket, 1));
-                look.accept(gate);
+    /** Does what can be done, again and again, until tickets, cheeses and lives are at their ends. */
+    private static void eachTime(Consumer<Gate> look) {
+        Gate gate = new Gate();
+        for (int minutes = 1; minutes <= 26; minutes++) {
+            for (int ticket = 0; ticket < 3; ticket++) {
+                int renewed = ticket;
+                Check.answer(() -> gate.renew(renewed));
             }
+            Check.answer(() -> gate.cheese(2));
+            Check.answer(() -> gate.cheese(4));
+            Check.answer(() -> gate.refer(0, 1));
             Check.answer(() -> gate.request(0, 1));
-            gate.pass(minute % 7 + 1);
-            look.accept(gate);
+            look.accept(gate.twin());
+            gate.pass(minutes);
+            look.accept(gate.twin());
         }
+        Check.same("all has ended", gate.twin().validTickets(), 0);
     }
 
     private static void lifeErrors() {
         String sentence = "Returns the number of tickets whose start is not less than their end, or whose end is greater than their last end; " + ALWAYS_0;
         Edge.of("Promise 47", sentence, () -> {
-            Check.same("at first", new TicketGate().lifeErrors(), 0);
+            Check.same("at first", new Gate().lifeErrors(), 0);
             Check.same("no tickets", Check.loaded(HEAD).lifeErrors(), 0);
             String shortest = "gate 9 5;realm a 1 0 even;realm b 1 0 even;trust a b;user u a 7 even;service s a 2;login u 7;login u 7 renewable;";
             Check.same("lives of a minute", Check.loaded(shortest + "refer 1 b;request 1 s;pass 1;").lifeErrors(), 0);
             Check.same("ended ones", Check.loaded(HEAD + "login u 7;login v 7 renewable;pass 999;").lifeErrors(), 0);
-            TicketGate last = Check.loaded(HEAD + "login u 7 renewable;pass 9;request 0 s;renew 0;pass 9;renew 0;");
+            Gate last = Check.loaded(HEAD + "login u 7 renewable;pass 9;request 0 s;renew 0;pass 9;renew 0;");
             Check.same("an end at the last end", last.lifeErrors() + last.endOf(0), 20);
         });
-        Edge.of("Promise 47", sentence, () -> eachMinute(gate -> Check.same("minute " + gate.time(), gate.lifeErrors(), 0)));
+        Edge.of("Promise 47", sentence, () -> eachTime(gate -> Check.same("time " + gate.time(), gate.lifeErrors(), 0)));
     }
 
     private static void distanceErrors() {
         String sentence = "Returns the number of pairs of realms for which the distance differs from the one that is found by going through all realms "
                 + "as halfway realms; " + ALWAYS_0;
         Edge.of("Promise 48", sentence, () -> {
-            Check.same("at first", new TicketGate().distanceErrors(), 0);
+            Check.same("at first", new Gate().distanceErrors(), 0);
             Check.same("no realms", Check.loaded("gate 0 0;").distanceErrors(), 0);
             String five = "gate 0 0;realm a 1 0 even;realm b 1 0 even;realm c 1 0 even;realm d 1 0 even;realm e 1 0 even;";
             String[] ways = {"ab", "bc", "cd", "de", "ea", "ac", "ce", "da", "eb", "bd", "ba", "cb"};
@@ -276,7 +278,7 @@ final class CountEdges {
         String sentence = "Returns the number of valid tickets converted to float, divided by the number of tickets converted to float; 0.0f if there are none.";
         Edge.of("Promise 49", sentence, () -> {
             Check.same("none", Check.loaded(HEAD).validShare(), 0.0f);
-            TicketGate gate = Check.loaded(HEAD + "login u 7;".repeat(23) + "pass 1;login v 7;");
+            Gate gate = Check.loaded(HEAD + "login u 7;".repeat(23) + "pass 1;login v 7;");
             Check.same("all", gate.validShare(), 1.0f);
             gate.pass(9);
             Check.same("one of 24", gate.validShare(), 1.0f / 24.0f);
@@ -288,7 +290,7 @@ final class CountEdges {
             Check.same("none of two", gate.validShare(), 0.0f);
             gate.sweep();
             Check.same("none is left", gate.validShare(), 0.0f);
-            TicketGate most = Check.loaded(HEAD + "login u 7;pass 1;" + "login u 7;".repeat(22) + "pass 9;");
+            Gate most = Check.loaded(HEAD + "login u 7;pass 1;" + "login u 7;".repeat(22) + "pass 9;");
             Check.same("22 of 23", most.validShare(), 22.0f / 23.0f);
         });
     }
@@ -300,7 +302,7 @@ final class CountEdges {
             Check.same("none", Check.loaded(HEAD).averageLife(), 0.0);
             Check.same("the least", Check.loaded("gate 0 0;realm a 1 0 even;user u a 7 even;login u 7;").averageLife(), 1.0);
             Check.same("24 of the greatest", Check.loaded(HEAD + "login v 7;".repeat(24)).averageLife(), 999.0);
-            TicketGate gate = Check.loaded(HEAD + "login u 7;pass 3;login u 7 renewable;request 0 s;");
+            Gate gate = Check.loaded(HEAD + "login u 7;pass 3;login u 7 renewable;request 0 s;");
             Check.same("a third", gate.averageLife(), 27.0 / 3.0);
             gate.login(1, 7, false);
             Check.same("a quarter", gate.averageLife(), 1026.0 / 4.0);

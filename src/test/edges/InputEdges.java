@@ -23,7 +23,7 @@ final class InputEdges {
     private static void newObject() {
         String sentence = "Creates the gate with the state that section 6 describes, an empty input buffer, no error, an empty output and no saved states.";
         Edge.of("Promise 1", sentence, () -> {
-            TicketGate gate = new TicketGate();
+            Gate gate = new Gate();
             Check.same("state", Check.picture(gate), Check.picture(Check.loaded(START)));
             Check.fails("a byte of input", Check.ARGUMENT, () -> gate.truncateInput(1));
             Check.same("length of the input", gate.truncateInput(0), 0);
@@ -39,7 +39,7 @@ final class InputEdges {
     /** Each byte is told by a text in which it has to stand at its place. */
     private static void appendedBytes() {
         Edge.of("Promise 2", "Appends 20 bytes to the input buffer: the four bytes of each argument, the most significant byte first.", () -> {
-            TicketGate gate = new TicketGate();
+            Gate gate = new Gate();
             gate.appendInput(0x67617465, 0x20392031, 0x3032333b, 0x73776565, 0x703b0a20); // gate 9 1023;sweep;
             Check.same("it loads", gate.load(), 0);
             Check.same("seed", gate.seed(), 1023);
@@ -66,7 +66,7 @@ final class InputEdges {
 
     /** All bytes are blanks but one, which load finds at its place. */
     private static void byteIsAt(int place) {
-        TicketGate gate = new TicketGate();
+        Gate gate = new Gate();
         int[] fours = new int[5];
         java.util.Arrays.fill(fours, 0x20202020);
         fours[place / 4] += ('x' - ' ') << 8 * (3 - place % 4);
@@ -77,7 +77,7 @@ final class InputEdges {
 
     private static void appendedLength() {
         Edge.of("Promise 2", "Returns the new length of the buffer.", () -> {
-            TicketGate gate = new TicketGate();
+            Gate gate = new Gate();
             for (int length = 20; length <= 600; length += 20) {
                 Check.same("length", gate.appendInput(0, 0, 0, 0, 0), length);
             }
@@ -90,26 +90,26 @@ final class InputEdges {
             Check.same("600 are taken", filled(580).appendInput(0, 0, 0, 0, 0), 600);
             for (int length : new int[] {581, 590, 599, 600}) {
                 Twin.refuses("20 more than " + length, Check.STATE, () -> filled(length), gate -> gate.appendInput(1, 2, 3, 4, 5));
-                TicketGate gate = filled(length);
+                Gate gate = filled(length);
                 Check.answer(() -> gate.appendInput(0, 0, 0, 0, 0));
                 Check.same("the bytes stay", gate.load() + " " + gate.seed(), "0 77");
             }
-            TicketGate gate = filled(581);
+            Gate gate = filled(581);
             gate.truncateInput(580);
             Check.same("room again after a cut", gate.appendInput(0x20202020, 0, 0, 0, 0), 600);
         });
     }
 
     /** A gate whose input is a text of this length that loads. */
-    private static TicketGate filled(int length) {
-        TicketGate gate = new TicketGate();
+    private static Gate filled(int length) {
+        Gate gate = new Gate();
         Check.put(gate, "gate 2" + " ".repeat(length - 9) + "77;");
         return gate;
     }
 
     private static void truncate() {
         Edge.of("Promise 3", "Truncates the input buffer.", () -> {
-            TicketGate gate = new TicketGate();
+            Gate gate = new Gate();
             Check.put(gate, "bayz");
             gate.truncateInput(3);
             Check.same("the first bytes stay", gate.findName(), 1);
@@ -117,7 +117,7 @@ final class InputEdges {
             Check.same("none stays", gate.findName(), TicketGate.NONE);
         });
         Edge.of("Promise 3", "- `length`: the new length, 0 to the current length", () -> {
-            TicketGate gate = filled(600);
+            Gate gate = filled(600);
             Check.same("600 of 600", gate.truncateInput(600), 600);
             Check.same("599 of 600", gate.truncateInput(599), 599);
             Check.fails("600 of 599", Check.ARGUMENT, () -> gate.truncateInput(600));
@@ -128,7 +128,7 @@ final class InputEdges {
             Check.fails("1 of 0", Check.ARGUMENT, () -> gate.truncateInput(1));
         });
         Edge.of("Promise 3", "Returns the new length.", () -> {
-            TicketGate gate = filled(600);
+            Gate gate = filled(600);
             for (int length = 600; length >= 0; length -= 100) {
                 Check.same("to " + length, gate.truncateInput(length), length);
             }
@@ -138,21 +138,21 @@ final class InputEdges {
                 Twin.refuses("to " + length + " of 20", Check.ARGUMENT, () -> filled(20), gate -> gate.truncateInput(length));
             }
             Twin.refuses("to 601 of 600", Check.ARGUMENT, () -> filled(600), gate -> gate.truncateInput(601));
-            Twin.refuses("to 1 of 0", Check.ARGUMENT, TicketGate::new, gate -> gate.truncateInput(1));
+            Twin.refuses("to 1 of 0", Check.ARGUMENT, Gate::new, gate -> gate.truncateInput(1));
         });
     }
 
     private static void load() {
         Edge.of("Promise 4", "Parses the input buffer and replaces the state by the result.", () -> {
-            TicketGate gate = new TicketGate();
+            Gate gate = new Gate();
             Check.load(gate, "gate 0 0;");
             Check.same("nothing of the old state", "" + gate.realmCount() + gate.userCount() + gate.serviceCount()
                     + gate.ticketCount() + gate.useCount() + gate.time() + gate.seed(), "0000000");
             Check.load(gate, START);
-            Check.same("all of the new state", Check.picture(gate), Check.picture(new TicketGate()));
+            Check.same("all of the new state", Check.picture(gate), Check.picture(new Gate()));
         });
         Edge.of("Promise 4", "The input buffer is empty afterwards, also if the text has an error.", () -> {
-            TicketGate gate = filled(600);
+            Gate gate = filled(600);
             gate.load();
             Check.same("after a good text", Twin.inputLength(gate), 0);
             Check.same("room for 20", gate.appendInput(0, 0, 0, 0, 0), 20);
@@ -163,17 +163,17 @@ final class InputEdges {
             Check.same("no name is found in it", gate.findName(), TicketGate.NONE);
         });
         Edge.of("Promise 4", "Returns the number of tickets.", () -> {
-            Check.same("none", Check.load(new TicketGate(), "gate 0 0;"), 0);
-            Check.same("24", Check.load(new TicketGate(), HEAD + "login u 7;".repeat(24)), 24);
-            Check.same("of dropped ones none", Check.load(new TicketGate(), HEAD + "login u 7;login u 7;drop 0;"), 1);
-            Check.same("those that are not valid too", Check.load(new TicketGate(), HEAD + "login u 7;pass 10;"), 1);
+            Check.same("none", Check.load(new Gate(), "gate 0 0;"), 0);
+            Check.same("24", Check.load(new Gate(), HEAD + "login u 7;".repeat(24)), 24);
+            Check.same("of dropped ones none", Check.load(new Gate(), HEAD + "login u 7;login u 7;drop 0;"), 1);
+            Check.same("those that are not valid too", Check.load(new Gate(), HEAD + "login u 7;pass 10;"), 1);
         });
     }
 
     private static void loadThatThrows() {
         Edge.of("Promise 4", "If the text has an error, the state does not change, and the error code and the error position are stored.", () -> {
             for (String text : new String[] {"", "gate 9 9;realm", HEAD + "login u 7;login u 8;", "gate 0 0;gate"}) {
-                TicketGate gate = new TicketGate();
+                Gate gate = new Gate();
                 gate.save(0);
                 gate.pass(3);
                 String before = Check.picture(gate);
@@ -190,18 +190,18 @@ final class InputEdges {
             String[] bad = {"gate 2 5", "gate 10 5;", HEAD + "realm a 1 1 even;", HEAD + "drop 0;",
                 "gate 0 0;realm a 1 0 even;realm b 1 0 even;realm c 1 0 even;realm d 1 0 even;realm e 1 0 even;realm", HEAD + "login u 8;"};
             for (int code = 1; code <= bad.length; code++) {
-                TicketGate gate = new TicketGate();
+                Gate gate = new Gate();
                 Check.put(gate, bad[code - 1]);
                 Check.fails("error " + code, Check.ARGUMENT, () -> gate.load());
                 Check.same("code", gate.errorCode(), code);
             }
-            Check.same("a good text", Check.load(new TicketGate(), "gate 0 0;"), 0);
+            Check.same("a good text", Check.load(new Gate(), "gate 0 0;"), 0);
         });
     }
 
     private static void error() {
         Edge.of("Promise 5", "Returns the error code of the latest call of load; 0 if it had no error or if load was not called.", () -> {
-            TicketGate gate = new TicketGate();
+            Gate gate = new Gate();
             Check.same("not called", gate.errorCode(), 0);
             Check.answer(() -> Check.load(gate, HEAD + "login u 8;"));
             Check.same("an error", gate.errorCode(), 6);
@@ -214,7 +214,7 @@ final class InputEdges {
             Check.same("no error", gate.errorCode(), 0);
         });
         Edge.of("Promise 6", "Returns the error position of the latest call of load; NONE if it had no error or if load was not called.", () -> {
-            TicketGate gate = new TicketGate();
+            Gate gate = new Gate();
             Check.same("not called", gate.errorPosition(), TicketGate.NONE);
             Check.answer(() -> gate.load());
             Check.same("the least", gate.errorPosition(), 0);
@@ -230,7 +230,7 @@ final class InputEdges {
 
     private static void findName() {
         Edge.of("Promise 12", "Finds the realm, user or service whose name is the whole input buffer.", () -> {
-            TicketGate gate = Check.loaded("gate 0 0;realm a 1 0 even;realm abcd 1 0 even;user zz a 1 even;service abc a 1;");
+            Gate gate = Check.loaded("gate 0 0;realm a 1 0 even;realm abcd 1 0 even;user zz a 1 even;service abc a 1;");
             Check.same("one letter", Check.find(gate, "a"), 0);
             Check.same("four letters", Check.find(gate, "abcd"), 1);
             Check.same("three letters", Check.find(gate, "abc"), 200);
@@ -243,10 +243,10 @@ final class InputEdges {
         Edge.of("Promise 12", "The input buffer does not change.", () -> {
             for (String text : new String[] {"", "bay", "none", "gate 2 77;"}) {
                 Twin.unchanged("find " + text, () -> {
-                    TicketGate gate = new TicketGate();
+                    Gate gate = new Gate();
                     Check.put(gate, text);
                     return gate;
-                }, TicketGate::findName);
+                }, Gate::findName);
             }
         });
     }
@@ -254,7 +254,7 @@ final class InputEdges {
     private static void foundNumbers() {
         String sentence = "Returns the number of the realm, 100 plus the number of the user, or 200 plus the number of the service; NONE if there is none.";
         Edge.of("Promise 12", sentence, () -> {
-            TicketGate gate = Check.loaded("gate 0 0;realm a 1 0 even;realm b 1 0 even;realm c 1 0 even;realm d 1 0 even;realm e 1 0 even;"
+            Gate gate = Check.loaded("gate 0 0;realm a 1 0 even;realm b 1 0 even;realm c 1 0 even;realm d 1 0 even;realm e 1 0 even;"
                     + "user f a 1 even;user g a 1 even;user h a 1 even;user i a 1 even;user j a 1 even;user k a 1 even;service l a 1;"
                     + "service m a 1;service n a 1;service o a 1;service p a 1;service q a 1;");
             int[] codes = {0, 1, 2, 3, 4, 100, 101, 102, 103, 104, 105, 200, 201, 202, 203, 204, 205, -1};

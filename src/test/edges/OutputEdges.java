@@ -23,7 +23,7 @@ final class OutputEdges {
         String sentence = "Writes a ticket into the output: its number, the byte :, the name of its owner, the byte @, the name of its realm; for a ticket for "
                 + "a service the byte / and the name of the service; then a space and its end, and the byte + if it is renewable.";
         Edge.of("Promise 61", sentence, () -> {
-            TicketGate gate = Check.loaded(HEAD + "login u 7;login u 7 renewable;login vwxy 0;login vwxy 0 renewable;request 0 s;request 1 s;request 2 long;request 3 long;");
+            Gate gate = Check.loaded(HEAD + "login u 7;login u 7 renewable;login vwxy 0;login vwxy 0 renewable;request 0 s;request 1 s;request 2 long;request 3 long;");
             String[] due = {"0:u@a 1", "1:u@a 1+", "2:vwxy@bcde 999", "3:vwxy@bcde 999+", "4:u@a/s 1", "5:u@a/s 1+", "6:vwxy@bcde/long 999",
                 "7:vwxy@bcde/long 999+"};
             for (int t = 0; t < due.length; t++) {
@@ -32,24 +32,24 @@ final class OutputEdges {
             }
         });
         Edge.of("Promise 61", sentence, () -> {
-            TicketGate gate = Check.loaded(HEAD);
+            Gate gate = Check.loaded(HEAD);
             int[] numbers = {9, 10, 99, 100, 120};
             for (int number = 0, i = 0; i < numbers.length; number++) {
                 gate.login(1, 0, true);
                 if (number == numbers[i]) {
                     i++;
                     gate.writeTicket(number);
-                    Check.same("number " + number, Check.output(gate), number + ":vwxy@bcde " + (999 + gate.time()) + "+");
+                    Check.same("number " + number, Check.output(gate.twin()), number + ":vwxy@bcde " + (999 + gate.time()) + "+");
                 }
                 gate.drop(number);
                 gate.pass(999);
             }
         });
         Edge.of("Promise 61", "Returns the length of the output.", () -> {
-            TicketGate gate = Check.loaded(HEAD + "login u 7;login vwxy 0 renewable;request 1 long;");
+            Gate gate = Check.loaded(HEAD + "login u 7;login vwxy 0 renewable;request 1 long;");
             Check.same("the shortest", gate.writeTicket(0), 7);
             Check.same("the longest", gate.writeTicket(2), 21);
-            TicketGate late = Check.loaded(HEAD);
+            Gate late = Check.loaded(HEAD);
             for (int i = 0; i < 110; i++) {
                 late.pass(999);
                 late.login(1, 0, true);
@@ -63,7 +63,7 @@ final class OutputEdges {
 
     private static void discarded() {
         Edge.of("Promise 61", "The previous output is discarded.", () -> {
-            TicketGate gate = Check.loaded(HEAD + "login u 7;login vwxy 0 renewable;request 1 long;");
+            Gate gate = Check.loaded(HEAD + "login u 7;login vwxy 0 renewable;request 1 long;");
             gate.writeTicket(2);
             gate.writeTicket(0);
             Check.same("a shorter one", Check.output(gate), "0:u@a 1");
@@ -72,7 +72,7 @@ final class OutputEdges {
             Check.same("the same again", Check.output(gate), "0:u@a 1");
         });
         Edge.of("Promise 61", "The previous output is discarded.", () -> {
-            TicketGate gate = Check.loaded(HEAD + "login u 7;");
+            Gate gate = Check.loaded(HEAD + "login u 7;");
             gate.writeTicket(0);
             Check.fails("no ticket", Check.ELEMENT, () -> gate.writeTicket(1));
             Check.same("a call that throws discards none", Check.output(gate), "0:u@a 1");
@@ -82,8 +82,8 @@ final class OutputEdges {
         });
     }
 
-    private static TicketGate wrote() {
-        TicketGate gate = Check.loaded(HEAD + "login vwxy 0 renewable;");
+    private static Gate wrote() {
+        Gate gate = Check.loaded(HEAD + "login vwxy 0 renewable;");
         gate.writeTicket(0);
         return gate;
     }
@@ -100,15 +100,15 @@ final class OutputEdges {
             }
         });
         Edge.of("Promise 62", "Throws `NoSuchElementException` if the output has no such position", () -> {
-            Bounds.counted(OutputEdges::wrote, 16, Check.ELEMENT, TicketGate::outputByte);
-            Bounds.counted(TicketGate::new, 0, Check.ELEMENT, TicketGate::outputByte);
+            Bounds.counted(OutputEdges::wrote, 16, Check.ELEMENT, Gate::outputByte);
+            Bounds.counted(Gate::new, 0, Check.ELEMENT, Gate::outputByte);
         });
     }
 
     private static void save() {
         Edge.of("Promise 63", "Saves a copy of the state in a slot.", () -> {
             for (int slot = 0; slot <= 1; slot++) {
-                TicketGate gate = new TicketGate();
+                Gate gate = new Gate();
                 gate.save(slot);
                 gate.cheese(4);
                 gate.drop(0);
@@ -116,13 +116,13 @@ final class OutputEdges {
                 gate.setClock(1, 0);
                 gate.pass(9);
                 gate.restore(slot);
-                Check.same("slot " + slot, Check.picture(gate), Check.picture(new TicketGate()));
+                Check.same("slot " + slot, Check.picture(gate), Check.picture(new Gate()));
                 int other = 1 - slot;
                 Check.fails("slot " + other + " stays empty", Check.STATE, () -> gate.restore(other));
             }
         });
         Edge.of("Promise 63", "The previous content of the slot is discarded.", () -> {
-            TicketGate gate = new TicketGate();
+            Gate gate = new Gate();
             gate.save(0);
             gate.save(1);
             gate.pass(1);
@@ -133,7 +133,7 @@ final class OutputEdges {
         });
         Edge.of("Promise 63", "Returns the time.", () -> {
             Check.same("the least", Check.loaded("gate 0 0;").save(0), 0);
-            TicketGate gate = new TicketGate();
+            Gate gate = new Gate();
             gate.pass(999);
             Check.same("later", gate.save(1), 1005);
         });
@@ -141,17 +141,17 @@ final class OutputEdges {
 
     private static void saveBounds() {
         Edge.of("Promise 63", "- `slot`: 0 or 1", () -> {
-            TicketGate gate = new TicketGate();
+            Gate gate = new Gate();
             Check.same("0", gate.save(0), 6);
             Check.same("1", gate.save(1), 6);
             Check.fails("2", Check.INDEX, () -> gate.save(2));
         });
-        Edge.of("Promise 63", NO_SLOT, () -> Bounds.counted(TicketGate::new, 2, Check.INDEX, TicketGate::save));
-        Edge.of("Promise 63", NO_SLOT, () -> Bounds.counted(OutputEdges::saved, 2, Check.INDEX, TicketGate::save));
+        Edge.of("Promise 63", NO_SLOT, () -> Bounds.counted(Gate::new, 2, Check.INDEX, Gate::save));
+        Edge.of("Promise 63", NO_SLOT, () -> Bounds.counted(OutputEdges::saved, 2, Check.INDEX, Gate::save));
     }
 
-    private static TicketGate saved() {
-        TicketGate gate = new TicketGate();
+    private static Gate saved() {
+        Gate gate = new Gate();
         gate.save(0);
         gate.pass(1);
         gate.save(1);
@@ -161,7 +161,7 @@ final class OutputEdges {
 
     private static void restore() {
         Edge.of("Promise 64", "Replaces the state by the copy in a slot.", () -> {
-            TicketGate gate = saved();
+            Gate gate = saved();
             Check.load(gate, HEAD + "login u 7;");
             gate.restore(1);
             Check.same("the state of another text", Check.find(gate, "alp") + Check.find(gate, "bcde"), TicketGate.NONE);
@@ -169,10 +169,10 @@ final class OutputEdges {
             Check.same("its next number", gate.login(0, 11, false), 5);
         });
         Edge.of("Promise 64", "The slot keeps its content.", () -> {
-            TicketGate gate = saved();
+            Gate gate = saved();
             for (int i = 0; i < 3; i++) {
                 Check.same("again", gate.restore(0), 6);
-                Check.same("the same state", Check.picture(gate), Check.picture(new TicketGate()));
+                Check.same("the same state", Check.picture(gate), Check.picture(new Gate()));
                 gate.cheese(4);
                 gate.sweep();
                 gate.drop(3);
@@ -183,7 +183,7 @@ final class OutputEdges {
         Edge.of("Promise 64", "Returns the time afterwards.", () -> {
             Check.same("of slot 0", saved().restore(0), 6);
             Check.same("of slot 1", saved().restore(1), 7);
-            TicketGate gate = saved();
+            Gate gate = saved();
             gate.restore(1);
             Check.same("as time answers", gate.time(), 7);
         });
@@ -195,21 +195,21 @@ final class OutputEdges {
             Check.same("1", saved().restore(1), 7);
             Check.fails("2", Check.INDEX, () -> saved().restore(2));
         });
-        Edge.of("Promise 64", NO_SLOT, () -> Bounds.counted(OutputEdges::saved, 2, Check.INDEX, TicketGate::restore));
+        Edge.of("Promise 64", NO_SLOT, () -> Bounds.counted(OutputEdges::saved, 2, Check.INDEX, Gate::restore));
         Edge.of("Promise 64", "Throws `IllegalStateException` if the slot is empty", () -> {
-            Twin.refuses("slot 0 of none", Check.STATE, TicketGate::new, gate -> gate.restore(0));
-            Twin.refuses("slot 1 of none", Check.STATE, TicketGate::new, gate -> gate.restore(1));
+            Twin.refuses("slot 0 of none", Check.STATE, Gate::new, gate -> gate.restore(0));
+            Twin.refuses("slot 1 of none", Check.STATE, Gate::new, gate -> gate.restore(1));
             for (int full = 0; full <= 1; full++) {
                 int slot = full;
                 Twin.refuses("the other one than " + slot, Check.STATE, () -> {
-                    TicketGate gate = new TicketGate();
+                    Gate gate = new Gate();
                     gate.pass(1);
                     gate.save(slot);
                     gate.pass(1);
                     return gate;
                 }, gate -> gate.restore(1 - slot));
             }
-            TicketGate gate = new TicketGate();
+            Gate gate = new Gate();
             gate.save(0);
             Check.same("it is full after a save", gate.restore(0), 6);
         });
@@ -217,7 +217,7 @@ final class OutputEdges {
 
     private static void undo() {
         Edge.of("Promise 65", "Undoes the latest remembered undoable call and removes it from the remembered calls.", () -> {
-            TicketGate gate = new TicketGate();
+            Gate gate = new Gate();
             gate.pass(1);
             gate.pass(2);
             gate.undo();
@@ -234,7 +234,7 @@ final class OutputEdges {
             Check.same("a restore", gate.time(), 7);
         });
         Edge.of("Promise 65", "Returns the number of remembered calls that are left.", () -> {
-            TicketGate gate = new TicketGate();
+            Gate gate = new Gate();
             for (int i = 0; i < 12; i++) {
                 gate.pass(1);
             }
@@ -248,9 +248,9 @@ final class OutputEdges {
 
     private static void undoOfNone() {
         Edge.of("Promise 65", "Throws `IllegalStateException` if no call is remembered", () -> {
-            Twin.refuses("of a new object", Check.STATE, TicketGate::new, TicketGate::undo);
+            Twin.refuses("of a new object", Check.STATE, Gate::new, Gate::undo);
             Twin.refuses("of calls that are undone", Check.STATE, () -> {
-                TicketGate gate = new TicketGate();
+                Gate gate = new Gate();
                 for (int i = 0; i < 9; i++) {
                     gate.pass(1);
                 }
@@ -258,15 +258,15 @@ final class OutputEdges {
                     gate.undo();
                 }
                 return gate;
-            }, TicketGate::undo);
+            }, Gate::undo);
             Twin.refuses("of calls that are not undoable", Check.STATE, () -> {
-                TicketGate gate = new TicketGate();
+                Gate gate = new Gate();
                 gate.save(0);
                 gate.writeTicket(0);
                 Check.put(gate, "gate 2 5;?");
                 Check.answer(gate::load);
                 return gate;
-            }, TicketGate::undo);
+            }, Gate::undo);
         });
     }
 }

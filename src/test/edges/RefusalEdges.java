@@ -28,11 +28,11 @@ final class RefusalEdges {
         cheese();
     }
 
-    private static TicketGate tickets() {
+    private static Gate tickets() {
         return Check.loaded(TICKETS);
     }
 
-    private static TicketGate fullTickets() {
+    private static Gate fullTickets() {
         return Check.loaded(TICKETS + "login u 7;".repeat(22));
     }
 
@@ -42,7 +42,7 @@ final class RefusalEdges {
 
     private static void loginRefusal() {
         Edge.of("Promise 36", "Returns 0 if a login would not be refused; otherwise the first reason of section 3 that applies.", () -> {
-            TicketGate gate = Check.loaded(TICKETS + "login u 7;".repeat(21));
+            Gate gate = Check.loaded(TICKETS + "login u 7;".repeat(21));
             Check.same("23 tickets", gate.loginRefusal(0, 7), 0);
             gate.login(0, 7, true);
             Check.same("24 tickets", gate.loginRefusal(0, 7), 3);
@@ -62,7 +62,7 @@ final class RefusalEdges {
 
     private static void referRefusal() {
         Edge.of("Promise 37", "Returns 0 if a referral would not be refused; otherwise the first reason of section 3 that applies.", () -> {
-            TicketGate gate = Check.loaded(TICKETS + "login u 7;".repeat(21));
+            Gate gate = Check.loaded(TICKETS + "login u 7;".repeat(21));
             Check.same("23 tickets", gate.referRefusal(0, 1), 0);
             gate.login(0, 7, true);
             Check.same("24 tickets", gate.referRefusal(0, 1), 5);
@@ -78,7 +78,7 @@ final class RefusalEdges {
 
     private static void requestRefusal() {
         Edge.of("Promise 38", "Returns 0 if a request would not be refused; otherwise the first reason of section 3 that applies.", () -> {
-            TicketGate gate = Check.loaded(TICKETS + "login u 7;".repeat(21));
+            Gate gate = Check.loaded(TICKETS + "login u 7;".repeat(21));
             Check.same("23 tickets", gate.requestRefusal(0, 0), 0);
             gate.login(0, 7, true);
             Check.same("24 tickets", gate.requestRefusal(0, 0), 5);
@@ -94,7 +94,7 @@ final class RefusalEdges {
 
     private static void renewRefusal() {
         Edge.of("Promise 39", "Returns 0 if the ticket can be renewed; otherwise the first reason of section 3 that applies.", () -> {
-            TicketGate gate = Check.loaded(TICKETS + "login u 7;pass 1;");
+            Gate gate = Check.loaded(TICKETS + "login u 7;pass 1;");
             Check.same("it can", gate.renewRefusal(0), 0);
             Check.same("a ticket for a service can", gate.renewRefusal(1), 0);
             gate.renew(0);
@@ -105,7 +105,7 @@ final class RefusalEdges {
             Check.same("nor renewable", gate.renewRefusal(2), 1);
         });
         Edge.of("Promise 39", "Returns 0 if the ticket can be renewed; otherwise the first reason of section 3 that applies.", () -> {
-            TicketGate gate = Check.loaded(TICKETS + "login u 7;".repeat(22) + "pass 1;");
+            Gate gate = Check.loaded(TICKETS + "login u 7;".repeat(22) + "pass 1;");
             gate.setClock(0, 9);
             Check.same("24 tickets and a skewed clock do not matter", gate.renewRefusal(0), 0);
         });
@@ -113,7 +113,7 @@ final class RefusalEdges {
 
     private static void cheeseRefusal() {
         Edge.of("Promise 40", "Returns 0 if a cheese can be given for the ticket; otherwise the first reason of section 3 that applies.", () -> {
-            TicketGate gate = fullTickets();
+            Gate gate = fullTickets();
             Check.same("it can, with 24 tickets", gate.cheeseRefusal(1), 0);
             Check.same("a gate ticket", gate.cheeseRefusal(0), 1);
             gate.cheese(1);
@@ -131,20 +131,20 @@ final class RefusalEdges {
 
     private static void login() {
         Edge.of("Promise 51", "A user logs in.", () -> {
-            TicketGate gate = Check.loaded(HEAD + "pass 4;");
+            Gate gate = Check.loaded(HEAD + "pass 4;");
             gate.login(1, 0, true);
             Check.same("one ticket", gate.ticketCount(), 1);
             Check.same("its owner and realm", gate.ownerOf(0) + " " + gate.realmOf(0), "1 1");
             Check.same("its life", gate.startOf(0) + " " + gate.endOf(0) + " " + gate.lastEndOf(0), "4 11 19");
         });
         Edge.of("Promise 51", PASSWORD, () -> {
-            TicketGate gate = Check.loaded(HEAD);
+            Gate gate = Check.loaded(HEAD);
             Check.same("the least", gate.login(1, 0, false), 0);
             gate.setPassword(1, 9999);
             Check.same("the greatest", gate.login(1, 9999, false), 1);
         });
         Edge.of("Promise 51", "Returns the number of the new ticket.", () -> {
-            TicketGate gate = Check.loaded(HEAD);
+            Gate gate = Check.loaded(HEAD);
             for (int number = 0; number < 24; number++) {
                 Check.same("number", gate.login(0, 7, number % 2 == 0), number);
             }
@@ -164,17 +164,17 @@ final class RefusalEdges {
         });
     }
 
-    private static Supplier<TicketGate> clock(Supplier<TicketGate> scene, int offset) {
+    private static Supplier<Gate> clock(Supplier<Gate> scene, int offset) {
         return () -> {
-            TicketGate gate = scene.get();
+            Gate gate = scene.get();
             gate.setClock(0, offset);
             return gate;
         };
     }
 
-    private static Supplier<TicketGate> later(Supplier<TicketGate> scene, int minutes) {
+    private static Supplier<Gate> later(Supplier<Gate> scene, int minutes) {
         return () -> {
-            TicketGate gate = scene.get();
+            Gate gate = scene.get();
             gate.pass(minutes);
             return gate;
         };
@@ -182,14 +182,14 @@ final class RefusalEdges {
 
     private static void refer() {
         Edge.of("Promise 52", "A user is referred to another realm.", () -> {
-            TicketGate gate = later(RefusalEdges::tickets, 9).get();
+            Gate gate = later(RefusalEdges::tickets, 9).get();
             gate.refer(0, 1);
             Check.same("kind, owner, realm and service", "" + gate.kindOf(2) + gate.ownerOf(2) + gate.realmOf(2) + gate.serviceOf(2), "001-1");
             Check.same("life", gate.startOf(2) + " " + gate.endOf(2) + " " + gate.lastEndOf(2), "9 10 20");
             Check.same("the old ticket stays", gate.realmOf(0) + " " + gate.endOf(0), "0 10");
         });
         Edge.of("Promise 52", "Returns the number of the new ticket.", () -> {
-            TicketGate gate = tickets();
+            Gate gate = tickets();
             Check.same("the first", gate.refer(0, 1), 2);
             gate.drop(2);
             Check.same("after a drop", gate.refer(0, 1), 3);
@@ -208,14 +208,14 @@ final class RefusalEdges {
 
     private static void request() {
         Edge.of("Promise 53", "A ticket for a service is requested.", () -> {
-            TicketGate gate = later(RefusalEdges::tickets, 9).get();
+            Gate gate = later(RefusalEdges::tickets, 9).get();
             gate.request(0, 2);
             Check.same("kind, owner, realm and service", "" + gate.kindOf(2) + gate.ownerOf(2) + gate.realmOf(2) + gate.serviceOf(2), "1002");
             Check.same("life", gate.startOf(2) + " " + gate.endOf(2) + " " + gate.lastEndOf(2), "9 10 20");
             Check.same("no cheese is given", gate.cheesesOf(0), 0);
         });
         Edge.of("Promise 53", "Returns the number of the new ticket.", () -> {
-            TicketGate gate = tickets();
+            Gate gate = tickets();
             Check.same("the first", gate.request(0, 0), 2);
             gate.drop(2);
             Check.same("after a drop", gate.request(0, 0), 3);
@@ -234,7 +234,7 @@ final class RefusalEdges {
 
     private static void renew() {
         Edge.of("Promise 54", "A ticket is renewed.", () -> {
-            TicketGate gate = later(RefusalEdges::fullTickets, 9).get();
+            Gate gate = later(RefusalEdges::fullTickets, 9).get();
             int seed = gate.seed();
             gate.renew(0);
             Check.same("its end", gate.endOf(0), 19);
@@ -244,7 +244,7 @@ final class RefusalEdges {
             Check.same("no ticket is made", gate.ticketCount(), 24);
         });
         Edge.of("Promise 54", "Returns its new end.", () -> {
-            TicketGate gate = tickets();
+            Gate gate = tickets();
             gate.pass(1);
             Check.same("a minute more", gate.renew(0), 11);
             gate.pass(8);
@@ -263,14 +263,14 @@ final class RefusalEdges {
 
     private static void cheese() {
         Edge.of("Promise 55", "A cheese is given for a ticket.", () -> {
-            TicketGate gate = tickets();
+            Gate gate = tickets();
             gate.cheese(1);
             Check.same("service, owner and uses", "" + gate.cheesesLeft(0) + gate.cheesesOf(0) + gate.useCount(), "011");
             Check.same("the ticket stays", gate.ticketCount() + " " + gate.endOf(1), "2 10");
             Check.same("no key is drawn", gate.seed(), gate.keyOf(1));
         });
         Edge.of("Promise 55", "Returns the number of cheeses of its owner afterwards.", () -> {
-            TicketGate gate = Check.loaded("gate 0 0;realm a 999 0 even;user v a 7 even;user u a 7 even;service s a 98;service t a 1;"
+            Gate gate = Check.loaded("gate 0 0;realm a 999 0 even;user v a 7 even;user u a 7 even;service s a 98;service t a 1;"
                     + "login u 7;request 0 s;request 0 t;");
             for (int cheeses = 1; cheeses <= 98; cheeses++) {
                 Check.same("cheeses", gate.cheese(1), cheeses);
@@ -279,7 +279,7 @@ final class RefusalEdges {
             Check.same("of another service", gate.cheese(2), 99);
         });
         Edge.of("Promise 55", REFUSED, () -> {
-            Supplier<TicketGate> used = () -> Check.loaded(TICKETS + "cheese 1;");
+            Supplier<Gate> used = () -> Check.loaded(TICKETS + "cheese 1;");
             Twin.refuses("1", Check.STATE, RefusalEdges::tickets, gate -> gate.cheese(0));
             Twin.refuses("2", Check.STATE, later(RefusalEdges::tickets, 10), gate -> gate.cheese(1));
             Twin.refuses("3", Check.STATE, clock(RefusalEdges::tickets, 2), gate -> gate.cheese(1));

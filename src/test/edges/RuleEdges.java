@@ -24,7 +24,7 @@ final class RuleEdges {
     /** Of reasons that apply all together, one after the other is taken away. */
     private static void firstReason() {
         Edge.of("Section 3", "Each of these is refused for the first of its reasons that applies:", () -> {
-            TicketGate gate = Check.loaded(HEAD + "login u 7;request 0 s;pass 4;" + FULL);
+            Gate gate = Check.loaded(HEAD + "login u 7;request 0 s;pass 4;" + FULL);
             gate.setClock(0, 2);
             Check.same("login 1 2 3", gate.loginRefusal(0, 8), 1);
             Check.same("login 2 3", gate.loginRefusal(0, 7), 2);
@@ -47,7 +47,7 @@ final class RuleEdges {
             Check.same("request", gate.requestRefusal(2, 0), 0);
         });
         Edge.of("Section 3", "Each of these is refused for the first of its reasons that applies:", () -> {
-            TicketGate gate = Check.loaded("gate 1 5;realm a 10 10 even;user u a 7 even;login u 7;login u 7 renewable;");
+            Gate gate = Check.loaded("gate 1 5;realm a 10 10 even;user u a 7 even;login u 7;login u 7 renewable;");
             Check.same("renew 1 3", gate.renewRefusal(0), 1);
             gate.pass(10);
             Check.same("renew 1 2 3", gate.renewRefusal(0), 1);
@@ -56,7 +56,7 @@ final class RuleEdges {
             Check.same("renew 3", gate.renewRefusal(1), 3);
         });
         Edge.of("Section 3", "Each of these is refused for the first of its reasons that applies:", () -> {
-            TicketGate gate = Check.loaded("gate 1 5;realm a 10 20 fast 1;user u a 7 even;service s a 1;service t a 1;"
+            Gate gate = Check.loaded("gate 1 5;realm a 10 20 fast 1;user u a 7 even;service s a 1;service t a 1;"
                     + "login u 7;request 0 s;request 0 t;pass 8;cheese 1;pass 1;");
             gate.setClock(0, -1);
             gate.pass(1);
@@ -67,7 +67,7 @@ final class RuleEdges {
             gate.undo();
             Check.same("cheese 5", gate.cheeseRefusal(1), 5);
             Check.same("cheese", gate.cheeseRefusal(2), 0);
-            TicketGate same = Check.loaded("gate 1 5;realm a 10 20 even;user u a 7 even;service s a 1;login u 7;request 0 s;pass 9;cheese 1;");
+            Gate same = Check.loaded("gate 1 5;realm a 10 20 even;user u a 7 even;service s a 1;login u 7;request 0 s;pass 9;cheese 1;");
             Check.same("cheese 4 5", same.cheeseRefusal(1), 4);
             same.pass(1);
             same.setClock(0, -1);
@@ -77,7 +77,7 @@ final class RuleEdges {
 
     private static void login() {
         Edge.of("Section 3 login", "1 the password is wrong", () -> {
-            TicketGate gate = Check.loaded(HEAD);
+            Gate gate = Check.loaded(HEAD);
             Check.same("it is right", gate.loginRefusal(0, 7), 0);
             Check.same("one less", gate.loginRefusal(0, 6), 1);
             Check.same("one more", gate.loginRefusal(0, 8), 1);
@@ -89,17 +89,17 @@ final class RuleEdges {
             Check.same("next to the least", gate.loginRefusal(0, 1), 1);
         });
         Edge.of("Section 3 login", "2 the skew of the user and the home realm is greater than the tolerance", () -> {
-            TicketGate gate = Check.loaded(HEAD);
+            Gate gate = Check.loaded(HEAD);
             int[] refusals = {2, 0, 0, 0, 2};
             for (int offset = -2; offset <= 2; offset++) {
                 gate.setClock(0, offset);
                 Check.same("offset " + offset, gate.loginRefusal(0, 7), refusals[offset + 2]);
             }
-            TicketGate far = Check.loaded("gate 1 5;realm a 1 1 even;realm b 1 1 fast 5;user u b 7 fast 5;");
+            Gate far = Check.loaded("gate 1 5;realm a 1 1 even;realm b 1 1 fast 5;user u b 7 fast 5;");
             Check.same("not the skew of another realm", far.loginRefusal(0, 7), 0);
         });
         Edge.of("Section 3 login", "3 there are 24 tickets", () -> {
-            TicketGate gate = Check.loaded(HEAD + FULL + "login u 7;");
+            Gate gate = Check.loaded(HEAD + FULL + "login u 7;");
             Check.same("23", gate.loginRefusal(0, 7), 0);
             gate.login(0, 7, true);
             Check.same("24", gate.loginRefusal(0, 7), 3);
@@ -112,7 +112,7 @@ final class RuleEdges {
 
     private static void loginResult() {
         Edge.of("Section 3 login", "The result is a gate ticket for the home realm, whose end is the time plus the lifetime of the realm", () -> {
-            TicketGate gate = Check.loaded("gate 0 0;realm a 5 9 even;realm b 1 9 even;realm c 999 9 even;user u b 7 even;user v c 7 even;pass 3;");
+            Gate gate = Check.loaded("gate 0 0;realm a 5 9 even;realm b 1 9 even;realm c 999 9 even;user u b 7 even;user v c 7 even;pass 3;");
             gate.login(0, 7, false);
             gate.login(1, 7, true);
             Check.same("a gate ticket", gate.kindOf(0), TicketGate.FOR_REALM);
@@ -126,7 +126,7 @@ final class RuleEdges {
             int[] renewals = {0, 9, 10, 11, 9999};
             int[] lastEnds = {13, 13, 13, 14, 10002};
             for (int i = 0; i < renewals.length; i++) {
-                TicketGate gate = Check.loaded("gate 0 0;realm a 10 " + renewals[i] + " even;user u a 7 even;pass 3;login u 7 renewable;login u 7;");
+                Gate gate = Check.loaded("gate 0 0;realm a 10 " + renewals[i] + " even;user u a 7 even;pass 3;login u 7 renewable;login u 7;");
                 Check.same("renewable lifetime " + renewals[i], gate.lastEndOf(0), lastEnds[i]);
                 Check.same("it can be renewed", gate.isRenewable(0), true);
                 Check.same("not renewable", gate.lastEndOf(1), 13);
@@ -136,18 +136,18 @@ final class RuleEdges {
 
     private static void refer() {
         Edge.of("Section 3 refer", "1 it is no gate ticket", () -> {
-            TicketGate gate = Check.loaded(HEAD + "login u 7;request 0 s;");
+            Gate gate = Check.loaded(HEAD + "login u 7;request 0 s;");
             Check.same("a gate ticket", gate.referRefusal(0, 1), 0);
             Check.same("a ticket for a service", gate.referRefusal(1, 1), 1);
         });
         Edge.of("Section 3 refer", "2 it is not valid", () -> {
-            TicketGate gate = Check.loaded(HEAD + "login u 7;pass 9;");
+            Gate gate = Check.loaded(HEAD + "login u 7;pass 9;");
             Check.same("the last minute", gate.referRefusal(0, 1), 0);
             gate.pass(1);
             Check.same("the end", gate.referRefusal(0, 1), 2);
         });
         Edge.of("Section 3 refer", "3 the realm of the ticket does not trust the realm", () -> {
-            TicketGate gate = Check.loaded("gate 9 5;realm a 10 20 even;realm b 7 15 even;realm c 7 7 even;trust a b;trust b c;user u a 7 even;"
+            Gate gate = Check.loaded("gate 9 5;realm a 10 20 even;realm b 7 15 even;realm c 7 7 even;trust a b;trust b c;user u a 7 even;"
                     + "login u 7;refer 0 b;");
             Check.same("it does", gate.referRefusal(0, 1), 0);
             Check.same("to itself", gate.referRefusal(0, 0), 3);
@@ -156,7 +156,7 @@ final class RuleEdges {
             Check.same("by the realm of the ticket, which is not the home realm", gate.referRefusal(1, 2), 0);
         });
         Edge.of("Section 3 refer", "4 the skew of the owner and the realm of the ticket is greater than the tolerance", () -> {
-            TicketGate gate = Check.loaded(HEAD + "login u 7;");
+            Gate gate = Check.loaded(HEAD + "login u 7;");
             int[] refusals = {4, 0, 0, 0, 4};
             for (int offset = -2; offset <= 2; offset++) {
                 gate.setClock(0, offset);
@@ -164,13 +164,13 @@ final class RuleEdges {
             }
         });
         Edge.of("Section 3 refer", "5 there are 24 tickets", () -> {
-            TicketGate gate = Check.loaded(HEAD + FULL + "login u 7;");
+            Gate gate = Check.loaded(HEAD + FULL + "login u 7;");
             Check.same("23", gate.referRefusal(0, 1), 0);
             Check.same("the 24th", gate.refer(0, 1), 23);
             Check.same("24", gate.referRefusal(0, 1), 5);
         });
         Edge.of("Section 3 refer", "The result is a gate ticket for the realm with the same owner", () -> {
-            TicketGate gate = Check.loaded("gate 9 5;realm a 10 20 even;realm b 7 15 even;trust a b;user v b 7 even;user u a 7 even;login u 7;");
+            Gate gate = Check.loaded("gate 9 5;realm a 10 20 even;realm b 7 15 even;trust a b;user v b 7 even;user u a 7 even;login u 7;");
             Check.same("number", gate.refer(0, 1), 1);
             Check.same("kind", gate.kindOf(1), TicketGate.FOR_REALM);
             Check.same("no service", gate.serviceOf(1), TicketGate.NONE);
@@ -182,18 +182,18 @@ final class RuleEdges {
 
     private static void request() {
         Edge.of("Section 3 request", "1 it is no gate ticket", () -> {
-            TicketGate gate = Check.loaded(HEAD + "login u 7;request 0 s;");
+            Gate gate = Check.loaded(HEAD + "login u 7;request 0 s;");
             Check.same("a gate ticket", gate.requestRefusal(0, 0), 0);
             Check.same("a ticket for this service", gate.requestRefusal(1, 0), 1);
         });
         Edge.of("Section 3 request", "2 it is not valid", () -> {
-            TicketGate gate = Check.loaded(HEAD + "login u 7;pass 9;");
+            Gate gate = Check.loaded(HEAD + "login u 7;pass 9;");
             Check.same("the last minute", gate.requestRefusal(0, 0), 0);
             gate.pass(1);
             Check.same("the end", gate.requestRefusal(0, 0), 2);
         });
         Edge.of("Section 3 request", "3 its realm is not that of the service", () -> {
-            TicketGate gate = Check.loaded("gate 9 5;realm a 9 9 even;realm b 7 7 even;trust a b;user u a 7 even;service s a 2;service t b 2;"
+            Gate gate = Check.loaded("gate 9 5;realm a 9 9 even;realm b 7 7 even;trust a b;user u a 7 even;service s a 2;service t b 2;"
                     + "login u 7;refer 0 b;");
             Check.same("a, s", gate.requestRefusal(0, 0), 0);
             Check.same("a, t", gate.requestRefusal(0, 1), 3);
@@ -201,7 +201,7 @@ final class RuleEdges {
             Check.same("b, t", gate.requestRefusal(1, 1), 0);
         });
         Edge.of("Section 3 request", "4 the skew of the owner and the realm of the ticket is greater than the tolerance", () -> {
-            TicketGate gate = Check.loaded(HEAD + "login u 7;refer 0 b;");
+            Gate gate = Check.loaded(HEAD + "login u 7;refer 0 b;");
             int[] ofA = {4, 0, 0, 0, 4, 4, 4};
             int[] ofB = {4, 4, 4, 0, 0, 0, 4};
             for (int offset = -2; offset <= 4; offset++) {
@@ -211,13 +211,13 @@ final class RuleEdges {
             }
         });
         Edge.of("Section 3 request", "5 there are 24 tickets", () -> {
-            TicketGate gate = Check.loaded(HEAD + FULL + "login u 7;");
+            Gate gate = Check.loaded(HEAD + FULL + "login u 7;");
             Check.same("23", gate.requestRefusal(0, 0), 0);
             Check.same("the 24th", gate.request(0, 0), 23);
             Check.same("24", gate.requestRefusal(0, 0), 5);
         });
         Edge.of("Section 3 request", "The result is a ticket for the service with the same owner and realm", () -> {
-            TicketGate gate = Check.loaded("gate 9 5;realm b 7 15 even;realm a 10 20 even;user v b 7 even;user u a 7 even;service t b 1;"
+            Gate gate = Check.loaded("gate 9 5;realm b 7 15 even;realm a 10 20 even;user v b 7 even;user u a 7 even;service t b 1;"
                     + "service s a 0;login u 7;");
             Check.same("a service without cheeses", gate.request(0, 1), 1);
             Check.same("kind", gate.kindOf(1), TicketGate.FOR_SERVICE);
@@ -229,18 +229,18 @@ final class RuleEdges {
 
     private static void renew() {
         Edge.of("Section 3 renew", "1 it is not renewable", () -> {
-            TicketGate gate = Check.loaded(HEAD + "login u 7 renewable;login u 7;pass 1;");
+            Gate gate = Check.loaded(HEAD + "login u 7 renewable;login u 7;pass 1;");
             Check.same("renewable", gate.renewRefusal(0), 0);
             Check.same("not renewable", gate.renewRefusal(1), 1);
         });
         Edge.of("Section 3 renew", "2 it is not valid", () -> {
-            TicketGate gate = Check.loaded(HEAD + "login u 7 renewable;pass 9;");
+            Gate gate = Check.loaded(HEAD + "login u 7 renewable;pass 9;");
             Check.same("the last minute", gate.renewRefusal(0), 0);
             gate.pass(1);
             Check.same("the end", gate.renewRefusal(0), 2);
         });
         Edge.of("Section 3 renew", "3 its new end would not be greater than its end", () -> {
-            TicketGate gate = Check.loaded(HEAD + "login u 7 renewable;");
+            Gate gate = Check.loaded(HEAD + "login u 7 renewable;");
             Check.same("in the same minute", gate.renewRefusal(0), 3);
             gate.pass(1);
             Check.same("a minute later", gate.renewRefusal(0), 0);
@@ -256,7 +256,7 @@ final class RuleEdges {
             Check.same("the last end is not greater", gate.renewRefusal(0), 3);
         });
         Edge.of("Section 3 renew", "The new end is the time plus the lifetime of its realm, but at most the last end", () -> {
-            TicketGate gate = Check.loaded(HEAD + "login u 7 renewable;refer 0 b;pass 6;");
+            Gate gate = Check.loaded(HEAD + "login u 7 renewable;refer 0 b;pass 6;");
             Check.same("of the realm b", gate.renew(1), 13);
             gate.pass(2);
             Check.same("exactly the last end", gate.renew(1), 15);
@@ -267,7 +267,7 @@ final class RuleEdges {
             Check.same("the last end stays", gate.lastEndOf(1), 15);
         });
         Edge.of("Section 3 renew", "a new key is drawn", () -> {
-            TicketGate gate = Check.loaded(HEAD + "login u 7 renewable;pass 1;");
+            Gate gate = Check.loaded(HEAD + "login u 7 renewable;pass 1;");
             int seed = gate.seed();
             gate.renew(0);
             Check.same("key", gate.keyOf(0), (21 * seed + 7) % 1024);
@@ -279,18 +279,18 @@ final class RuleEdges {
 
     private static void cheese() {
         Edge.of("Section 3 cheese", "1 it is no ticket for a service", () -> {
-            TicketGate gate = Check.loaded(HEAD + "login u 7;request 0 s;");
+            Gate gate = Check.loaded(HEAD + "login u 7;request 0 s;");
             Check.same("a gate ticket", gate.cheeseRefusal(0), 1);
             Check.same("a ticket for a service", gate.cheeseRefusal(1), 0);
         });
         Edge.of("Section 3 cheese", "2 it is not valid", () -> {
-            TicketGate gate = Check.loaded(HEAD + "login u 7;request 0 s;pass 9;");
+            Gate gate = Check.loaded(HEAD + "login u 7;request 0 s;pass 9;");
             Check.same("the last minute", gate.cheeseRefusal(1), 0);
             gate.pass(1);
             Check.same("the end", gate.cheeseRefusal(1), 2);
         });
         Edge.of("Section 3 cheese", "3 the skew of the owner and the realm of the ticket is greater than the tolerance", () -> {
-            TicketGate gate = Check.loaded(HEAD + "login u 7;request 0 s;refer 0 b;");
+            Gate gate = Check.loaded(HEAD + "login u 7;request 0 s;refer 0 b;");
             gate.setClock(0, 1);
             gate.request(2, 1);
             int[] ofA = {3, 0, 0, 0, 3, 3, 3};
@@ -302,7 +302,7 @@ final class RuleEdges {
             }
         });
         Edge.of("Section 3 cheese", "4 a use with the same user, service, and time on the clock of the user is remembered", () -> {
-            TicketGate gate = Check.loaded("gate 1 5;realm a 10 20 even;user u a 7 even;user v a 7 even;service s a 9;service t a 9;"
+            Gate gate = Check.loaded("gate 1 5;realm a 10 20 even;user u a 7 even;user v a 7 even;service s a 9;service t a 9;"
                     + "login u 7;request 0 s;request 0 s;request 0 t;login v 7;request 4 s;cheese 1;");
             Check.same("the same ticket", gate.cheeseRefusal(1), 4);
             Check.same("another ticket for it", gate.cheeseRefusal(2), 4);
@@ -316,7 +316,7 @@ final class RuleEdges {
             Check.same("the same time on the clock, a minute later", gate.cheeseRefusal(1), 4);
         });
         Edge.of("Section 3 cheese", "5 the service has no cheeses", () -> {
-            TicketGate gate = Check.loaded("gate 1 5;realm a 10 20 even;user u a 7 even;service s a 1;login u 7;request 0 s;");
+            Gate gate = Check.loaded("gate 1 5;realm a 10 20 even;user u a 7 even;service s a 1;login u 7;request 0 s;");
             Check.same("one", gate.cheeseRefusal(1), 0);
             gate.cheese(1);
             gate.pass(1);
@@ -326,7 +326,7 @@ final class RuleEdges {
 
     private static void cheeseGiven() {
         Edge.of("Section 3 cheese", "The service has one cheese less, the owner one more, and the use is remembered", () -> {
-            TicketGate gate = Check.loaded("gate 1 5;realm a 10 20 even;user v a 7 even;user u a 7 even;service t a 1;service s a 1;"
+            Gate gate = Check.loaded("gate 1 5;realm a 10 20 even;user v a 7 even;user u a 7 even;service t a 1;service s a 1;"
                     + "login u 7;request 0 s;");
             gate.cheese(1);
             Check.same("the last one is gone", gate.cheesesLeft(1), 0);
@@ -339,7 +339,7 @@ final class RuleEdges {
 
     private static void inherited() {
         Edge.of("Section 3", "For refer and request, the new ticket is renewable if the old one is.", () -> {
-            TicketGate gate = Check.loaded(HEAD + "login u 7;login u 7 renewable;refer 0 b;refer 1 b;request 0 s;request 1 s;");
+            Gate gate = Check.loaded(HEAD + "login u 7;login u 7 renewable;refer 0 b;refer 1 b;request 0 s;request 1 s;");
             for (int t = 2; t < 6; t++) {
                 Check.same("ticket " + t, gate.isRenewable(t), t % 2 == 1);
             }
@@ -348,7 +348,7 @@ final class RuleEdges {
             int[] lifetimes = {1, 6, 7, 8, 999};
             int[] ends = {4, 9, 10, 10, 10};
             for (int i = 0; i < lifetimes.length; i++) {
-                TicketGate gate = Check.loaded("gate 9 5;realm a 10 20 even;realm b " + lifetimes[i] + " 0 even;trust a b;user u a 7 even;"
+                Gate gate = Check.loaded("gate 9 5;realm a 10 20 even;realm b " + lifetimes[i] + " 0 even;trust a b;user u a 7 even;"
                         + "service s a 1;login u 7;pass 3;refer 0 b;request 0 s;");
                 Check.same("refer, lifetime " + lifetimes[i], gate.endOf(1), ends[i]);
                 Check.same("request", gate.endOf(2), 10);
@@ -360,7 +360,7 @@ final class RuleEdges {
             int[] renewals = {0, 4, 5, 6, 16, 17, 18, 9999};
             int[] lastEnds = {8, 8, 8, 9, 19, 20, 20, 20};
             for (int i = 0; i < renewals.length; i++) {
-                TicketGate gate = Check.loaded("gate 9 5;realm a 10 20 even;realm b 5 " + renewals[i] + " even;trust a b;user u a 7 even;"
+                Gate gate = Check.loaded("gate 9 5;realm a 10 20 even;realm b 5 " + renewals[i] + " even;trust a b;user u a 7 even;"
                         + "service s a 1;login u 7 renewable;pass 3;refer 0 b;request 0 s;login u 7;refer 3 b;");
                 Check.same("refer, renewable lifetime " + renewals[i], gate.lastEndOf(1), lastEnds[i]);
                 Check.same("request", gate.lastEndOf(2), 20);
@@ -371,14 +371,14 @@ final class RuleEdges {
 
     private static void uses() {
         Edge.of("Section 3", "A use consists of a user, a service, and the time that the clock of the user showed.", () -> {
-            TicketGate gate = Check.loaded("gate 9 5;realm a 10 20 even;user u a 7 fast 3;service s a 9;login u 7;request 0 s;cheese 1;pass 1;");
+            Gate gate = Check.loaded("gate 9 5;realm a 10 20 even;user u a 7 fast 3;service s a 9;login u 7;request 0 s;cheese 1;pass 1;");
             gate.setClock(0, 2);
             Check.same("the clock shows 3 again", gate.cheeseRefusal(1), 4);
             gate.setClock(0, 3);
             Check.same("it shows 4", gate.cheeseRefusal(1), 0);
             gate.setClock(0, -1);
             Check.same("it shows 0, the time of the use, not of its clock", gate.cheeseRefusal(1), 0);
-            TicketGate least = Check.loaded("gate 9 5;realm a 10 20 even;user u a 7 slow 9;service s a 9;login u 7;request 0 s;cheese 1;");
+            Gate least = Check.loaded("gate 9 5;realm a 10 20 even;user u a 7 slow 9;service s a 9;login u 7;request 0 s;cheese 1;");
             Check.same("a time less than 0", least.cheeseRefusal(1), 4);
             least.setClock(0, 9);
             Check.same("its opposite", least.cheeseRefusal(1), 0);
@@ -391,7 +391,7 @@ final class RuleEdges {
 
     /** In one minute, by the offsets -9 to 9 of the clock, 38 uses of two services. */
     private static void latestUses() {
-        TicketGate gate = Check.loaded("gate 9 5;realm a 10 20 even;user u a 7 even;service s a 99;service t a 99;login u 7;request 0 s;request 0 t;");
+        Gate gate = Check.loaded("gate 9 5;realm a 10 20 even;user u a 7 even;service s a 99;service t a 99;login u 7;request 0 s;request 0 t;");
         for (int use = 0; use < 30; use++) {
             useAt(gate, use);
         }
@@ -411,12 +411,12 @@ final class RuleEdges {
         Check.same("30 uses of 38", gate.useCount(), 30);
     }
 
-    private static void useAt(TicketGate gate, int use) {
+    private static void useAt(Gate gate, int use) {
         gate.setClock(0, use / 2 - 9);
         gate.cheese(1 + use % 2);
     }
 
-    private static int refusalAt(TicketGate gate, int use) {
+    private static int refusalAt(Gate gate, int use) {
         gate.setClock(0, use / 2 - 9);
         return gate.cheeseRefusal(1 + use % 2);
     }
@@ -424,7 +424,7 @@ final class RuleEdges {
     /** The clock is put back by the minutes that have passed, so that it shows the time of the use. */
     private static void usesOfTolerance() {
         for (int tolerance = 0; tolerance <= 9; tolerance++) {
-            TicketGate gate = Check.loaded("gate " + tolerance + " 5;realm a 99 0 slow 9;user u a 7 slow 9;service s a 9;"
+            Gate gate = Check.loaded("gate " + tolerance + " 5;realm a 99 0 slow 9;user u a 7 slow 9;service s a 9;"
                     + "login u 7;request 0 s;");
             gate.setClock(0, tolerance - 9);
             gate.cheese(1);

@@ -25,8 +25,8 @@ final class StateEdges {
     }
 
     /** A gate that has all: remembered calls, a slot, an error, an output, some input, a use, an ended ticket. */
-    private static TicketGate busy() {
-        TicketGate gate = new TicketGate();
+    private static Gate busy() {
+        Gate gate = new Gate();
         Check.answer(() -> Check.load(gate, "gate 2 5;?"));
         gate.save(1);
         gate.writeTicket(2);
@@ -40,8 +40,8 @@ final class StateEdges {
         return gate;
     }
 
-    private static Map<String, Consumer<TicketGate>> undoables() {
-        Map<String, Consumer<TicketGate>> calls = new LinkedHashMap<>();
+    private static Map<String, Consumer<Gate>> undoables() {
+        Map<String, Consumer<Gate>> calls = new LinkedHashMap<>();
         calls.put("load", gate -> Check.load(gate, OTHER));
         calls.put("login", gate -> gate.login(0, 11, true));
         calls.put("refer", gate -> gate.refer(0, 1));
@@ -54,7 +54,7 @@ final class StateEdges {
         });
         calls.put("drop", gate -> gate.drop(0));
         calls.put("drop of an ended one", gate -> gate.drop(1));
-        calls.put("sweep", TicketGate::sweep);
+        calls.put("sweep", Gate::sweep);
         calls.put("setPassword", gate -> gate.setPassword(0, 7));
         calls.put("setClock", gate -> gate.setClock(0, 0));
         calls.put("pass", gate -> gate.pass(1));
@@ -65,7 +65,7 @@ final class StateEdges {
 
     private static void state() {
         Edge.of("Section 6", "The state consists of everything that sections 1 to 3 describe.", () -> {
-            for (Map.Entry<String, Consumer<TicketGate>> call : undoables().entrySet()) {
+            for (Map.Entry<String, Consumer<Gate>> call : undoables().entrySet()) {
                 boolean loads = call.getKey().equals("load");
                 Twin.unchanged(call.getKey() + " and undo", () -> ofFewCalls(loads), gate -> {
                     call.getValue().accept(gate);
@@ -74,7 +74,7 @@ final class StateEdges {
             }
         });
         Edge.of("Section 6", "The state consists of everything that sections 1 to 3 describe.", () -> {
-            TicketGate gate = new TicketGate();
+            Gate gate = new Gate();
             gate.save(0);
             gate.drop(4);
             gate.setPassword(0, 7);
@@ -93,8 +93,8 @@ final class StateEdges {
     }
 
     /** Of busy ones, but with room for one more remembered call; load leaves no error and no input. */
-    private static TicketGate ofFewCalls(boolean loads) {
-        TicketGate gate = busy();
+    private static Gate ofFewCalls(boolean loads) {
+        Gate gate = busy();
         gate.restore(1);
         gate.undo();
         gate.undo();
@@ -109,16 +109,16 @@ final class StateEdges {
         String sentence = "Undoable methods are load if the text has no error, and login, refer, request, renew, cheese, drop, sweep, "
                 + "setPassword, setClock, pass and restore if they throw no exception.";
         Edge.of("Section 6", sentence, () -> {
-            for (Map.Entry<String, Consumer<TicketGate>> call : undoables().entrySet()) {
-                TicketGate gate = new TicketGate();
+            for (Map.Entry<String, Consumer<Gate>> call : undoables().entrySet()) {
+                Gate gate = new Gate();
                 gate.save(1);
                 call.getValue().accept(gate);
                 Check.same("undo after " + call.getKey(), Check.answer(gate::undo), 0);
-                Check.same("state before " + call.getKey(), Check.picture(gate), Check.picture(new TicketGate()));
+                Check.same("state before " + call.getKey(), Check.picture(gate), Check.picture(new Gate()));
             }
         });
         Edge.of("Section 6", sentence, () -> {
-            TicketGate gate = busy();
+            Gate gate = busy();
             int calls = remembered(busy());
             Check.same("remembered", calls, 6);
             refusedCalls().values().forEach(call -> Check.answer(() -> {
@@ -131,7 +131,7 @@ final class StateEdges {
             Check.same("as many as before", remembered(gate), calls);
         });
         Edge.of("Section 6", sentence, () -> {
-            TicketGate gate = new TicketGate();
+            Gate gate = new Gate();
             gate.sweep();
             gate.setPassword(0, 11);
             gate.setClock(0, -1);
@@ -141,7 +141,7 @@ final class StateEdges {
         });
     }
 
-    private static int remembered(TicketGate gate) {
+    private static int remembered(Gate gate) {
         int calls = 0;
         while (Check.answer(gate::undo) instanceof Integer) {
             calls++;
@@ -152,7 +152,7 @@ final class StateEdges {
     private static void latestEight() {
         Edge.of("Section 6", "The latest 8 undoable calls are remembered; load does not discard them.", () -> {
             for (int calls = 0; calls <= 25; calls++) {
-                TicketGate gate = new TicketGate();
+                Gate gate = new Gate();
                 for (int i = 0; i < calls; i++) {
                     gate.pass(1);
                 }
@@ -161,13 +161,13 @@ final class StateEdges {
             }
         });
         Edge.of("Section 6", "The latest 8 undoable calls are remembered; load does not discard them.", () -> {
-            TicketGate gate = new TicketGate();
+            Gate gate = new Gate();
             for (int i = 0; i < 7; i++) {
                 gate.pass(1);
             }
             Check.load(gate, OTHER);
             Check.same("load is the eighth", remembered(gate), 8);
-            Check.same("all are undone", Check.picture(gate), Check.picture(new TicketGate()));
+            Check.same("all are undone", Check.picture(gate), Check.picture(new Gate()));
             for (int i = 0; i < 8; i++) {
                 gate.pass(1);
             }
@@ -179,9 +179,9 @@ final class StateEdges {
             Check.same("a text with an error discards none", remembered(gate), 1);
         });
         Edge.of("Section 6", "Undo restores the state before the latest remembered call.", () -> {
-            TicketGate gate = new TicketGate();
+            Gate gate = new Gate();
             List<String> pictures = new ArrayList<>();
-            for (Consumer<TicketGate> call : List.<Consumer<TicketGate>>of(g -> g.pass(1), g -> g.login(0, 11, true), g -> g.refer(5, 1),
+            for (Consumer<Gate> call : List.<Consumer<Gate>>of(g -> g.pass(1), g -> g.login(0, 11, true), g -> g.refer(5, 1),
                     g -> g.setPassword(1, 7), g -> g.drop(5), g -> Check.load(g, OTHER), g -> g.sweep(), g -> g.setClock(0, 9))) {
                 pictures.add(Check.picture(gate));
                 call.accept(gate);
@@ -192,7 +192,7 @@ final class StateEdges {
             }
         });
         Edge.of("Section 6", "Undo restores the state before the latest remembered call.", () -> {
-            TicketGate gate = new TicketGate();
+            Gate gate = new Gate();
             for (int i = 0; i < 8; i++) {
                 gate.pass(1);
             }
@@ -210,7 +210,7 @@ final class StateEdges {
     private static void outside() {
         Edge.of("Section 6", "The input buffer, the error, the output and the saved states are not part of the state.", () -> {
             for (String way : new String[] {"undo", "restore"}) {
-                TicketGate gate = new TicketGate();
+                Gate gate = new Gate();
                 gate.save(0);
                 gate.pass(1);
                 Check.answer(() -> Check.load(gate, "gate 2 5;?"));
@@ -227,8 +227,8 @@ final class StateEdges {
         });
     }
 
-    private static Map<String, Consumer<TicketGate>> refusedCalls() {
-        Map<String, Consumer<TicketGate>> calls = new LinkedHashMap<>();
+    private static Map<String, Consumer<Gate>> refusedCalls() {
+        Map<String, Consumer<Gate>> calls = new LinkedHashMap<>();
         calls.put("truncateInput", gate -> gate.truncateInput(4));
         calls.put("login, refused", gate -> gate.login(0, 12, true));
         calls.put("login, no user", gate -> gate.login(2, 11, true));
@@ -263,7 +263,7 @@ final class StateEdges {
 
     private static void throwing() {
         Edge.of("Section 6", "A method that throws an exception changes nothing, unless its description says otherwise.", () -> {
-            for (Map.Entry<String, Consumer<TicketGate>> call : refusedCalls().entrySet()) {
+            for (Map.Entry<String, Consumer<Gate>> call : refusedCalls().entrySet()) {
                 Object answer = Check.answer(() -> {
                     call.getValue().accept(busy());
                     return 0;
@@ -274,9 +274,9 @@ final class StateEdges {
                     return 0;
                 }));
             }
-            Twin.unchanged("undo of none", TicketGate::new, gate -> Check.answer(gate::undo));
+            Twin.unchanged("undo of none", Gate::new, gate -> Check.answer(gate::undo));
             Twin.unchanged("append to a full buffer", () -> {
-                TicketGate gate = busy();
+                Gate gate = busy();
                 Check.put(gate, " ".repeat(590));
                 return gate;
             }, gate -> Check.answer(() -> gate.appendInput(0, 0, 0, 0, 0)));
@@ -285,7 +285,7 @@ final class StateEdges {
 
     private static void firstException() {
         Edge.of("Section 6", "If several exceptions apply, the one that is listed first in the throws clause is thrown.", () -> {
-            TicketGate gate = Check.loaded("gate 0 5;realm a 10 20 even;user u a 7 even;service s a 2;" + "login u 7;".repeat(24) + "pass 10;");
+            Gate gate = Check.loaded("gate 0 5;realm a 10 20 even;user u a 7 even;service s a 2;" + "login u 7;".repeat(24) + "pass 10;");
             Check.fails("loginRefusal, user and password", Check.INDEX, () -> gate.loginRefusal(1, 10000));
             Check.fails("login, all three", Check.INDEX, () -> gate.login(1, 10000, true));
             Check.fails("login, user and password", Check.INDEX, () -> gate.login(-1, -1, true));
@@ -306,10 +306,10 @@ final class StateEdges {
     private static void questions() {
         Edge.of("Section 6", "Methods that ask a question change nothing.", () -> {
             Twin.unchanged("all questions", StateEdges::busy, Check::picture);
-            Map<String, Consumer<TicketGate>> calls = new LinkedHashMap<>();
-            calls.put("errorCode", TicketGate::errorCode);
-            calls.put("errorPosition", TicketGate::errorPosition);
-            calls.put("findName", TicketGate::findName);
+            Map<String, Consumer<Gate>> calls = new LinkedHashMap<>();
+            calls.put("errorCode", Gate::errorCode);
+            calls.put("errorPosition", Gate::errorPosition);
+            calls.put("findName", Gate::findName);
             calls.put("loginRefusal", gate -> gate.loginRefusal(0, 11));
             calls.put("referRefusal", gate -> gate.referRefusal(0, 1));
             calls.put("requestRefusal", gate -> gate.requestRefusal(0, 1));
@@ -319,7 +319,7 @@ final class StateEdges {
             calls.put("minutesUntilCheese without end", gate -> gate.minutesUntilCheese(0));
             calls.put("validAfter", gate -> gate.validAfter(999));
             calls.put("bestTicket", gate -> gate.bestTicket(1, 0));
-            calls.put("distanceErrors", TicketGate::distanceErrors);
+            calls.put("distanceErrors", Gate::distanceErrors);
             calls.put("nextRealm", gate -> gate.nextRealm(0, 2));
             calls.put("outputByte", gate -> gate.outputByte(0));
             calls.forEach((name, call) -> Twin.unchanged(name, StateEdges::busy, call));
@@ -330,14 +330,14 @@ final class StateEdges {
     private static void future() {
         Edge.of("Section 6", "A question about the future assumes that only minutes pass.", () -> {
             for (int minutes : new int[] {1, 2, 3, 10, 22, 36, 38, 39, 40, 54, 55, 998, 999}) {
-                TicketGate gate = busy();
+                Gate gate = busy();
                 gate.pass(minutes);
                 Check.same("valid after " + minutes, busy().validAfter(minutes), gate.validTickets());
             }
             for (int ticket = 0; ticket < 8; ticket++) {
                 Check.same("cheese for " + ticket, busy().minutesUntilCheese(ticket), waited(busy(), ticket));
             }
-            TicketGate gate = Check.loaded("gate 3 5;realm a 99 0 even;user u a 7 fast 3;service s a 9;login u 7;request 0 s;");
+            Gate gate = Check.loaded("gate 3 5;realm a 99 0 even;user u a 7 fast 3;service s a 9;login u 7;request 0 s;");
             for (int offset = 3; offset >= 0; offset--) {
                 gate.setClock(0, offset);
                 gate.cheese(1);
@@ -347,7 +347,7 @@ final class StateEdges {
         });
     }
 
-    private static int waited(TicketGate gate, int ticket) {
+    private static int waited(Gate gate, int ticket) {
         for (int minutes = 0; minutes <= 20; minutes++) {
             if (gate.cheeseRefusal(ticket) == 0) {
                 return minutes;
@@ -365,7 +365,7 @@ final class StateEdges {
         Edge.of("Section 6", sentence, () -> {
             String text = sentence.substring(sentence.indexOf('"') + 1, sentence.lastIndexOf('"'));
             String due = Check.picture(Check.loaded(text));
-            TicketGate gate = new TicketGate();
+            Gate gate = new Gate();
             Check.same("at first", Check.picture(gate), due);
             Check.answer(() -> Check.load(gate, "gate 9 9;x"));
             Check.same("after a load that was not successful", Check.picture(gate), due);

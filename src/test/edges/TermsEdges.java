@@ -22,7 +22,7 @@ final class TermsEdges {
                 + "along trust, request tickets for services, renew them, and get cheeses for fresh tickets if their clocks agree and the same "
                 + "request was not made before.";
         Edge.of("What it is", sentence, () -> {
-            TicketGate gate = Check.loaded(HEAD + "trust a b;service t b 2;");
+            Gate gate = Check.loaded(HEAD + "trust a b;service t b 2;");
             Check.same("log in", gate.login(0, 7, true), 0);
             Check.same("referred", gate.refer(0, 1), 1);
             Check.same("request", gate.request(1, 1), 2);
@@ -40,12 +40,12 @@ final class TermsEdges {
 
     private static void calls() {
         Edge.of("What it is", "An object is used for at most 512 calls after it has been made; what later calls answer is free.", () -> {
-            TicketGate late = new TicketGate();
+            Gate late = new Gate();
             for (int call = 1; call <= 511; call++) {
                 late.pass(999);
             }
             Check.same("the latest time there can be, by the 512th call", late.time(), 6 + 511 * 999);
-            TicketGate many = new TicketGate();
+            Gate many = new Gate();
             for (int call = 1; call <= 510; call += 2) {
                 Check.same("a number", many.login(0, 11, false), 5 + call / 2);
                 many.drop(5 + call / 2);
@@ -57,10 +57,10 @@ final class TermsEdges {
 
     private static void gate() {
         Edge.of("Section 1", "The gate has a time in minutes, 0 at first, a tolerance (0 to 9 minutes), and a seed (0 to 1023).", () -> {
-            TicketGate least = Check.loaded("gate 0 0;");
+            Gate least = Check.loaded("gate 0 0;");
             Check.same("time at first", least.time(), 0);
             Check.same("least seed", least.seed(), 0);
-            TicketGate most = Check.loaded("gate 9 1023;");
+            Gate most = Check.loaded("gate 9 1023;");
             Check.same("time at first", most.time(), 0);
             Check.same("greatest seed", most.seed(), 1023);
             Check.error("gate 10 5;", 2, 5);
@@ -73,8 +73,8 @@ final class TermsEdges {
     }
 
     /** The realm's clock is slow, so that a skew greater than the greatest offset can be set. */
-    private static TicketGate skewed(int tolerance, int skew) {
-        TicketGate gate = Check.loaded("gate " + tolerance + " 0;realm a 1 0 slow 3;user u a 7 slow 3;");
+    private static Gate skewed(int tolerance, int skew) {
+        Gate gate = Check.loaded("gate " + tolerance + " 0;realm a 1 0 slow 3;user u a 7 slow 3;");
         gate.setClock(0, skew - 3);
         return gate;
     }
@@ -82,7 +82,7 @@ final class TermsEdges {
     private static void realms() {
         Edge.of("Section 1", "There are at most 5 realms, numbered from 0.", () -> {
             String five = "gate 0 0;realm a 1 0 even;realm b 1 0 even;realm c 1 0 even;realm d 1 0 even;realm e 1 0 even;";
-            TicketGate gate = Check.loaded(five);
+            Gate gate = Check.loaded(five);
             Check.same("five", gate.realmCount(), 5);
             Check.same("the first one", Check.find(gate, "a"), 0);
             Check.same("the last one", Check.find(gate, "e"), 4);
@@ -91,7 +91,7 @@ final class TermsEdges {
         String sentence = "A realm has a name, a lifetime (1 to 999 minutes), a renewable lifetime (0 to 9999 minutes), "
                 + "and an offset of its clock (-9 to 9); its clock shows the time plus the offset.";
         Edge.of("Section 1", sentence, () -> {
-            TicketGate gate = Check.loaded("gate 0 0;realm a 1 0 slow 9;realm b 999 9999 fast 9;realm c 999 0 even;user u c 7 even;"
+            Gate gate = Check.loaded("gate 0 0;realm a 1 0 slow 9;realm b 999 9999 fast 9;realm c 999 0 even;user u c 7 even;"
                     + "user v a 7 slow 9;user w b 7 fast 9;login u 7 renewable;login v 7 renewable;login w 7 renewable;");
             Check.same("least lifetime", gate.lifetimeOf(0), 1);
             Check.same("greatest lifetime", gate.lifetimeOf(1), 999);
@@ -110,11 +110,11 @@ final class TermsEdges {
             Check.error("gate 0 0;realm a 1 0 slow 10;", 2, 26);
         });
         Edge.of("Section 1", "A realm can trust another one, in one direction.", () -> {
-            TicketGate gate = Check.loaded(HEAD + "trust a b;");
+            Gate gate = Check.loaded(HEAD + "trust a b;");
             Check.same("a to b", gate.trusts(0, 1), true);
             Check.same("b to a", gate.trusts(1, 0), false);
             Check.same("a to a", gate.trusts(0, 0), false);
-            TicketGate both = Check.loaded(HEAD + "trust a b;trust b a;");
+            Gate both = Check.loaded(HEAD + "trust a b;trust b a;");
             Check.same("both directions are two", both.trusts(0, 1) && both.trusts(1, 0), true);
             Check.error(HEAD + "trust a a;", 3, HEAD.length() + 8);
         });
@@ -123,7 +123,7 @@ final class TermsEdges {
     private static void users() {
         Edge.of("Section 1", "There are at most 6 users, numbered from 0.", () -> {
             String six = "gate 0 0;realm r 1 0 even;user a r 1 even;user b r 1 even;user c r 1 even;user d r 1 even;user e r 1 even;user f r 1 even;";
-            TicketGate gate = Check.loaded(six);
+            Gate gate = Check.loaded(six);
             Check.same("six", gate.userCount(), 6);
             Check.same("the first one", Check.find(gate, "a"), 100);
             Check.same("the last one", Check.find(gate, "f"), 105);
@@ -132,7 +132,7 @@ final class TermsEdges {
         String sentence = "A user has a name, a home realm, a password (0 to 9999), an offset of the own clock (-9 to 9), "
                 + "and a number of cheeses, 0 at first.";
         Edge.of("Section 1", sentence, () -> {
-            TicketGate gate = Check.loaded("gate 9 0;realm a 1 0 even;realm b 1 0 even;user u a 0 slow 9;user v b 9999 fast 9;");
+            Gate gate = Check.loaded("gate 9 0;realm a 1 0 even;realm b 1 0 even;user u a 0 slow 9;user v b 9999 fast 9;");
             Check.same("home", gate.homeOf(0), 0);
             Check.same("the other home", gate.homeOf(1), 1);
             Check.same("least password", gate.loginRefusal(0, 0), 0);
@@ -150,14 +150,14 @@ final class TermsEdges {
     private static void services() {
         String six = "gate 0 0;realm r 1 0 even;service a r 1;service b r 1;service c r 1;service d r 1;service e r 1;service f r 1;";
         Edge.of("Section 1", "There are at most 6 services, numbered from 0.", () -> {
-            TicketGate gate = Check.loaded(six);
+            Gate gate = Check.loaded(six);
             Check.same("six", gate.serviceCount(), 6);
             Check.same("the first one", Check.find(gate, "a"), 200);
             Check.same("the last one", Check.find(gate, "f"), 205);
             Check.error(six + "service g r 1;", 5, six.length());
         });
         Edge.of("Section 1", "A service has a name, a realm, and cheeses (0 to 99).", () -> {
-            TicketGate gate = Check.loaded("gate 0 0;realm a 1 0 even;realm b 1 0 even;service s b 0;service t a 99;");
+            Gate gate = Check.loaded("gate 0 0;realm a 1 0 even;realm b 1 0 even;service s b 0;service t a 99;");
             Check.same("realm", gate.realmOfService(0), 1);
             Check.same("least cheeses", gate.cheesesLeft(0), 0);
             Check.same("greatest cheeses", gate.cheesesLeft(1), 99);
@@ -167,7 +167,7 @@ final class TermsEdges {
 
     private static void names() {
         Edge.of("Section 1", "Names have 1 to 4 letters, and no two realms, users or services have the same name.", () -> {
-            TicketGate gate = Check.loaded("gate 0 0;realm a 1 0 even;realm zzzz 1 0 even;user z a 7 even;user aaaa a 7 even;"
+            Gate gate = Check.loaded("gate 0 0;realm a 1 0 even;realm zzzz 1 0 even;user z a 7 even;user aaaa a 7 even;"
                     + "service az a 1;service azaz a 1;");
             Check.same("one letter", Check.find(gate, "a"), 0);
             Check.same("four letters", Check.find(gate, "zzzz"), 1);
@@ -183,7 +183,7 @@ final class TermsEdges {
             }
         });
         Edge.of("Section 1", "The skew of a user and a realm is the difference of their offsets without sign.", () -> {
-            TicketGate gate = Check.loaded("gate 0 0;realm a 1 0 slow 9;realm b 1 0 fast 9;user u a 7 fast 9;user v a 7 slow 9;");
+            Gate gate = Check.loaded("gate 0 0;realm a 1 0 slow 9;realm b 1 0 fast 9;user u a 7 fast 9;user v a 7 slow 9;");
             Check.same("greatest, the user is fast", gate.skew(0, 0), 18);
             Check.same("greatest, the user is slow", gate.skew(1, 1), 18);
             Check.same("least", gate.skew(0, 1), 0);
@@ -197,7 +197,7 @@ final class TermsEdges {
     private static void numbers() {
         Edge.of("Section 2", "There are at most 24 tickets.", () -> {
             String head = "gate 0 0;realm a 9 9 even;realm b 9 9 even;trust a b;user u a 7 even;service s a 1;" + "login u 7;".repeat(23);
-            TicketGate gate = Check.loaded(head);
+            Gate gate = Check.loaded(head);
             Check.same("the 24th", gate.login(0, 7, false), 23);
             Check.same("24", gate.ticketCount(), 24);
             Check.fails("a 25th login", Check.STATE, () -> gate.login(0, 7, false));
@@ -210,7 +210,7 @@ final class TermsEdges {
                 + "a kind (0 a gate ticket for a realm, 1 a ticket for a service), an owner, which is a user, a realm, a service if it is "
                 + "of the kind 1, a start, an end, a last end, a key, and the flag renewable or not.";
         Edge.of("Section 2", sentence, () -> {
-            TicketGate gate = Check.loaded(HEAD + "trust a b;");
+            Gate gate = Check.loaded(HEAD + "trust a b;");
             Check.same("the first number", gate.login(0, 7, false), 0);
             Check.same("a request's", gate.request(0, 0), 1);
             Check.same("a referral's", gate.refer(0, 1), 2);
@@ -233,13 +233,13 @@ final class TermsEdges {
 
     private static void lives() {
         Edge.of("Section 2", "It is valid if the time is less than its end.", () -> {
-            TicketGate gate = Check.loaded(HEAD + "login u 7;pass 9;");
+            Gate gate = Check.loaded(HEAD + "login u 7;pass 9;");
             Check.same("a minute before the end", gate.isValid(0), true);
             gate.pass(1);
             Check.same("at the end", gate.isValid(0), false);
         });
         Edge.of("Section 2", "Tickets that are not valid any more stay until they are dropped or swept away.", () -> {
-            TicketGate gate = Check.loaded(HEAD + "login u 7;login u 7;pass 10;");
+            Gate gate = Check.loaded(HEAD + "login u 7;login u 7;pass 10;");
             Check.same("they are there at their end", gate.ticketCount(), 2);
             gate.pass(999);
             Check.same("and long after it", gate.ticketCount(), 2);
@@ -248,18 +248,17 @@ final class TermsEdges {
             Check.same("none is left", gate.ticketCount(), 0);
         });
         Edge.of("Section 2", "To make a ticket draws a key: the seed becomes (21 * seed + 7) modulo 1024, and the key is the new seed.", () -> {
-            TicketGate gate = new TicketGate();
             for (int seed = 0; seed < 1024; seed++) {
-                Check.load(gate, "gate 0 " + seed + ";realm a 1 0 even;user u a 7 even;login u 7;");
+                Gate gate = Check.loaded("gate 0 " + seed + ";realm a 1 0 even;user u a 7 even;login u 7;");
                 Check.same("key after the seed " + seed, gate.keyOf(0), (21 * seed + 7) % 1024);
                 Check.same("seed after " + seed, gate.seed(), gate.keyOf(0));
             }
-            Check.load(gate, "gate 0 1023;realm a 1 0 even;user u a 7 even;");
+            Gate gate = Check.loaded("gate 0 1023;realm a 1 0 even;user u a 7 even;");
             Check.fails("wrong password", Check.STATE, () -> gate.login(0, 8, false));
             Check.same("a refused login draws none", gate.seed(), 1023);
         });
         Edge.of("Section 2", "To make a ticket draws a key: the seed becomes (21 * seed + 7) modulo 1024, and the key is the new seed.", () -> {
-            TicketGate gate = Check.loaded(HEAD + "login u 7;request 0 s;");
+            Gate gate = Check.loaded(HEAD + "login u 7;request 0 s;");
             int seed = gate.seed();
             gate.cheese(1);
             gate.drop(1);
@@ -271,14 +270,14 @@ final class TermsEdges {
             Check.same("calls that make none draw none", gate.seed(), seed);
         });
         Edge.of("Section 2", "The start is the time.", () -> {
-            TicketGate gate = Check.loaded(HEAD + "trust a b;login u 7;pass 9;refer 0 b;request 0 s;login u 7;");
+            Gate gate = Check.loaded(HEAD + "trust a b;login u 7;pass 9;refer 0 b;request 0 s;login u 7;");
             Check.same("at the time 0", gate.startOf(0), 0);
             Check.same("of a referral", gate.startOf(1), 9);
             Check.same("of a request", gate.startOf(2), 9);
             Check.same("of a login", gate.startOf(3), 9);
         });
         Edge.of("Section 2", "The last end of a ticket that is not renewable is its end.", () -> {
-            TicketGate gate = Check.loaded(HEAD + "trust a b;login u 7;pass 3;refer 0 b;request 0 s;login u 7;");
+            Gate gate = Check.loaded(HEAD + "trust a b;login u 7;pass 3;refer 0 b;request 0 s;login u 7;");
             for (int t = 0; t < 4; t++) {
                 Check.same("ticket " + t, gate.lastEndOf(t), gate.endOf(t));
             }

@@ -28,22 +28,22 @@ final class TextEdges {
         Edge.of("Section 4", sentence, () -> {
             String ring = "gate 0 0;realm a 1 0 even;realm b 1 0 even;realm c 1 0 even;realm d 1 0 even;realm e 1 0 even;"
                     + "trust a b;trust b c;trust c d;trust d e;trust e a;";
-            TicketGate gate = Check.loaded(ring);
+            Gate gate = Check.loaded(ring);
             Check.same("to itself, in a ring", gate.distance(0, 0), 0);
             Check.same("to the next one", gate.distance(0, 1), 1);
             Check.same("the greatest", gate.distance(0, 4), 4);
             Check.same("against the ring", gate.distance(1, 0), 4);
-            TicketGate shorter = Check.loaded(ring + "trust a d;");
+            Gate shorter = Check.loaded(ring + "trust a d;");
             Check.same("by a shorter way", shorter.distance(0, 4), 2);
             Check.same("a longer way to the same realm", shorter.distance(0, 3), 1);
-            TicketGate lone = Check.loaded("gate 0 0;realm a 1 0 even;");
+            Gate lone = Check.loaded("gate 0 0;realm a 1 0 even;");
             Check.same("to itself, without trust", lone.distance(0, 0), 0);
         });
     }
 
     private static void buffer() {
         Edge.of("Section 5", "The input buffer holds at most 600 bytes.", () -> {
-            TicketGate gate = new TicketGate();
+            Gate gate = new Gate();
             String text = "gate 2 9" + " ".repeat(MAX_INPUT - 9) + ";";
             Check.same("600 bytes load", Check.load(gate, text), 0);
             Check.same("the last byte was read", gate.seed(), 9);
@@ -109,7 +109,7 @@ final class TextEdges {
 
     private static void names() {
         Edge.of("Section 5", "Any word of 1 to 4 letters can be a name.", () -> {
-            TicketGate gate = Check.loaded("gate 9 0;realm gate 1 0 even;realm even 1 0 fast 1;realm fast 1 0 even;realm slow 1 0 even;"
+            Gate gate = Check.loaded("gate 9 0;realm gate 1 0 even;realm even 1 0 fast 1;realm fast 1 0 even;realm slow 1 0 even;"
                     + "realm q 1 0 even;user user even 7 even;user drop fast 7 slow 2;service pass slow 3;trust gate even;login drop 7;");
             String[] names = {"gate", "even", "fast", "slow", "q", "user", "drop", "pass"};
             int[] codes = {0, 1, 2, 3, 4, 100, 101, 200};
@@ -133,7 +133,7 @@ final class TextEdges {
         String sentence = "CLOCK is the word even (the offset 0), or the word fast or slow and a number from 1 to 9 "
                 + "(the offset is the number or minus the number).";
         Edge.of("Section 5", sentence, () -> {
-            TicketGate gate = Check.loaded("gate 9 0;realm a 1 0 even;realm b 1 0 fast 1;realm c 1 0 fast 9;realm d 1 0 slow 1;realm e 1 0 slow 9;"
+            Gate gate = Check.loaded("gate 9 0;realm a 1 0 even;realm b 1 0 fast 1;realm c 1 0 fast 9;realm d 1 0 slow 1;realm e 1 0 slow 9;"
                     + "user u a 7 even;user v a 7 fast 1;user w a 7 fast 9;user x a 7 slow 1;user y a 7 slow 0009;");
             int[] offsets = {0, 1, 9, -1, -9};
             for (int i = 0; i < offsets.length; i++) {
@@ -172,7 +172,7 @@ final class TextEdges {
         Edge.of("Section 5", "realm NAME LIFETIME RENEWABLE CLOCK ;  adds a realm", () ->
             Check.same("the third one", Check.find(Check.loaded(HEAD + "realm c 1 0 even;"), "c"), 2));
         Edge.of("Section 5", "trust REALM REALM ;                  the first realm trusts the second one", () -> {
-            TicketGate gate = Check.loaded(HEAD + "trust b a;");
+            Gate gate = Check.loaded(HEAD + "trust b a;");
             Check.same("b to a", gate.trusts(1, 0), true);
             Check.same("a to b", gate.trusts(0, 1), false);
         });
@@ -281,7 +281,7 @@ final class TextEdges {
             for (String statement : new String[] {"realm c 1 1 even ;", "realm c 1 1 fast 1 ;", "trust b a ;", "user v a 7 even ;",
                 "user v a 7 slow 1 ;", "service t a 7 ;", "login u 7 ;", "login u 7 renewable ;", "refer 0 b ;", "request 0 s ;",
                 "renew 0 ;", "cheese 1 ;", "drop 0 ;", "sweep ;", "pass 5 ;"}) {
-                Check.same(statement, Check.answer(() -> Check.load(new TicketGate(), head + statement)) instanceof Integer, true);
+                Check.same(statement, Check.answer(() -> Check.load(new Gate(), head + statement)) instanceof Integer, true);
                 wrongTokens(head, statement);
             }
         });

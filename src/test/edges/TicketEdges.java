@@ -20,7 +20,7 @@ final class TicketEdges {
     }
 
     /** Of the numbers 0 to 8, 5, 6 and 7 are there, of which 6 is not valid any more. */
-    private static TicketGate gaps() {
+    private static Gate gaps() {
         return Check.loaded(HEAD + "login u 7;login u 7;login v 7;pass 10;sweep;drop 2;login v 7 renewable;drop 3;login u 7;drop 4;"
                 + "login v 7;login u 7;request 5 t;login u 7;pass 10;drop 8;");
     }
@@ -29,7 +29,7 @@ final class TicketEdges {
         Edge.of("Promise 23", "Returns the number of tickets.", () -> {
             Check.same("none", Check.loaded(HEAD).ticketCount(), 0);
             Check.same("one", Check.loaded(HEAD + "login u 7;").ticketCount(), 1);
-            TicketGate gate = Check.loaded(HEAD + "login u 7;".repeat(24));
+            Gate gate = Check.loaded(HEAD + "login u 7;".repeat(24));
             Check.same("the most", gate.ticketCount(), 24);
             gate.pass(10);
             Check.same("the most, none valid", gate.ticketCount(), 24);
@@ -42,7 +42,7 @@ final class TicketEdges {
 
     private static void indexes() {
         Edge.of("Promise 24", "- `index`: an index, 0 for the ticket with the smallest number", () -> {
-            TicketGate gate = gaps();
+            Gate gate = gaps();
             Check.same("the smallest number", gate.ticketAt(0), 5);
             Check.same("the greatest number", gate.ticketAt(2), 7);
             gate.drop(5);
@@ -52,7 +52,7 @@ final class TicketEdges {
             Check.same("a new one comes last", gate.ticketAt(2), 9);
         });
         Edge.of("Promise 24", "Returns the number of the ticket.", () -> {
-            TicketGate gate = Check.loaded(HEAD + "login v 7;".repeat(24));
+            Gate gate = Check.loaded(HEAD + "login v 7;".repeat(24));
             for (int index = 0; index < 24; index++) {
                 Check.same("index " + index, gate.ticketAt(index), index);
             }
@@ -62,37 +62,37 @@ final class TicketEdges {
             Check.same("the last one", gate.ticketAt(22), 23);
         });
         Edge.of("Promise 24", "Throws `IndexOutOfBoundsException` if there is no such index", () -> {
-            Bounds.counted(() -> Check.loaded(HEAD), 0, Check.INDEX, TicketGate::ticketAt);
-            Bounds.counted(TicketEdges::gaps, 3, Check.INDEX, TicketGate::ticketAt);
-            Bounds.counted(() -> Check.loaded(HEAD + "login u 7;".repeat(24)), 24, Check.INDEX, TicketGate::ticketAt);
+            Bounds.counted(() -> Check.loaded(HEAD), 0, Check.INDEX, Gate::ticketAt);
+            Bounds.counted(TicketEdges::gaps, 3, Check.INDEX, Gate::ticketAt);
+            Bounds.counted(() -> Check.loaded(HEAD + "login u 7;".repeat(24)), 24, Check.INDEX, Gate::ticketAt);
         });
     }
 
     /** The calls of a ticket's number, which throw if there is no ticket with it. */
     private static Map<Integer, Bounds.Numbered> calls() {
         Map<Integer, Bounds.Numbered> calls = new LinkedHashMap<>();
-        calls.put(25, TicketGate::kindOf);
-        calls.put(26, TicketGate::ownerOf);
-        calls.put(27, TicketGate::realmOf);
-        calls.put(28, TicketGate::serviceOf);
-        calls.put(29, TicketGate::startOf);
-        calls.put(30, TicketGate::endOf);
-        calls.put(31, TicketGate::lastEndOf);
-        calls.put(32, TicketGate::keyOf);
-        calls.put(33, TicketGate::isRenewable);
-        calls.put(34, TicketGate::isValid);
-        calls.put(35, TicketGate::minutesLeft);
+        calls.put(25, Gate::kindOf);
+        calls.put(26, Gate::ownerOf);
+        calls.put(27, Gate::realmOf);
+        calls.put(28, Gate::serviceOf);
+        calls.put(29, Gate::startOf);
+        calls.put(30, Gate::endOf);
+        calls.put(31, Gate::lastEndOf);
+        calls.put(32, Gate::keyOf);
+        calls.put(33, Gate::isRenewable);
+        calls.put(34, Gate::isValid);
+        calls.put(35, Gate::minutesLeft);
         calls.put(37, (gate, ticket) -> gate.referRefusal(ticket, 0));
         calls.put(38, (gate, ticket) -> gate.requestRefusal(ticket, 0));
-        calls.put(39, TicketGate::renewRefusal);
-        calls.put(40, TicketGate::cheeseRefusal);
-        calls.put(43, TicketGate::minutesUntilCheese);
+        calls.put(39, Gate::renewRefusal);
+        calls.put(40, Gate::cheeseRefusal);
+        calls.put(43, Gate::minutesUntilCheese);
         calls.put(52, (gate, ticket) -> gate.refer(ticket, 0));
         calls.put(53, (gate, ticket) -> gate.request(ticket, 0));
-        calls.put(54, TicketGate::renew);
-        calls.put(55, TicketGate::cheese);
-        calls.put(56, TicketGate::drop);
-        calls.put(61, TicketGate::writeTicket);
+        calls.put(54, Gate::renew);
+        calls.put(55, Gate::cheese);
+        calls.put(56, Gate::drop);
+        calls.put(61, Gate::writeTicket);
         return calls;
     }
 
@@ -112,7 +112,7 @@ final class TicketEdges {
     }
 
     private static void kinds() {
-        TicketGate gate = Check.loaded(HEAD + "login u 7 renewable;login v 7;refer 0 b;request 0 s;request 1 t;");
+        Gate gate = Check.loaded(HEAD + "login u 7 renewable;login v 7;refer 0 b;request 0 s;request 1 t;");
         Edge.of("Promise 25", "Returns its kind.", () -> {
             Check.same("of a login", gate.kindOf(0), 0);
             Check.same("of a referral", gate.kindOf(2), 0);
@@ -136,26 +136,26 @@ final class TicketEdges {
         Edge.of("Promise 33", "Returns whether it is renewable.", () -> {
             Check.same("of a renewable login", gate.isRenewable(0), true);
             Check.same("of another login", gate.isRenewable(1), false);
-            TicketGate equal = Check.loaded("gate 9 5;realm a 10 0 even;user u a 7 even;login u 7 renewable;pass 10;");
+            Gate equal = Check.loaded("gate 9 5;realm a 10 0 even;user u a 7 even;login u 7 renewable;pass 10;");
             Check.same("its last end is its end, and it is not valid", equal.isRenewable(0), true);
         });
     }
 
     private static void lives() {
-        TicketGate gate = Check.loaded(HEAD + "login u 7 renewable;pass 9;login v 7 renewable;refer 0 b;login v 7;pass 999;login v 7;");
+        Gate gate = Check.loaded(HEAD + "login u 7 renewable;pass 9;login v 7 renewable;refer 0 b;login v 7;pass 999;login v 7;");
         Edge.of("Promise 29", "Returns its start.", () -> {
             Check.same("the least", gate.startOf(0), 0);
             Check.same("later", gate.startOf(1), 9);
             Check.same("of a referral", gate.startOf(2), 9);
             Check.same("after 999 minutes", gate.startOf(4), 1008);
-            TicketGate renewed = Check.loaded(HEAD + "login u 7 renewable;pass 5;renew 0;");
+            Gate renewed = Check.loaded(HEAD + "login u 7 renewable;pass 5;renew 0;");
             Check.same("of a renewed one", renewed.startOf(0), 0);
         });
         Edge.of("Promise 30", "Returns its end.", () -> {
             Check.same("of a short life", gate.endOf(0), 10);
             Check.same("of the longest life", gate.endOf(1), 1008);
             Check.same("of a referral in the last minute", gate.endOf(2), 10);
-            TicketGate renewed = Check.loaded(HEAD + "login u 7 renewable;pass 9;renew 0;");
+            Gate renewed = Check.loaded(HEAD + "login u 7 renewable;pass 9;renew 0;");
             Check.same("of a renewed one", renewed.endOf(0), 19);
         });
         Edge.of("Promise 31", "Returns its last end.", () -> {
@@ -168,14 +168,14 @@ final class TicketEdges {
 
     private static void keys() {
         Edge.of("Promise 32", "Returns its key.", () -> {
-            TicketGate gate = Check.loaded("gate 9 341;realm a 10 20 even;user u a 7 even;service s a 1;login u 7 renewable;request 0 s;");
+            Gate gate = Check.loaded("gate 9 341;realm a 10 20 even;user u a 7 even;service s a 1;login u 7 renewable;request 0 s;");
             Check.same("the least", gate.keyOf(0), 0);
             Check.same("the next one", gate.keyOf(1), 7);
             gate.pass(1);
             gate.renew(0);
             Check.same("of a renewed one", gate.keyOf(0), 154);
             Check.same("of the other one", gate.keyOf(1), 7);
-            TicketGate most = Check.loaded("gate 9 536;realm a 10 20 even;user u a 7 even;login u 7;login u 7;");
+            Gate most = Check.loaded("gate 9 536;realm a 10 20 even;user u a 7 even;login u 7;login u 7;");
             Check.same("the greatest", most.keyOf(0), 1023);
             Check.same("it wraps around", most.keyOf(1), 1010);
         });
@@ -183,7 +183,7 @@ final class TicketEdges {
 
     private static void validity() {
         Edge.of("Promise 34", "Returns whether it is valid.", () -> {
-            TicketGate gate = Check.loaded("gate 9 5;realm a 1 0 even;user u a 7 even;login u 7;");
+            Gate gate = Check.loaded("gate 9 5;realm a 1 0 even;user u a 7 even;login u 7;");
             Check.same("in its only minute", gate.isValid(0), true);
             gate.pass(1);
             Check.same("at its end", gate.isValid(0), false);
@@ -194,7 +194,7 @@ final class TicketEdges {
             Check.same("before that", gate.isValid(0), true);
         });
         Edge.of("Promise 35", "Returns the minutes until its end; 0 if it is not valid.", () -> {
-            TicketGate gate = Check.loaded(HEAD + "login v 7;login u 7;");
+            Gate gate = Check.loaded(HEAD + "login v 7;login u 7;");
             Check.same("the most", gate.minutesLeft(0), 999);
             Check.same("ten", gate.minutesLeft(1), 10);
             gate.pass(9);

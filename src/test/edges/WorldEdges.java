@@ -23,30 +23,30 @@ final class WorldEdges {
         services();
     }
 
-    private static TicketGate empty() {
+    private static Gate empty() {
         return Check.loaded("gate 0 0;");
     }
 
-    private static TicketGate full() {
+    private static Gate full() {
         return Check.loaded(FULL);
     }
 
     private static void realmExists(Bounds.Numbered call) {
         Bounds.counted(WorldEdges::empty, 0, Check.INDEX, call);
-        Bounds.counted(TicketGate::new, 3, Check.INDEX, call);
+        Bounds.counted(Gate::new, 3, Check.INDEX, call);
         Bounds.counted(WorldEdges::full, 5, Check.INDEX, call);
     }
 
     private static void userOrServiceExists(Bounds.Numbered call) {
         Bounds.counted(WorldEdges::empty, 0, Check.INDEX, call);
-        Bounds.counted(TicketGate::new, 2, Check.INDEX, call);
+        Bounds.counted(Gate::new, 2, Check.INDEX, call);
         Bounds.counted(WorldEdges::full, 6, Check.INDEX, call);
     }
 
     private static void timeAndSeed() {
         Edge.of("Promise 7", "Returns the time.", () -> {
-            Check.same("at first", new TicketGate().time(), 6);
-            TicketGate gate = empty();
+            Check.same("at first", new Gate().time(), 6);
+            Gate gate = empty();
             Check.same("the least", gate.time(), 0);
             gate.pass(1);
             Check.same("the next one", gate.time(), 1);
@@ -66,17 +66,17 @@ final class WorldEdges {
     private static void counts() {
         Edge.of("Promise 9", "Returns the number of realms.", () -> {
             Check.same("none", empty().realmCount(), 0);
-            Check.same("some", new TicketGate().realmCount(), 3);
+            Check.same("some", new Gate().realmCount(), 3);
             Check.same("the most", full().realmCount(), 5);
         });
         Edge.of("Promise 10", "Returns the number of users.", () -> {
             Check.same("none", Check.loaded(FIVE).userCount(), 0);
-            Check.same("some", new TicketGate().userCount(), 2);
+            Check.same("some", new Gate().userCount(), 2);
             Check.same("the most", full().userCount(), 6);
         });
         Edge.of("Promise 11", "Returns the number of services.", () -> {
             Check.same("none", Check.loaded(FIVE).serviceCount(), 0);
-            Check.same("some", new TicketGate().serviceCount(), 2);
+            Check.same("some", new Gate().serviceCount(), 2);
             Check.same("the most", full().serviceCount(), 6);
         });
     }
@@ -87,12 +87,12 @@ final class WorldEdges {
             Check.same("the greatest", full().lifetimeOf(1), 999);
             Check.same("the last realm's", full().lifetimeOf(4), 4);
         });
-        Edge.of("Promise 13", "Throws `IndexOutOfBoundsException` if the realm does not exist", () -> realmExists(TicketGate::lifetimeOf));
+        Edge.of("Promise 13", "Throws `IndexOutOfBoundsException` if the realm does not exist", () -> realmExists(Gate::lifetimeOf));
     }
 
     private static void clocks() {
         Edge.of("Promise 14", "Returns the time that its clock shows.", () -> {
-            TicketGate gate = full();
+            Gate gate = full();
             Check.same("the least", gate.clockOf(0), -9);
             Check.same("the fastest", gate.clockOf(1), 9);
             Check.same("the last realm's", gate.clockOf(4), 0);
@@ -100,14 +100,14 @@ final class WorldEdges {
             Check.same("0 of the slowest", gate.clockOf(0), 0);
             Check.same("18 of the fastest", gate.clockOf(1), 18);
         });
-        Edge.of("Promise 14", "Throws `IndexOutOfBoundsException` if the realm does not exist", () -> realmExists(TicketGate::clockOf));
+        Edge.of("Promise 14", "Throws `IndexOutOfBoundsException` if the realm does not exist", () -> realmExists(Gate::clockOf));
     }
 
     private static void trust() {
         Edge.of("Promise 15", "Returns whether the first realm trusts the second one.", () -> {
-            TicketGate none = full();
-            TicketGate corners = Check.loaded(FIVE + "trust a e;trust e a;trust b c;");
-            TicketGate all = allTrust();
+            Gate none = full();
+            Gate corners = Check.loaded(FIVE + "trust a e;trust e a;trust b c;");
+            Gate all = allTrust();
             for (int from = 0; from < 5; from++) {
                 for (int to = 0; to < 5; to++) {
                     String way = " from " + from + " to " + to;
@@ -131,7 +131,7 @@ final class WorldEdges {
     }
 
     /** Each of the five realms trusts each other one: as many trust statements as there can be. */
-    private static TicketGate allTrust() {
+    private static Gate allTrust() {
         StringBuilder text = new StringBuilder(FIVE);
         for (char from = 'a'; from <= 'e'; from++) {
             for (char to = 'a'; to <= 'e'; to++) {
@@ -143,8 +143,8 @@ final class WorldEdges {
 
     private static void distance() {
         Edge.of("Promise 16", "Returns the distance; NONE if no referrals lead from the first realm to the second one.", () -> {
-            TicketGate line = Check.loaded(FIVE + "trust a b;trust b c;trust c d;trust d e;");
-            TicketGate back = Check.loaded(FIVE + "trust e d;trust d c;trust c b;trust b a;");
+            Gate line = Check.loaded(FIVE + "trust a b;trust b c;trust c d;trust d e;");
+            Gate back = Check.loaded(FIVE + "trust e d;trust d c;trust c b;trust b a;");
             for (int from = 0; from < 5; from++) {
                 for (int to = 0; to < 5; to++) {
                     String way = " from " + from + " to " + to;
@@ -161,24 +161,24 @@ final class WorldEdges {
         String sentence = "Returns the first realm to which a way with the fewest referrals leads, the smallest number if there are several; "
                 + "NONE if both are the same or if there is no way.";
         Edge.of("Promise 17", sentence, () -> {
-            TicketGate several = Check.loaded(FIVE + "trust a d;trust a c;trust a b;trust b e;trust c e;trust d e;");
+            Gate several = Check.loaded(FIVE + "trust a d;trust a c;trust a b;trust b e;trust c e;trust d e;");
             Check.same("the smallest of three", several.nextRealm(0, 4), 1);
-            TicketGate two = Check.loaded(FIVE + "trust a d;trust a c;trust a b;trust c e;trust d e;");
+            Gate two = Check.loaded(FIVE + "trust a d;trust a c;trust a b;trust c e;trust d e;");
             Check.same("the smallest of two, not that of no way", two.nextRealm(0, 4), 2);
-            TicketGate longer = Check.loaded(FIVE + "trust a b;trust b c;trust c e;trust a d;trust d e;");
+            Gate longer = Check.loaded(FIVE + "trust a b;trust b c;trust c e;trust a d;trust d e;");
             Check.same("not that of a longer way", longer.nextRealm(0, 4), 3);
-            TicketGate direct = Check.loaded(FIVE + "trust a b;trust b e;trust a e;");
+            Gate direct = Check.loaded(FIVE + "trust a b;trust b e;trust a e;");
             Check.same("the direct one", direct.nextRealm(0, 4), 4);
-            TicketGate line = Check.loaded(FIVE + "trust e d;trust d c;trust c b;trust b a;");
+            Gate line = Check.loaded(FIVE + "trust e d;trust d c;trust c b;trust b a;");
             Check.same("of the longest way", line.nextRealm(4, 0), 3);
             Check.same("of a way of one", line.nextRealm(1, 0), 0);
         });
         Edge.of("Promise 17", sentence, () -> {
-            TicketGate ring = Check.loaded(FIVE + "trust a b;trust b a;");
+            Gate ring = Check.loaded(FIVE + "trust a b;trust b a;");
             Check.same("both the same, with a way around", ring.nextRealm(0, 0), TicketGate.NONE);
             Check.same("both the same, without trust", ring.nextRealm(4, 4), TicketGate.NONE);
             Check.same("no way", ring.nextRealm(0, 4), TicketGate.NONE);
-            TicketGate there = Check.loaded(FIVE + "trust a b;");
+            Gate there = Check.loaded(FIVE + "trust a b;");
             Check.same("no way back", there.nextRealm(1, 0), TicketGate.NONE);
             Check.same("both the same, without a way back", there.nextRealm(0, 0), TicketGate.NONE);
         });
@@ -189,12 +189,12 @@ final class WorldEdges {
             Check.same("the first realm", full().homeOf(0), 0);
             Check.same("the last realm", full().homeOf(5), 4);
         });
-        Edge.of("Promise 18", "Throws `IndexOutOfBoundsException` if the user does not exist", () -> userOrServiceExists(TicketGate::homeOf));
+        Edge.of("Promise 18", "Throws `IndexOutOfBoundsException` if the user does not exist", () -> userOrServiceExists(Gate::homeOf));
     }
 
     private static void cheeses() {
         Edge.of("Promise 19", "Returns the number of cheeses of the user.", () -> {
-            TicketGate gate = Check.loaded("gate 0 0;realm a 999 0 even;user v a 7 even;user u a 7 even;service s a 99;login u 7;request 0 s;");
+            Gate gate = Check.loaded("gate 0 0;realm a 999 0 even;user v a 7 even;user u a 7 even;service s a 99;login u 7;request 0 s;");
             Check.same("none at first", gate.cheesesOf(1), 0);
             for (int cheeses = 1; cheeses <= 99; cheeses++) {
                 gate.cheese(1);
@@ -205,7 +205,7 @@ final class WorldEdges {
             Check.fails("a 100th", Check.STATE, () -> gate.cheese(1));
             Check.same("the other user's", gate.cheesesOf(0), 0);
         });
-        Edge.of("Promise 19", "Throws `IndexOutOfBoundsException` if the user does not exist", () -> userOrServiceExists(TicketGate::cheesesOf));
+        Edge.of("Promise 19", "Throws `IndexOutOfBoundsException` if the user does not exist", () -> userOrServiceExists(Gate::cheesesOf));
     }
 
     private static void skews() {
@@ -214,7 +214,7 @@ final class WorldEdges {
             Check.same("the greatest", full().skew(1, 0), 18);
             Check.same("the greatest, the other way", full().skew(2, 1), 18);
             Check.same("of the last ones", full().skew(5, 4), 0);
-            TicketGate gate = full();
+            Gate gate = full();
             gate.pass(999);
             Check.same("time does not matter", gate.skew(1, 0), 18);
         });
@@ -222,7 +222,7 @@ final class WorldEdges {
         Edge.of("Promise 20", sentence, () -> userOrServiceExists((gate, user) -> gate.skew(user, 0)));
         Edge.of("Promise 20", sentence, () -> realmExists((gate, realm) -> gate.skew(0, realm)));
         Edge.of("Promise 20", sentence, () -> {
-            Supplier<TicketGate> noUsers = () -> Check.loaded(FIVE);
+            Supplier<Gate> noUsers = () -> Check.loaded(FIVE);
             Bounds.counted(noUsers, 0, Check.INDEX, (gate, number) -> gate.skew(number, 4));
         });
     }
@@ -233,16 +233,16 @@ final class WorldEdges {
             Check.same("the last realm", full().realmOfService(4), 4);
             Check.same("of the last service", full().realmOfService(5), 3);
         });
-        Edge.of("Promise 21", "Throws `IndexOutOfBoundsException` if the service does not exist", () -> userOrServiceExists(TicketGate::realmOfService));
+        Edge.of("Promise 21", "Throws `IndexOutOfBoundsException` if the service does not exist", () -> userOrServiceExists(Gate::realmOfService));
         Edge.of("Promise 22", "Returns the number of cheeses of the service.", () -> {
             Check.same("the least", full().cheesesLeft(0), 0);
             Check.same("the greatest", full().cheesesLeft(1), 99);
-            TicketGate gate = new TicketGate();
+            Gate gate = new Gate();
             gate.cheese(4);
             Check.same("one less", gate.cheesesLeft(0), 1);
             gate.undo();
             Check.same("and back", gate.cheesesLeft(0), 2);
         });
-        Edge.of("Promise 22", "Throws `IndexOutOfBoundsException` if the service does not exist", () -> userOrServiceExists(TicketGate::cheesesLeft));
+        Edge.of("Promise 22", "Throws `IndexOutOfBoundsException` if the service does not exist", () -> userOrServiceExists(Gate::cheesesLeft));
     }
 }

@@ -13,7 +13,7 @@ public final class ActionsTest {
         Check.end();
     }
 
-    private static String numbers(TicketGate gate) {
+    private static String numbers(Gate gate) {
         StringBuilder text = new StringBuilder();
         for (int i = 0; i < gate.ticketCount(); i++) {
             text.append(gate.ticketAt(i)).append(' ');
@@ -23,7 +23,7 @@ public final class ActionsTest {
     }
 
     private static void drop() {
-        TicketGate gate = Check.loaded(HEAD + "login u 7;request 0 s;login vwxy 0;refer 2 bcde;");
+        Gate gate = Check.loaded(HEAD + "login u 7;request 0 s;login vwxy 0;refer 2 bcde;");
         String first = Check.picture(gate);
         Check.same("1", gate.drop(1), 3);
         Check.same("numbers", numbers(gate), "0 2 3 ");
@@ -46,7 +46,7 @@ public final class ActionsTest {
     }
 
     private static void sweep() {
-        TicketGate gate = Check.loaded(HEAD + "login u 7;refer 0 bcde;pass 4;login u 7 renewable;refer 2 bcde;");
+        Gate gate = Check.loaded(HEAD + "login u 7;refer 0 bcde;pass 4;login u 7 renewable;refer 2 bcde;");
         Check.same("none", gate.sweep(), 0);
         gate.pass(1);
         Check.same("one that has just ended", gate.sweep(), 1);
@@ -63,7 +63,7 @@ public final class ActionsTest {
     }
 
     private static void setPassword() {
-        TicketGate gate = Check.loaded(HEAD + "login u 7;");
+        Gate gate = Check.loaded(HEAD + "login u 7;");
         Check.same("former", gate.setPassword(0, 9999), 7);
         Check.same("former", gate.setPassword(0, 0), 9999);
         Check.same("former of the other", gate.setPassword(1, 5), 0);
@@ -79,7 +79,7 @@ public final class ActionsTest {
     }
 
     private static void setClock() {
-        TicketGate gate = Check.loaded(HEAD);
+        Gate gate = Check.loaded(HEAD);
         Check.same("former", gate.setClock(0, 9), 0);
         Check.same("skew", gate.skew(0, 0), 9);
         Check.same("former", gate.setClock(0, -9), 9);
@@ -95,7 +95,7 @@ public final class ActionsTest {
     }
 
     private static void pass() {
-        TicketGate gate = Check.loaded(HEAD + "login u 7;refer 0 bcde;request 0 s;pass 1;cheese 2;");
+        Gate gate = Check.loaded(HEAD + "login u 7;refer 0 bcde;request 0 s;pass 1;cheese 2;");
         for (int bad : new int[] {0, -1, 1000, Integer.MAX_VALUE, Integer.MIN_VALUE}) {
             Check.refuses("pass " + bad, Check.ARGUMENT, gate, () -> gate.pass(bad));
         }
@@ -112,11 +112,11 @@ public final class ActionsTest {
     }
 
     private static void write() {
-        TicketGate gate = Check.loaded(HEAD + "login u 7;login vwxy 0 renewable;refer 1 bcde;request 2 long;request 0 s;");
+        Gate gate = Check.loaded(HEAD + "login u 7;login vwxy 0 renewable;refer 1 bcde;request 2 long;request 0 s;");
         String[] due = {"0:u@a 30", "1:vwxy@a 30+", "2:vwxy@bcde 5+", "3:vwxy@bcde/long 5+", "4:u@a/s 30"};
         for (int t = 0; t < due.length; t++) {
             Check.same("length of " + t, gate.writeTicket(t), due[t].length());
-            Check.same("output of " + t, Check.output(gate), due[t]);
+            Check.same("output of " + t, Check.output(gate.twin()), due[t]);
         }
         Check.same("a longer one before a shorter one", gate.writeTicket(3), due[3].length());
         Check.same("the shorter one", gate.writeTicket(0), due[0].length());
@@ -124,25 +124,25 @@ public final class ActionsTest {
         for (int bad : new int[] {-1, 5, Integer.MAX_VALUE, Integer.MIN_VALUE}) {
             Check.refuses("write " + bad, Check.ELEMENT, gate, () -> gate.writeTicket(bad));
         }
-        Check.same("the output stays", Check.output(gate), due[0]);
+        Check.same("the output stays", Check.output(gate.twin()), due[0]);
         for (int bad : new int[] {-1, 8, Integer.MAX_VALUE, Integer.MIN_VALUE}) {
             Check.fails("byte " + bad, Check.ELEMENT, () -> gate.outputByte(bad));
         }
         Check.same("first byte", gate.outputByte(0), (int) '0');
         gate.save(0);
         gate.drop(0);
-        Check.same("the output is not part of the state", Check.output(gate), due[0]);
+        Check.same("the output is not part of the state", Check.output(gate.twin()), due[0]);
         gate.restore(0);
         gate.undo();
-        Check.same("nor undone", Check.output(gate), due[0]);
+        Check.same("nor undone", Check.output(gate.twin()), due[0]);
         for (int i = 0; i < 100; i++) {
             gate.pass(999);
             gate.sweep();
             gate.login(0, 7, true);
         }
         Check.same("long numbers", gate.writeTicket(104), "104:u@a 99930+".length());
-        Check.same("long numbers", Check.output(gate), "104:u@a 99930+");
+        Check.same("long numbers", Check.output(gate.twin()), "104:u@a 99930+");
         Check.load(gate, HEAD);
-        Check.same("load leaves the output", Check.output(gate), "104:u@a 99930+");
+        Check.same("load leaves the output", Check.output(gate.twin()), "104:u@a 99930+");
     }
 }

@@ -13,7 +13,7 @@ public final class CountsTest {
     }
 
     private static void valid() {
-        TicketGate gate = Check.loaded(HEAD + "login u 7;pass 10;login u 7;login v 7;");
+        Gate gate = Check.loaded(HEAD + "login u 7;pass 10;login u 7;login v 7;");
         Check.same("now", gate.validTickets(), 3);
         Check.same("after 0", gate.validAfter(0), 3);
         Check.same("after 19", gate.validAfter(19), 3);
@@ -37,7 +37,7 @@ public final class CountsTest {
     }
 
     private static void wait20() {
-        TicketGate gate = Check.loaded(HEAD + "login u 7;request 0 s;request 0 t;");
+        Gate gate = Check.loaded(HEAD + "login u 7;request 0 s;request 0 t;");
         Check.same("a gate ticket", gate.minutesUntilCheese(0), TicketGate.NONE);
         Check.fails("no ticket", Check.ELEMENT, () -> gate.minutesUntilCheese(3));
         Check.same("now", gate.minutesUntilCheese(1), 0);
@@ -45,7 +45,7 @@ public final class CountsTest {
         Check.same("in a minute", gate.minutesUntilCheese(1), 1);
         gate.cheese(2);
         Check.same("no cheeses left", gate.minutesUntilCheese(2), TicketGate.NONE);
-        TicketGate far = Check.loaded("gate 9 1;realm a 30 0 slow 1;user u a 7 fast 8;service s a 9;login u 7;request 0 s;");
+        Gate far = Check.loaded("gate 9 1;realm a 30 0 slow 1;user u a 7 fast 8;service s a 9;login u 7;request 0 s;");
         for (int minute = 0; minute < 9; minute++) {
             far.cheese(1);
             far.pass(1);
@@ -53,7 +53,7 @@ public final class CountsTest {
         far.setClock(0, -1);
         Check.same("remembered before none left", far.cheeseRefusal(1), 4);
         Check.same("none left", far.minutesUntilCheese(1), TicketGate.NONE);
-        TicketGate more = Check.loaded("gate 9 1;realm a 30 0 slow 1;user u a 7 fast 8;service s a 19;login u 7;request 0 s;");
+        Gate more = Check.loaded("gate 9 1;realm a 30 0 slow 1;user u a 7 fast 8;service s a 19;login u 7;request 0 s;");
         for (int minute = 0; minute < 9; minute++) {
             more.cheese(1);
             more.pass(1);
@@ -69,14 +69,14 @@ public final class CountsTest {
         Check.same("another clock", more.minutesUntilCheese(1), 8);
         more.pass(2);
         Check.same("two minutes less", more.minutesUntilCheese(1), 6);
-        TicketGate late = Check.loaded(HEAD + "login u 7;request 0 s;pass 29;cheese 1;");
+        Gate late = Check.loaded(HEAD + "login u 7;request 0 s;pass 29;cheese 1;");
         Check.same("it ends before", late.minutesUntilCheese(1), TicketGate.NONE);
         late.pass(1);
         Check.same("it has ended", late.minutesUntilCheese(1), TicketGate.NONE);
     }
 
     private static void best() {
-        TicketGate gate = Check.loaded(HEAD + "login u 7;login v 7;pass 5;login u 7;request 0 s;request 2 s;request 2 s;"
+        Gate gate = Check.loaded(HEAD + "login u 7;login v 7;pass 5;login u 7;request 0 s;request 2 s;request 2 s;"
                 + "request 1 s;request 0 t;");
         Check.same("u for s", gate.bestTicket(0, 0), 4);
         Check.same("v for s", gate.bestTicket(1, 0), 6);
@@ -102,7 +102,7 @@ public final class CountsTest {
     }
 
     private static void uses() {
-        TicketGate gate = Check.loaded(HEAD + "login u 7;request 0 s;request 0 t;login v 7;request 3 s;");
+        Gate gate = Check.loaded(HEAD + "login u 7;request 0 s;request 0 t;login v 7;request 3 s;");
         Check.same("none", gate.useCount(), 0);
         gate.cheese(1);
         gate.cheese(2);
@@ -120,7 +120,7 @@ public final class CountsTest {
         gate.pass(1);
         Check.same("all forgotten", gate.useCount(), 0);
         // More than 30: by nine minutes of four services the first ones of the tolerance's time are pushed out.
-        TicketGate many = Check.loaded("gate 9 1;realm a 30 0 even;user u a 7 even;service s a 99;service t a 99;service v a 99;"
+        Gate many = Check.loaded("gate 9 1;realm a 30 0 even;user u a 7 even;service s a 99;service t a 99;service v a 99;"
                 + "service w a 99;login u 7;request 0 s;request 0 t;request 0 v;request 0 w;");
         for (int minute = 0; minute < 7; minute++) {
             for (int t = 1; t <= 4; t++) {
@@ -148,7 +148,7 @@ public final class CountsTest {
     }
 
     private static void shares() {
-        TicketGate gate = Check.loaded(HEAD);
+        Gate gate = Check.loaded(HEAD);
         Check.same("share of none", gate.validShare(), 0.0f);
         Check.same("life of none", gate.averageLife(), 0.0);
         Check.load(gate, HEAD + "login u 7;pass 7;request 0 s;pass 13;login v 7;");
@@ -170,7 +170,7 @@ public final class CountsTest {
     }
 
     private static void errors() {
-        TicketGate gate = new TicketGate();
+        Gate gate = new Gate();
         for (int round = 0; round < 20; round++) {
             gate.pass(3);
             Check.answer(() -> gate.cheese(4));

@@ -15,7 +15,7 @@ public final class HistoryTest {
     }
 
     private static void slots() {
-        TicketGate gate = new TicketGate();
+        Gate gate = new Gate();
         for (int bad : new int[] {-1, 2, Integer.MAX_VALUE, Integer.MIN_VALUE}) {
             Check.refuses("save " + bad, Check.INDEX, gate, () -> gate.save(bad));
             Check.refuses("restore " + bad, Check.INDEX, gate, () -> gate.restore(bad));
@@ -55,7 +55,7 @@ public final class HistoryTest {
     }
 
     private static void undoOfEach() {
-        TicketGate gate = new TicketGate();
+        Gate gate = new Gate();
         gate.save(0);
         List<Check.Call> calls = List.of(() -> gate.login(0, 11, true), () -> gate.refer(0, 1), () -> gate.request(0, 1),
                 () -> gate.renew(0), () -> gate.cheese(4), () -> gate.drop(1), () -> gate.sweep(),
@@ -72,7 +72,7 @@ public final class HistoryTest {
     }
 
     private static void notRemembered() {
-        TicketGate gate = new TicketGate();
+        Gate gate = new Gate();
         gate.pass(1);
         Check.picture(gate);
         gate.save(0);
@@ -88,11 +88,11 @@ public final class HistoryTest {
             Check.same("it throws", Check.answer(call) instanceof String, true);
         }
         Check.same("one is remembered", gate.undo(), 0);
-        Check.same("the start", Check.picture(gate), Check.picture(new TicketGate()));
+        Check.same("the start", Check.picture(gate), Check.picture(new Gate()));
     }
 
     private static void latestEight() {
-        TicketGate gate = new TicketGate();
+        Gate gate = new Gate();
         List<String> pictures = new ArrayList<>();
         for (int i = 0; i < 21; i++) {
             pictures.add(Check.picture(gate));
@@ -129,7 +129,7 @@ public final class HistoryTest {
 
     /** The input, the error, the output and the slots are outside of the state. */
     private static void outside() {
-        TicketGate gate = new TicketGate();
+        Gate gate = new Gate();
         gate.pass(5);
         Check.put(gate, "gate 2 5;x");
         Check.fails("an error", Check.ARGUMENT, () -> gate.load());

@@ -8,7 +8,7 @@ public final class InputTest {
     }
 
     private static void append() {
-        TicketGate gate = new TicketGate();
+        Gate gate = new Gate();
         for (int i = 1; i <= 30; i++) {
             Check.same("append " + i, gate.appendInput(0x20202020, 0x20202020, 0x20202020, 0x20202020, 0x20202020), 20 * i);
         }
@@ -19,13 +19,13 @@ public final class InputTest {
         Check.same("a byte more", gate.truncateInput(580), 580);
         Check.same("append to 600", gate.appendInput(0, 0, 0, 0, 0), 600);
         // gate|_2 5|;rea|lm a| 1 1 — then the rest
-        TicketGate order = new TicketGate();
+        Gate order = new Gate();
         order.appendInput(0x67617465, 0x20322035, 0x3b726561, 0x6c6d2061, 0x20312031);
         order.appendInput(0x20657665, 0x6e3b2020, 0x20202020, 0x20202020, 0x20202020);
         Check.same("bytes in their order", order.load(), 0);
         Check.same("the realm", Check.find(order, "a"), 0);
         // a byte above 127 counts as 128 to 255, and is a token of its own
-        TicketGate high = new TicketGate();
+        Gate high = new Gate();
         high.appendInput(0x67617465, 0x20302030, 0x3bffffff, 0xffffffff, 0x80808080);
         Check.fails("bytes above 127", Check.ARGUMENT, () -> high.load());
         Check.same("code", high.errorCode(), 1);
@@ -33,7 +33,7 @@ public final class InputTest {
     }
 
     private static void truncate() {
-        TicketGate gate = new TicketGate();
+        Gate gate = new Gate();
         Check.same("to 0", gate.truncateInput(0), 0);
         Check.fails("-1", Check.ARGUMENT, () -> gate.truncateInput(-1));
         gate.appendInput(1, 2, 3, 4, 5);
@@ -47,7 +47,7 @@ public final class InputTest {
     }
 
     private static void findName() {
-        TicketGate gate = new TicketGate();
+        Gate gate = new Gate();
         Check.same("empty", Check.find(gate, ""), TicketGate.NONE);
         Check.same("bay", Check.find(gate, "bay"), 1);
         for (String none : new String[] {"ba", "bayy", "bay ", " bay", "bay\0", "\0bay", "BAY", "b y", "bay;", "briea",
@@ -58,7 +58,7 @@ public final class InputTest {
         Check.same("goat", gate.findName(), 201);
         Check.same("goat again", gate.findName(), 201);
         Check.same("the buffer stays", gate.truncateInput(4), 4);
-        TicketGate short1 = Check.loaded("gate 0 0;realm a 1 0 even;realm aa 1 0 even;realm aaa 1 0 even;realm aaaa 1 0 even;"
+        Gate short1 = Check.loaded("gate 0 0;realm a 1 0 even;realm aa 1 0 even;realm aaa 1 0 even;realm aaaa 1 0 even;"
                 + "user z a 0 even;user az a 0 even;service za a 0;service zzzz a 0;");
         String[] names = {"a", "aa", "aaa", "aaaa", "z", "az", "za", "zzzz"};
         int[] codes = {0, 1, 2, 3, 100, 101, 200, 201};

@@ -18,7 +18,7 @@ public final class LoadTest {
     }
 
     private static void answers() {
-        TicketGate gate = new TicketGate();
+        Gate gate = new Gate();
         Check.same("no tickets", Check.load(gate, "gate 9 1023;"), 0);
         Check.same("code", gate.errorCode(), 0);
         Check.same("position", gate.errorPosition(), TicketGate.NONE);
@@ -40,7 +40,7 @@ public final class LoadTest {
         Check.same("undo", gate.undo(), 1);
         Check.same("seed before", gate.seed(), 1023);
         Check.same("undo", gate.undo(), 0);
-        Check.same("start state", Check.picture(gate), Check.picture(new TicketGate()));
+        Check.same("start state", Check.picture(gate), Check.picture(new Gate()));
     }
 
     private static void spaces() {
@@ -134,12 +134,12 @@ public final class LoadTest {
             "service abcde a 1;|8", "user renewable a 1 even;|5", "pass 4294967297;|5", "service t a 1000000000000;|12"}) {
             rest(rest, 2);
         }
-        TicketGate most = Check.loaded("gate 9 1023;realm a 999 9999 fast 9;user u a 9999 slow 0009;service s a 99;pass 999;pass 0;");
+        Gate most = Check.loaded("gate 9 1023;realm a 999 9999 fast 9;user u a 9999 slow 0009;service s a 99;pass 999;pass 0;");
         Check.same("lifetime", most.lifetimeOf(0), 999);
         Check.same("clock", most.clockOf(0), 1008);
         Check.same("skew", most.skew(0, 0), 18);
         Check.same("cheeses", most.cheesesLeft(0), 99);
-        TicketGate least = Check.loaded("gate 0 0;realm a 1 0 slow 1;user u a 0 slow 1;service s a 0;login u 0 renewable;");
+        Gate least = Check.loaded("gate 0 0;realm a 1 0 slow 1;user u a 0 slow 1;service s a 0;login u 0 renewable;");
         Check.same("lifetime", least.lifetimeOf(0), 1);
         Check.same("clock", least.clockOf(0), -1);
         Check.same("cheeses", least.cheesesLeft(0), 0);
@@ -155,7 +155,7 @@ public final class LoadTest {
         }
         rest("trust a a;|8", 3);
         rest("trust b b;|8", 3);
-        TicketGate odd = Check.loaded("gate 1 1;realm gate 1 1 even;realm even 1 1 even;realm fast 1 1 fast 1;trust gate even;"
+        Gate odd = Check.loaded("gate 1 1;realm gate 1 1 even;realm even 1 1 even;realm fast 1 1 fast 1;trust gate even;"
                 + "user user fast 1 slow 1;service pass gate 1;user drop even 1 even;login drop 1;");
         Check.same("gate", Check.find(odd, "gate"), 0);
         Check.same("even", Check.find(odd, "even"), 1);
@@ -174,7 +174,7 @@ public final class LoadTest {
             "login u 7;pass 10;sweep;drop 0;|29"}) {
             rest(rest, 4);
         }
-        Check.same("a ticket with zeros before", Check.load(new TicketGate(), HEAD + "login u 7;drop 0000000000000000;"), 0);
+        Check.same("a ticket with zeros before", Check.load(new Gate(), HEAD + "login u 7;drop 0000000000000000;"), 0);
     }
 
     private static void tooMany() {
@@ -211,15 +211,15 @@ public final class LoadTest {
         Check.error("gate 2 5;realm a 9 9 even;user u a 1 fast 3;login u 1;", 6, 53);
         String full = "gate 2 5;realm a 9 9 even;realm b 9 9 even;trust a b;service s a 1;user u a 1 even;"
                 + "login u 1;".repeat(24);
-        Check.same("24 tickets", Check.load(new TicketGate(), full), 24);
+        Check.same("24 tickets", Check.load(new Gate(), full), 24);
         Check.error(full + "login u 1;", 6, full.length() + 9);
         Check.error(full + "refer 3 b;", 6, full.length() + 9);
         Check.error(full + "request 3 s;", 6, full.length() + 11);
-        Check.same("room after a drop", Check.load(new TicketGate(), full + "drop 3;login u 1;"), 24);
+        Check.same("room after a drop", Check.load(new Gate(), full + "drop 3;login u 1;"), 24);
     }
 
     private static void execution() {
-        TicketGate gate = Check.loaded(HEAD + "login u 7 renewable;pass 4;trust a b;refer 0 b;request 0 s;renew 0;cheese 2;"
+        Gate gate = Check.loaded(HEAD + "login u 7 renewable;pass 4;trust a b;refer 0 b;request 0 s;renew 0;cheese 2;"
                 + "pass 5;drop 2;sweep;pass 0;pass 1;login u 7;pass 0;");
         Check.same("tickets", gate.ticketCount(), 3);
         Check.same("time", gate.time(), 10);

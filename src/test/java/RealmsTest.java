@@ -10,7 +10,7 @@ public final class RealmsTest {
 
     /** Two ways of the same length from a to e, one longer way, and a way back. */
     private static void ways() {
-        TicketGate gate = Check.loaded("gate 0 0;realm a 1 0 even;realm b 2 0 even;realm c 3 0 even;realm d 4 0 even;"
+        Gate gate = Check.loaded("gate 0 0;realm a 1 0 even;realm b 2 0 even;realm c 3 0 even;realm d 4 0 even;"
                 + "realm e 5 0 even;trust a d;trust a c;trust a b;trust b c;trust c e;trust d e;trust e a;");
         int[][] distances = {{0, 1, 1, 1, 2}, {3, 0, 1, 4, 2}, {2, 3, 0, 3, 1}, {2, 3, 3, 0, 1}, {1, 2, 2, 2, 0}};
         int[][] nexts = {{-1, 1, 2, 3, 2}, {2, -1, 2, 2, 2}, {4, 4, -1, 4, 4}, {4, 4, 4, -1, 4}, {0, 0, 0, 0, -1}};
@@ -28,7 +28,7 @@ public final class RealmsTest {
     }
 
     private static void noWay() {
-        TicketGate gate = Check.loaded("gate 0 0;realm a 1 0 even;realm b 2 0 even;realm c 3 0 even;trust a b;");
+        Gate gate = Check.loaded("gate 0 0;realm a 1 0 even;realm b 2 0 even;realm c 3 0 even;trust a b;");
         Check.same("a b", gate.distance(0, 1), 1);
         Check.same("b a", gate.distance(1, 0), TicketGate.NONE);
         Check.same("b a next", gate.nextRealm(1, 0), TicketGate.NONE);
@@ -43,19 +43,19 @@ public final class RealmsTest {
         Check.fails("no realm 3", Check.INDEX, () -> gate.distance(0, 3));
         Check.fails("no realm 3", Check.INDEX, () -> gate.nextRealm(3, 3));
         Check.fails("no realm 3", Check.INDEX, () -> gate.trusts(0, 3));
-        TicketGate line = Check.loaded("gate 0 0;realm a 1 0 even;realm b 2 0 even;realm c 3 0 even;realm d 1 1 even;"
+        Gate line = Check.loaded("gate 0 0;realm a 1 0 even;realm b 2 0 even;realm c 3 0 even;realm d 1 1 even;"
                 + "realm e 1 1 even;trust e d;trust d c;trust c b;trust b a;");
         Check.same("the longest way", line.distance(4, 0), 4);
         Check.same("its first realm", line.nextRealm(4, 0), 3);
         Check.same("no next realm back", line.nextRealm(0, 4), TicketGate.NONE);
-        TicketGate hub = Check.loaded("gate 0 0;realm a 1 0 even;realm b 2 0 even;realm c 3 0 even;trust a b;trust b a;");
+        Gate hub = Check.loaded("gate 0 0;realm a 1 0 even;realm b 2 0 even;realm c 3 0 even;trust a b;trust b a;");
         Check.same("to itself, and trusted by another one", hub.nextRealm(0, 0), TicketGate.NONE);
         Check.same("to one that nobody trusts", hub.nextRealm(0, 2), TicketGate.NONE);
         Check.same("no way back", line.distance(0, 4), TicketGate.NONE);
     }
 
     private static void counts() {
-        TicketGate gate = new TicketGate();
+        Gate gate = new Gate();
         Check.load(gate, "gate 0 0;");
         Check.same("realms", gate.realmCount(), 0);
         Check.fails("no realm", Check.INDEX, () -> gate.lifetimeOf(0));
@@ -75,7 +75,7 @@ public final class RealmsTest {
     }
 
     private static void clocks() {
-        TicketGate gate = Check.loaded("gate 0 0;realm a 1 0 slow 9;realm b 1 0 fast 9;realm c 1 0 even;"
+        Gate gate = Check.loaded("gate 0 0;realm a 1 0 slow 9;realm b 1 0 fast 9;realm c 1 0 even;"
                 + "user u b 1 slow 9;user v b 1 fast 9;user w b 1 even;pass 4;");
         int[] offsets = {-9, 9, 0};
         for (int i = 0; i < 3; i++) {

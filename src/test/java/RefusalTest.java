@@ -17,7 +17,7 @@ public final class RefusalTest {
     }
 
     private static void login() {
-        TicketGate gate = Check.loaded(HEAD);
+        Gate gate = Check.loaded(HEAD);
         Check.same("right", gate.loginRefusal(0, 7), 0);
         Check.same("wrong password", gate.loginRefusal(0, 8), 1);
         Check.same("skew 2", gate.loginRefusal(1, 0), 2);
@@ -46,12 +46,12 @@ public final class RefusalTest {
         gate.setClock(1, 3);
         Check.same("in b", gate.login(1, 0, true), 2);
         ticket(gate, 2, "0 1 1 -1 3 13 33 304 true");
-        TicketGate least = Check.loaded("gate 0 0;realm c 30 5 even;user u c 7 even;");
+        Gate least = Check.loaded("gate 0 0;realm c 30 5 even;user u c 7 even;");
         least.login(0, 7, true);
         ticket(least, 0, "0 0 0 -1 0 30 30 7 true");
     }
 
-    private static void ticket(TicketGate gate, int t, String due) {
+    private static void ticket(Gate gate, int t, String due) {
         String got = gate.kindOf(t) + " " + gate.ownerOf(t) + " " + gate.realmOf(t) + " " + gate.serviceOf(t) + " "
                 + gate.startOf(t) + " " + gate.endOf(t) + " " + gate.lastEndOf(t) + " " + gate.keyOf(t) + " "
                 + gate.isRenewable(t);
@@ -59,7 +59,7 @@ public final class RefusalTest {
     }
 
     private static void refer() {
-        TicketGate gate = Check.loaded(HEAD + "login u 7 renewable;login u 7;request 0 s;");
+        Gate gate = Check.loaded(HEAD + "login u 7 renewable;login u 7;request 0 s;");
         Check.same("a to b", gate.referRefusal(0, 1), 0);
         Check.same("a to a", gate.referRefusal(0, 0), 3);
         Check.same("of a service ticket", gate.referRefusal(2, 1), 1);
@@ -96,7 +96,7 @@ public final class RefusalTest {
     }
 
     private static void request() {
-        TicketGate gate = Check.loaded(HEAD + "login u 7 renewable;refer 0 b;request 0 s;");
+        Gate gate = Check.loaded(HEAD + "login u 7 renewable;refer 0 b;request 0 s;");
         Check.same("s in a", gate.requestRefusal(0, 0), 0);
         Check.same("t in b", gate.requestRefusal(0, 1), 3);
         Check.same("a service without cheeses", gate.requestRefusal(0, 2), 0);
@@ -123,7 +123,7 @@ public final class RefusalTest {
     }
 
     private static void renew() {
-        TicketGate gate = Check.loaded(HEAD + "login u 7 renewable;login u 7;request 0 s;");
+        Gate gate = Check.loaded(HEAD + "login u 7 renewable;login u 7;request 0 s;");
         Check.same("at once", gate.renewRefusal(0), 3);
         Check.same("not renewable", gate.renewRefusal(1), 1);
         Check.refuses("at once", Check.STATE, gate, () -> gate.renew(0));
@@ -155,7 +155,7 @@ public final class RefusalTest {
     }
 
     private static void cheese() {
-        TicketGate gate = Check.loaded(HEAD + "login u 7;request 0 s;request 0 s;request 0 z;");
+        Gate gate = Check.loaded(HEAD + "login u 7;request 0 s;request 0 s;request 0 z;");
         Check.same("a gate ticket", gate.cheeseRefusal(0), 1);
         Check.same("s", gate.cheeseRefusal(1), 0);
         Check.same("z has none", gate.cheeseRefusal(3), 5);
@@ -191,7 +191,7 @@ public final class RefusalTest {
     }
 
     private static void full() {
-        TicketGate gate = Check.loaded(HEAD + "login u 7 renewable;");
+        Gate gate = Check.loaded(HEAD + "login u 7 renewable;");
         for (int i = 1; i < MANY; i++) {
             Check.same("login " + i, gate.login(0, 7, false), i);
         }
@@ -218,7 +218,7 @@ public final class RefusalTest {
 
     /** Exceptions in the order of the throws clause: an argument before a refusal. */
     private static void orders() {
-        TicketGate gate = Check.loaded(HEAD + "login u 7;pass 20;");
+        Gate gate = Check.loaded(HEAD + "login u 7;pass 20;");
         Check.fails("login", Check.ARGUMENT, () -> gate.login(1, 10000, false));
         Check.fails("refer", Check.INDEX, () -> gate.refer(0, 5));
         Check.fails("request", Check.INDEX, () -> gate.request(0, 6));

@@ -11,7 +11,7 @@ public final class StartTest {
     }
 
     private static void start() {
-        TicketGate gate = new TicketGate();
+        Gate gate = new Gate();
         Check.same("time", gate.time(), 6);
         Check.same("seed", gate.seed(), 852);
         Check.same("realms", gate.realmCount(), 3);
@@ -27,18 +27,18 @@ public final class StartTest {
         Check.fails("no slot 0", Check.STATE, () -> gate.restore(0));
         Check.fails("no slot 1", Check.STATE, () -> gate.restore(1));
         Check.fails("no undo", Check.STATE, () -> gate.undo());
-        TicketGate text = Check.loaded("gate 2 5;realm alp 60 300 even;realm bay 40 90 fast 2;realm cob 30 20 slow 3;"
+        Gate text = Check.loaded("gate 2 5;realm alp 60 300 even;realm bay 40 90 fast 2;realm cob 30 20 slow 3;"
                 + "trust alp bay;trust bay cob;trust cob alp;user ann alp 11 slow 1;user ben bay 22 fast 4;"
                 + "service brie bay 3;service goat alp 1;login ann 11 renewable;refer 0 bay;pass 5;request 0 goat;"
                 + "login ben 22;request 3 brie;cheese 4;pass 1;");
         Check.same("the text's state", Check.picture(gate), Check.picture(text));
-        TicketGate other = new TicketGate();
+        Gate other = new Gate();
         other.pass(9);
-        Check.same("objects share nothing", Check.picture(gate), Check.picture(new TicketGate()));
+        Check.same("objects share nothing", Check.picture(gate), Check.picture(new Gate()));
     }
 
     private static void realms() {
-        TicketGate gate = new TicketGate();
+        Gate gate = new Gate();
         int[] lifetimes = {60, 40, 30};
         int[] clocks = {6, 8, 3};
         for (int realm = 0; realm < 3; realm++) {
@@ -58,7 +58,7 @@ public final class StartTest {
     }
 
     private static void users() {
-        TicketGate gate = new TicketGate();
+        Gate gate = new Gate();
         int[][] skews = {{1, 3, 2}, {4, 2, 7}};
         for (int user = 0; user < 2; user++) {
             Check.same("home " + user, gate.homeOf(user), user);
@@ -72,7 +72,7 @@ public final class StartTest {
     }
 
     private static void services() {
-        TicketGate gate = new TicketGate();
+        Gate gate = new Gate();
         Check.same("realm of brie", gate.realmOfService(0), 1);
         Check.same("realm of goat", gate.realmOfService(1), 0);
         Check.same("brie left", gate.cheesesLeft(0), 2);
@@ -82,7 +82,7 @@ public final class StartTest {
     }
 
     private static void tickets() {
-        TicketGate gate = new TicketGate();
+        Gate gate = new Gate();
         int[][] due = { // kind, owner, realm, service, start, end, last end, key, renewable
             {0, 0, 0, -1, 0, 60, 300, 112, 1},
             {0, 0, 1, -1, 0, 40, 90, 311, 1},
@@ -107,7 +107,7 @@ public final class StartTest {
     }
 
     private static void noSuch() {
-        TicketGate gate = new TicketGate();
+        Gate gate = new Gate();
         for (int bad : new int[] {-1, 3, 5, Integer.MAX_VALUE, Integer.MIN_VALUE}) {
             Check.fails("lifetime " + bad, Check.INDEX, () -> gate.lifetimeOf(bad));
             Check.fails("clock " + bad, Check.INDEX, () -> gate.clockOf(bad));

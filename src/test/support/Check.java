@@ -34,7 +34,7 @@ final class Check {
     }
 
     /** The call has to throw this and to leave all that can be asked of the gate as it was. */
-    static void refuses(String what, Class<? extends RuntimeException> kind, TicketGate gate, Call call) {
+    static void refuses(String what, Class<? extends RuntimeException> kind, Gate gate, Call call) {
         String before = picture(gate);
         fails(what, kind, call);
         same(what + " changes nothing", picture(gate), before);
@@ -55,7 +55,7 @@ final class Check {
         }
     }
 
-    static void put(TicketGate gate, String text) {
+    static void put(Gate gate, String text) {
         int length = gate.truncateInput(0);
         for (int at = 0; at < text.length(); at += 20) {
             int[] four = new int[5];
@@ -68,27 +68,27 @@ final class Check {
         gate.truncateInput(Math.min(length, text.length()));
     }
 
-    static int find(TicketGate gate, String name) {
+    static int find(Gate gate, String name) {
         put(gate, name);
         int found = gate.findName();
         gate.truncateInput(0);
         return found;
     }
 
-    static int load(TicketGate gate, String text) {
+    static int load(Gate gate, String text) {
         put(gate, text);
         return gate.load();
     }
 
-    static TicketGate loaded(String text) {
-        TicketGate gate = new TicketGate();
+    static Gate loaded(String text) {
+        Gate gate = new Gate();
         load(gate, text);
         return gate;
     }
 
     /** Loads a text that has an error, which must have this code and this position. */
     static void error(String text, int code, int position) {
-        TicketGate gate = new TicketGate();
+        Gate gate = new Gate();
         String before = picture(gate);
         put(gate, text);
         fails("load " + text, ARGUMENT, () -> gate.load());
@@ -99,7 +99,7 @@ final class Check {
         same("undo after " + text, answer(() -> gate.undo()), "IllegalStateException");
     }
 
-    static String output(TicketGate gate) {
+    static String output(Gate gate) {
         StringBuilder text = new StringBuilder();
         for (int i = 0; answer(lambdaByte(gate, i)) instanceof Integer; i++) {
             text.append((char) gate.outputByte(i));
@@ -107,63 +107,11 @@ final class Check {
         return text.toString();
     }
 
-    private static Call lambdaByte(TicketGate gate, int position) {
+    private static Call lambdaByte(Gate gate, int position) {
         return () -> gate.outputByte(position);
     }
 
-    /** All that can be asked of the state, as one text. */
-    static String picture(TicketGate gate) {
-        StringBuilder text = new StringBuilder();
-        text.append("time ").append(gate.time()).append(" seed ").append(gate.seed());
-        text.append(" uses ").append(gate.useCount()).append(" valid ").append(gate.validTickets());
-        text.append(" errors ").append(gate.cheeseDifference()).append(gate.lifeErrors()).append(gate.distanceErrors());
-        text.append(" share ").append(gate.validShare()).append(" life ").append(gate.averageLife());
-        for (int a = 0; a < gate.realmCount(); a++) {
-            text.append("\nrealm ").append(gate.lifetimeOf(a)).append(' ').append(gate.clockOf(a));
-            for (int b = 0; b < gate.realmCount(); b++) {
-                text.append(' ').append(gate.trusts(a, b)).append(gate.distance(a, b)).append(gate.nextRealm(a, b));
-            }
-        }
-        for (int a = 0; a < gate.userCount(); a++) {
-            text.append("\nuser ").append(gate.homeOf(a)).append(' ').append(gate.cheesesOf(a)).append(password(gate, a));
-            for (int b = 0; b < gate.realmCount(); b++) {
-                text.append(' ').append(gate.skew(a, b));
-            }
-            for (int b = 0; b < gate.serviceCount(); b++) {
-                text.append(" best ").append(gate.bestTicket(a, b));
-            }
-        }
-        for (int a = 0; a < gate.serviceCount(); a++) {
-            text.append("\nservice ").append(gate.realmOfService(a)).append(' ').append(gate.cheesesLeft(a));
-        }
-        for (int i = 0; i < gate.ticketCount(); i++) {
-            ticket(gate, gate.ticketAt(i), text);
-        }
-        return text.toString();
-    }
-
-    /** Tries the passwords that the tests use: a gate never tells one. */
-    private static String password(TicketGate gate, int user) {
-        int[] tried = {0, 1, 2, 7, 11, 22, 77, 99, 9999};
-        StringBuilder text = new StringBuilder(" login ");
-        for (int word : tried) {
-            text.append(gate.loginRefusal(user, word));
-        }
-        return text.toString();
-    }
-
-    private static void ticket(TicketGate gate, int t, StringBuilder text) {
-        text.append("\nticket ").append(t).append(" kind ").append(gate.kindOf(t)).append(" owner ").append(gate.ownerOf(t));
-        text.append(" in ").append(gate.realmOf(t)).append(" for ").append(gate.serviceOf(t));
-        text.append(" life ").append(gate.startOf(t)).append(' ').append(gate.endOf(t)).append(' ').append(gate.lastEndOf(t));
-        text.append(" key ").append(gate.keyOf(t)).append(gate.isRenewable(t)).append(gate.isValid(t)).append(gate.minutesLeft(t));
-        text.append(" refused ").append(gate.renewRefusal(t)).append(gate.cheeseRefusal(t));
-        text.append(" wait ").append(gate.minutesUntilCheese(t));
-        for (int a = 0; a < gate.realmCount(); a++) {
-            text.append(' ').append(gate.referRefusal(t, a));
-        }
-        for (int a = 0; a < gate.serviceCount(); a++) {
-            text.append(' ').append(gate.requestRefusal(t, a));
-        }
+    static String picture(Gate gate) {
+        return new Picture(gate).text();
     }
 }

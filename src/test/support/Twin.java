@@ -13,8 +13,8 @@ final class Twin {
     }
 
     /** The call has to throw this and to change nothing. */
-    static void refuses(String what, Class<? extends RuntimeException> kind, Supplier<TicketGate> scene, Consumer<TicketGate> call) {
-        TicketGate gate = scene.get();
+    static void refuses(String what, Class<? extends RuntimeException> kind, Supplier<Gate> scene, Consumer<Gate> call) {
+        Gate gate = scene.get();
         Check.fails(what, kind, () -> {
             call.accept(gate);
             return "no exception";
@@ -25,39 +25,41 @@ final class Twin {
         }));
     }
 
-    static void unchanged(String what, Supplier<TicketGate> scene, Consumer<TicketGate> call) {
+    static void unchanged(String what, Supplier<Gate> scene, Consumer<Gate> call) {
         Check.same(what + " changes nothing", look(() -> {
-            TicketGate gate = scene.get();
+            Gate gate = scene.get();
             call.accept(gate);
             return gate;
         }), look(scene));
     }
 
-    static String look(Supplier<TicketGate> scene) {
-        return Check.picture(scene.get()) + outside(scene.get()) + past(scene.get()) + slots(scene.get()) + future(scene.get());
+    static String look(Supplier<Gate> scene) {
+        return Check.picture(scene.get()) + outside(scene) + past(scene.get()) + slots(scene.get()) + future(scene.get());
     }
 
-    private static String outside(TicketGate gate) {
-        StringBuilder text = new StringBuilder("\noutside ");
-        text.append(gate.errorCode()).append(' ').append(gate.errorPosition()).append(' ').append(Check.output(gate));
-        text.append(' ').append(gate.findName()).append(' ').append(inputLength(gate)).append(' ').append(Check.answer(gate::load));
-        return text.append(gate.errorCode()).append(' ').append(gate.errorPosition()).append(Check.picture(gate)).toString();
+    private static String outside(Supplier<Gate> scene) {
+        Gate gate = scene.get();
+        String text = "\noutside " + gate.errorCode() + " " + gate.errorPosition() + " " + Check.output(gate) + " "
+                + gate.findName() + " " + inputLength(gate) + " " + Check.answer(gate::load);
+        return text + " " + gate.errorCode() + " " + gate.errorPosition() + Check.picture(gate);
     }
 
-    /** The greatest length to which the input can be cut; cutting to it changes nothing. */
-    static int inputLength(TicketGate gate) {
-        int length = MAX_INPUT;
-        while (length > 0 && Check.answer(cut(gate, length)) instanceof String) {
-            length--;
+    /** The greatest length to which the input of a twin can be cut. */
+    static int inputLength(Gate gate) {
+        int least = 0;
+        int most = MAX_INPUT;
+        while (least < most) {
+            int length = (least + most + 1) / 2;
+            if (Check.answer(() -> gate.twin().truncateInput(length)) instanceof Integer) {
+                least = length;
+            } else {
+                most = length - 1;
+            }
         }
-        return length;
+        return least;
     }
 
-    private static Check.Call cut(TicketGate gate, int length) {
-        return () -> gate.truncateInput(length);
-    }
-
-    private static String past(TicketGate gate) {
+    private static String past(Gate gate) {
         StringBuilder text = new StringBuilder();
         for (Object left = Check.answer(gate::undo); left instanceof Integer; left = Check.answer(gate::undo)) {
             text.append("\nundone ").append(left).append(Check.picture(gate));
@@ -65,14 +67,14 @@ final class Twin {
         return text.toString();
     }
 
-    private static String slots(TicketGate gate) {
+    private static String slots(Gate gate) {
         return "\nslot 0 " + Check.answer(() -> gate.restore(0)) + Check.picture(gate)
                 + "\nslot 1 " + Check.answer(() -> gate.restore(1)) + Check.picture(gate);
     }
 
-    private static String future(TicketGate gate) {
+    private static String future(Gate gate) {
         StringBuilder text = new StringBuilder("\nfuture");
-        for (int round = 0; round < 3; round++) {
+        for (int round = 0; round < 2; round++) {
             for (int i = 0; i < gate.ticketCount(); i++) {
                 int ticket = gate.ticketAt(i);
                 text.append(' ').append(Check.answer(() -> gate.cheese(ticket))).append(Check.answer(() -> gate.renew(ticket)));
@@ -86,7 +88,7 @@ final class Twin {
         return text.toString();
     }
 
-    private static String logins(TicketGate gate, int user) {
+    private static String logins(Gate gate, int user) {
         StringBuilder text = new StringBuilder();
         for (int password : PASSWORDS) {
             text.append(Check.answer(() -> gate.login(user, password, true))).append(' ');
