@@ -1,6 +1,7 @@
 /** The promises 56 to 60: dropping, sweeping, passwords, clocks and minutes. */
 final class ActionEdges {
-    private static final String HEAD = "gate 9 5;realm a 10 20 even;realm b 999 9999 even;user u a 7 even;user v b 0 even;service s a 9;service t b 99;";
+    private static final String HEAD = "gate 9 5;realm a 10 20 even;realm b 999 9999 even;user u a 7 even;user v b 0 even;"
+            + "service s a 9;service t b 99;";
     private static final String NO_USER = "Throws `IndexOutOfBoundsException` if the user does not exist";
 
     private ActionEdges() {

@@ -2,10 +2,13 @@ import java.util.function.Consumer;
 
 /** The promises 41 to 50: counts, waits, sums and shares. */
 final class CountEdges {
-    private static final String HEAD = "gate 9 5;realm a 10 20 even;realm b 999 9999 even;user u a 7 even;user v b 7 even;service s a 9;service t b 99;";
+    private static final String HEAD = "gate 9 5;realm a 10 20 even;realm b 999 9999 even;user u a 7 even;user v b 7 even;"
+            + "service s a 9;service t b 99;";
     private static final String ALWAYS_0 = "this is always 0.";
-    private static final String WAIT = "Returns the smallest number of minutes, 0 to 20, after which a cheese can be given for the ticket; NONE if there is none.";
-    private static final String BEST = "Returns the valid ticket of this owner for this service with the greatest end, the smallest number if several have it; NONE if there is none.";
+    private static final String WAIT = "Returns the smallest number of minutes, 0 to 20, after which a cheese can be given for "
+            + "the ticket; NONE if there is none.";
+    private static final String BEST = "Returns the valid ticket of this owner for this service with the greatest end, the "
+            + "smallest number if several have it; NONE if there is none.";
 
     private CountEdges() {
     }
@@ -93,7 +96,8 @@ final class CountEdges {
 
     /** Uses of one minute by the clocks 0 to tolerance minutes ahead meet the even clock in each minute that follows. */
     private static Gate waiting(int tolerance, int lifetime) {
-        Gate gate = Check.loaded("gate " + tolerance + " 5;realm a " + lifetime + " 0 even;user u a 7 even;service s a 99;login u 7;request 0 s;");
+        Gate gate = Check.loaded("gate " + tolerance + " 5;realm a " + lifetime + " 0 even;user u a 7 even;service s a 99;"
+                + "login u 7;request 0 s;");
         for (int offset = tolerance; offset >= 0; offset--) {
             gate.setClock(0, offset);
             gate.cheese(1);
@@ -125,7 +129,8 @@ final class CountEdges {
 
     private static void bestTicket() {
         Edge.of("Promise 44", BEST, () -> {
-            Gate gate = Check.loaded(HEAD + "login u 7 renewable;request 0 s;request 0 s;pass 1;login u 7;request 3 s;request 3 s;request 0 s;");
+            Gate gate = Check.loaded(HEAD + "login u 7 renewable;request 0 s;request 0 s;pass 1;login u 7;request 3 s;"
+                    + "request 3 s;request 0 s;");
             Check.same("the first of two with the greatest end", gate.bestTicket(0, 0), 4);
             gate.drop(4);
             Check.same("the second of them", gate.bestTicket(0, 0), 5);
@@ -174,7 +179,8 @@ final class CountEdges {
             }
         });
         Edge.of("Promise 45", "Returns the number of remembered uses.", () -> {
-            Gate gate = Check.loaded("gate 9 5;realm a 10 20 even;user u a 7 even;service s a 99;service t a 99;login u 7;request 0 s;request 0 t;");
+            Gate gate = Check.loaded("gate 9 5;realm a 10 20 even;user u a 7 even;service s a 99;service t a 99;login u 7;"
+                    + "request 0 s;request 0 t;");
             for (int use = 1; use <= 38; use++) {
                 gate.setClock(0, (use - 1) / 2 - 9);
                 gate.cheese(1 + use % 2);
@@ -201,7 +207,8 @@ final class CountEdges {
     }
 
     private static void cheeseDifference() {
-        String sentence = "Returns the cheeses of all services of the text minus those that the services have now and those of all users; " + ALWAYS_0;
+        String sentence = "Returns the cheeses of all services of the text minus those that the services have now and those of "
+                + "all users; " + ALWAYS_0;
         Edge.of("Promise 46", sentence, () -> {
             Check.same("at first", new Gate().cheeseDifference(), 0);
             Check.same("no services", Check.loaded("gate 0 0;").cheeseDifference(), 0);
@@ -243,11 +250,13 @@ final class CountEdges {
     }
 
     private static void lifeErrors() {
-        String sentence = "Returns the number of tickets whose start is not less than their end, or whose end is greater than their last end; " + ALWAYS_0;
+        String sentence = "Returns the number of tickets whose start is not less than their end, or whose end is greater than "
+                + "their last end; " + ALWAYS_0;
         Edge.of("Promise 47", sentence, () -> {
             Check.same("at first", new Gate().lifeErrors(), 0);
             Check.same("no tickets", Check.loaded(HEAD).lifeErrors(), 0);
-            String shortest = "gate 9 5;realm a 1 0 even;realm b 1 0 even;trust a b;user u a 7 even;service s a 2;login u 7;login u 7 renewable;";
+            String shortest = "gate 9 5;realm a 1 0 even;realm b 1 0 even;trust a b;user u a 7 even;service s a 2;login u 7;"
+                    + "login u 7 renewable;";
             Check.same("lives of a minute", Check.loaded(shortest + "refer 1 b;request 1 s;pass 1;").lifeErrors(), 0);
             Check.same("ended ones", Check.loaded(HEAD + "login u 7;login v 7 renewable;pass 999;").lifeErrors(), 0);
             Gate last = Check.loaded(HEAD + "login u 7 renewable;pass 9;request 0 s;renew 0;pass 9;renew 0;");
@@ -257,7 +266,8 @@ final class CountEdges {
     }
 
     private static void distanceErrors() {
-        String sentence = "Returns the number of pairs of realms for which the distance differs from the one that is found by going through all realms "
+        String sentence = "Returns the number of pairs of realms for which the distance differs from the one that is found by "
+                + "going through all realms "
                 + "as halfway realms; " + ALWAYS_0;
         Edge.of("Promise 48", sentence, () -> {
             Check.same("at first", new Gate().distanceErrors(), 0);
@@ -275,7 +285,8 @@ final class CountEdges {
     }
 
     private static void validShare() {
-        String sentence = "Returns the number of valid tickets converted to float, divided by the number of tickets converted to float; 0.0f if there are none.";
+        String sentence = "Returns the number of valid tickets converted to float, divided by the number of tickets converted "
+                + "to float; 0.0f if there are none.";
         Edge.of("Promise 49", sentence, () -> {
             Check.same("none", Check.loaded(HEAD).validShare(), 0.0f);
             Gate gate = Check.loaded(HEAD + "login u 7;".repeat(23) + "pass 1;login v 7;");
@@ -296,7 +307,8 @@ final class CountEdges {
     }
 
     private static void averageLife() {
-        String sentence = "Returns the sum of the differences of end and start of all tickets converted to double, divided by their number converted to "
+        String sentence = "Returns the sum of the differences of end and start of all tickets converted to double, divided by "
+                + "their number converted to "
                 + "double; 0.0 if there are none.";
         Edge.of("Promise 50", sentence, () -> {
             Check.same("none", Check.loaded(HEAD).averageLife(), 0.0);

@@ -21,7 +21,8 @@ final class InputEdges {
     }
 
     private static void newObject() {
-        String sentence = "Creates the gate with the state that section 6 describes, an empty input buffer, no error, an empty output and no saved states.";
+        String sentence = "Creates the gate with the state that section 6 describes, an empty input buffer, no error, an empty "
+                + "output and no saved states.";
         Edge.of("Promise 1", sentence, () -> {
             Gate gate = new Gate();
             Check.same("state", Check.picture(gate), Check.picture(Check.loaded(START)));
@@ -38,7 +39,8 @@ final class InputEdges {
 
     /** Each byte is told by a text in which it has to stand at its place. */
     private static void appendedBytes() {
-        Edge.of("Promise 2", "Appends 20 bytes to the input buffer: the four bytes of each argument, the most significant byte first.", () -> {
+        Edge.of("Promise 2", "Appends 20 bytes to the input buffer: the four bytes of each argument, the most significant byte "
+                + "first.", () -> {
             Gate gate = new Gate();
             gate.appendInput(0x67617465, 0x20392031, 0x3032333b, 0x73776565, 0x703b0a20); // gate 9 1023;sweep;
             Check.same("it loads", gate.load(), 0);
@@ -53,7 +55,8 @@ final class InputEdges {
             Check.fails("the byte 138 is no line feed", Check.ARGUMENT, () -> gate.load());
             Check.same("at 12", gate.errorPosition(), 12);
         });
-        String[] lines = {"- `a`: bytes 1 to 4", "- `b`: bytes 5 to 8", "- `c`: bytes 9 to 12", "- `d`: bytes 13 to 16", "- `e`: bytes 17 to 20"};
+        String[] lines = {"- `a`: bytes 1 to 4", "- `b`: bytes 5 to 8", "- `c`: bytes 9 to 12", "- `d`: bytes 13 to 16",
+            "- `e`: bytes 17 to 20"};
         for (int argument = 0; argument < lines.length; argument++) {
             int place = argument;
             Edge.of("Promise 2", lines[argument], () -> {
@@ -171,7 +174,8 @@ final class InputEdges {
     }
 
     private static void loadThatThrows() {
-        Edge.of("Promise 4", "If the text has an error, the state does not change, and the error code and the error position are stored.", () -> {
+        Edge.of("Promise 4", "If the text has an error, the state does not change, and the error code and the error position "
+                + "are stored.", () -> {
             for (String text : new String[] {"", "gate 9 9;realm", HEAD + "login u 7;login u 8;", "gate 0 0;gate"}) {
                 Gate gate = new Gate();
                 gate.save(0);
@@ -213,7 +217,8 @@ final class InputEdges {
             Check.load(gate, HEAD);
             Check.same("no error", gate.errorCode(), 0);
         });
-        Edge.of("Promise 6", "Returns the error position of the latest call of load; NONE if it had no error or if load was not called.", () -> {
+        Edge.of("Promise 6", "Returns the error position of the latest call of load; NONE if it had no error or if load was not "
+                + "called.", () -> {
             Gate gate = new Gate();
             Check.same("not called", gate.errorPosition(), TicketGate.NONE);
             Check.answer(() -> gate.load());
@@ -252,7 +257,8 @@ final class InputEdges {
     }
 
     private static void foundNumbers() {
-        String sentence = "Returns the number of the realm, 100 plus the number of the user, or 200 plus the number of the service; NONE if there is none.";
+        String sentence = "Returns the number of the realm, 100 plus the number of the user, or 200 plus the number of the "
+                + "service; NONE if there is none.";
         Edge.of("Promise 12", sentence, () -> {
             Gate gate = Check.loaded("gate 0 0;realm a 1 0 even;realm b 1 0 even;realm c 1 0 even;realm d 1 0 even;realm e 1 0 even;"
                     + "user f a 1 even;user g a 1 even;user h a 1 even;user i a 1 even;user j a 1 even;user k a 1 even;service l a 1;"

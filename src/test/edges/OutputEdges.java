@@ -1,6 +1,7 @@
 /** The promises 61 to 65: the output, the slots and undo. */
 final class OutputEdges {
-    private static final String HEAD = "gate 9 5;realm a 1 20 even;realm bcde 999 9999 even;trust a bcde;user u a 7 even;user vwxy bcde 0 even;"
+    private static final String HEAD = "gate 9 5;realm a 1 20 even;realm bcde 999 9999 even;trust a bcde;user u a 7 even;"
+            + "user vwxy bcde 0 even;"
             + "service s a 9;service long bcde 99;";
     private static final String NO_SLOT = "Throws `IndexOutOfBoundsException` if the slot does not exist";
 
@@ -20,10 +21,12 @@ final class OutputEdges {
     }
 
     private static void written() {
-        String sentence = "Writes a ticket into the output: its number, the byte :, the name of its owner, the byte @, the name of its realm; for a ticket for "
+        String sentence = "Writes a ticket into the output: its number, the byte :, the name of its owner, the byte @, the name "
+                + "of its realm; for a ticket for "
                 + "a service the byte / and the name of the service; then a space and its end, and the byte + if it is renewable.";
         Edge.of("Promise 61", sentence, () -> {
-            Gate gate = Check.loaded(HEAD + "login u 7;login u 7 renewable;login vwxy 0;login vwxy 0 renewable;request 0 s;request 1 s;request 2 long;request 3 long;");
+            Gate gate = Check.loaded(HEAD + "login u 7;login u 7 renewable;login vwxy 0;login vwxy 0 renewable;request 0 s;"
+                    + "request 1 s;request 2 long;request 3 long;");
             String[] due = {"0:u@a 1", "1:u@a 1+", "2:vwxy@bcde 999", "3:vwxy@bcde 999+", "4:u@a/s 1", "5:u@a/s 1+", "6:vwxy@bcde/long 999",
                 "7:vwxy@bcde/long 999+"};
             for (int t = 0; t < due.length; t++) {

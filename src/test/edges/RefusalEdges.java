@@ -2,7 +2,8 @@ import java.util.function.Supplier;
 
 /** The promises 36 to 40 and 51 to 55: asking for a refusal, and the calls that may be refused. */
 final class RefusalEdges {
-    private static final String HEAD = "gate 1 5;realm a 10 20 even;realm b 7 15 even;realm c 5 5 even;trust a b;user u a 7 even;user v b 0 even;"
+    private static final String HEAD = "gate 1 5;realm a 10 20 even;realm b 7 15 even;realm c 5 5 even;trust a b;"
+            + "user u a 7 even;user v b 0 even;"
             + "service s a 1;service t b 2;service z a 0;";
     private static final String TICKETS = HEAD + "login u 7 renewable;request 0 s;";
     private static final String NO_USER = "Throws `IndexOutOfBoundsException` if the user does not exist";
@@ -112,7 +113,8 @@ final class RefusalEdges {
     }
 
     private static void cheeseRefusal() {
-        Edge.of("Promise 40", "Returns 0 if a cheese can be given for the ticket; otherwise the first reason of section 3 that applies.", () -> {
+        Edge.of("Promise 40", "Returns 0 if a cheese can be given for the ticket; otherwise the first reason of section 3 that "
+                + "applies.", () -> {
             Gate gate = fullTickets();
             Check.same("it can, with 24 tickets", gate.cheeseRefusal(1), 0);
             Check.same("a gate ticket", gate.cheeseRefusal(0), 1);
@@ -184,7 +186,8 @@ final class RefusalEdges {
         Edge.of("Promise 52", "A user is referred to another realm.", () -> {
             Gate gate = later(RefusalEdges::tickets, 9).get();
             gate.refer(0, 1);
-            Check.same("kind, owner, realm and service", "" + gate.kindOf(2) + gate.ownerOf(2) + gate.realmOf(2) + gate.serviceOf(2), "001-1");
+            String kinds = "" + gate.kindOf(2) + gate.ownerOf(2) + gate.realmOf(2) + gate.serviceOf(2);
+            Check.same("kind, owner, realm and service", kinds, "001-1");
             Check.same("life", gate.startOf(2) + " " + gate.endOf(2) + " " + gate.lastEndOf(2), "9 10 20");
             Check.same("the old ticket stays", gate.realmOf(0) + " " + gate.endOf(0), "0 10");
         });
@@ -210,7 +213,8 @@ final class RefusalEdges {
         Edge.of("Promise 53", "A ticket for a service is requested.", () -> {
             Gate gate = later(RefusalEdges::tickets, 9).get();
             gate.request(0, 2);
-            Check.same("kind, owner, realm and service", "" + gate.kindOf(2) + gate.ownerOf(2) + gate.realmOf(2) + gate.serviceOf(2), "1002");
+            String kinds = "" + gate.kindOf(2) + gate.ownerOf(2) + gate.realmOf(2) + gate.serviceOf(2);
+            Check.same("kind, owner, realm and service", kinds, "1002");
             Check.same("life", gate.startOf(2) + " " + gate.endOf(2) + " " + gate.lastEndOf(2), "9 10 20");
             Check.same("no cheese is given", gate.cheesesOf(0), 0);
         });

@@ -111,8 +111,10 @@ final class RuleEdges {
     }
 
     private static void loginResult() {
-        Edge.of("Section 3 login", "The result is a gate ticket for the home realm, whose end is the time plus the lifetime of the realm", () -> {
-            Gate gate = Check.loaded("gate 0 0;realm a 5 9 even;realm b 1 9 even;realm c 999 9 even;user u b 7 even;user v c 7 even;pass 3;");
+        Edge.of("Section 3 login", "The result is a gate ticket for the home realm, whose end is the time plus the lifetime of "
+                + "the realm", () -> {
+            Gate gate = Check.loaded("gate 0 0;realm a 5 9 even;realm b 1 9 even;realm c 999 9 even;user u b 7 even;"
+                    + "user v c 7 even;pass 3;");
             gate.login(0, 7, false);
             gate.login(1, 7, true);
             Check.same("a gate ticket", gate.kindOf(0), TicketGate.FOR_REALM);
@@ -121,12 +123,14 @@ final class RuleEdges {
             Check.same("the least lifetime", gate.endOf(0), 4);
             Check.same("the greatest lifetime", gate.endOf(1), 1002);
         });
-        String sentence = "if it shall be renewable, its last end is the time plus the renewable lifetime of the realm, but at least the end";
+        String sentence = "if it shall be renewable, its last end is the time plus the renewable lifetime of the realm, but at "
+                + "least the end";
         Edge.of("Section 3 login", sentence, () -> {
             int[] renewals = {0, 9, 10, 11, 9999};
             int[] lastEnds = {13, 13, 13, 14, 10002};
             for (int i = 0; i < renewals.length; i++) {
-                Gate gate = Check.loaded("gate 0 0;realm a 10 " + renewals[i] + " even;user u a 7 even;pass 3;login u 7 renewable;login u 7;");
+                Gate gate = Check.loaded("gate 0 0;realm a 10 " + renewals[i] + " even;user u a 7 even;pass 3;"
+                        + "login u 7 renewable;login u 7;");
                 Check.same("renewable lifetime " + renewals[i], gate.lastEndOf(0), lastEnds[i]);
                 Check.same("it can be renewed", gate.isRenewable(0), true);
                 Check.same("not renewable", gate.lastEndOf(1), 13);
@@ -391,7 +395,8 @@ final class RuleEdges {
 
     /** In one minute, by the offsets -9 to 9 of the clock, 38 uses of two services. */
     private static void latestUses() {
-        Gate gate = Check.loaded("gate 9 5;realm a 10 20 even;user u a 7 even;service s a 99;service t a 99;login u 7;request 0 s;request 0 t;");
+        Gate gate = Check.loaded("gate 9 5;realm a 10 20 even;user u a 7 even;service s a 99;service t a 99;login u 7;"
+                + "request 0 s;request 0 t;");
         for (int use = 0; use < 30; use++) {
             useAt(gate, use);
         }

@@ -6,7 +6,8 @@ import java.util.function.Consumer;
 
 /** The section 6: what the state is, what is remembered, and which calls change nothing. */
 final class StateEdges {
-    private static final String OTHER = "gate 9 77;realm cob 9 99 slow 2;realm new 5 6 fast 1;trust new cob;user ann new 22 fast 3;service goat cob 9;"
+    private static final String OTHER = "gate 9 77;realm cob 9 99 slow 2;realm new 5 6 fast 1;trust new cob;"
+            + "user ann new 22 fast 3;service goat cob 9;"
             + "service one new 4;login ann 22 renewable;request 0 one;cheese 1;pass 2;";
 
     private StateEdges() {
@@ -358,7 +359,8 @@ final class StateEdges {
     }
 
     private static void start() {
-        String sentence = "Before the first successful load the state is that of the text \"gate 2 5;realm alp 60 300 even;realm bay 40 90 fast 2;"
+        String sentence = "Before the first successful load the state is that of the text \"gate 2 5;realm alp 60 300 even;"
+                + "realm bay 40 90 fast 2;"
                 + "realm cob 30 20 slow 3;trust alp bay;trust bay cob;trust cob alp;user ann alp 11 slow 1;user ben bay 22 fast 4;"
                 + "service brie bay 3;service goat alp 1;login ann 11 renewable;refer 0 bay;pass 5;request 0 goat;login ben 22;"
                 + "request 3 brie;cheese 4;pass 1;\".";

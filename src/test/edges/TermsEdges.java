@@ -18,8 +18,10 @@ final class TermsEdges {
     }
 
     private static void story() {
-        String sentence = "A gate that trades passwords for tickets and tickets for cheeses: users of realms log in, are referred from realm to realm "
-                + "along trust, request tickets for services, renew them, and get cheeses for fresh tickets if their clocks agree and the same "
+        String sentence = "A gate that trades passwords for tickets and tickets for cheeses: users of realms log in, are "
+                + "referred from realm to realm "
+                + "along trust, request tickets for services, renew them, and get cheeses for fresh tickets if their clocks "
+                + "agree and the same "
                 + "request was not made before.";
         Edge.of("What it is", sentence, () -> {
             Gate gate = Check.loaded(HEAD + "trust a b;service t b 2;");
@@ -122,7 +124,8 @@ final class TermsEdges {
 
     private static void users() {
         Edge.of("Section 1", "There are at most 6 users, numbered from 0.", () -> {
-            String six = "gate 0 0;realm r 1 0 even;user a r 1 even;user b r 1 even;user c r 1 even;user d r 1 even;user e r 1 even;user f r 1 even;";
+            String six = "gate 0 0;realm r 1 0 even;user a r 1 even;user b r 1 even;user c r 1 even;user d r 1 even;"
+                    + "user e r 1 even;user f r 1 even;";
             Gate gate = Check.loaded(six);
             Check.same("six", gate.userCount(), 6);
             Check.same("the first one", Check.find(gate, "a"), 100);
@@ -206,7 +209,8 @@ final class TermsEdges {
             Check.same("still 24", gate.ticketCount(), 24);
             Check.error(head + "login u 7;login u 7;", 6, head.length() + 19);
         });
-        String sentence = "A ticket has a number (0, 1, 2 and so on in the order in which the tickets were made; a number is never used again), "
+        String sentence = "A ticket has a number (0, 1, 2 and so on in the order in which the tickets were made; a number is "
+                + "never used again), "
                 + "a kind (0 a gate ticket for a realm, 1 a ticket for a service), an owner, which is a user, a realm, a service if it is "
                 + "of the kind 1, a start, an end, a last end, a key, and the flag renewable or not.";
         Edge.of("Section 2", sentence, () -> {
@@ -247,7 +251,8 @@ final class TermsEdges {
             Check.same("sweep", gate.sweep(), 1);
             Check.same("none is left", gate.ticketCount(), 0);
         });
-        Edge.of("Section 2", "To make a ticket draws a key: the seed becomes (21 * seed + 7) modulo 1024, and the key is the new seed.", () -> {
+        Edge.of("Section 2", "To make a ticket draws a key: the seed becomes (21 * seed + 7) modulo 1024, and the key is the "
+                + "new seed.", () -> {
             for (int seed = 0; seed < 1024; seed++) {
                 Gate gate = Check.loaded("gate 0 " + seed + ";realm a 1 0 even;user u a 7 even;login u 7;");
                 Check.same("key after the seed " + seed, gate.keyOf(0), (21 * seed + 7) % 1024);
@@ -257,7 +262,8 @@ final class TermsEdges {
             Check.fails("wrong password", Check.STATE, () -> gate.login(0, 8, false));
             Check.same("a refused login draws none", gate.seed(), 1023);
         });
-        Edge.of("Section 2", "To make a ticket draws a key: the seed becomes (21 * seed + 7) modulo 1024, and the key is the new seed.", () -> {
+        Edge.of("Section 2", "To make a ticket draws a key: the seed becomes (21 * seed + 7) modulo 1024, and the key is the "
+                + "new seed.", () -> {
             Gate gate = Check.loaded(HEAD + "login u 7;request 0 s;");
             int seed = gate.seed();
             gate.cheese(1);

@@ -122,7 +122,8 @@ final class TextEdges {
         });
         Edge.of("Section 5", "REALM, USER and SERVICE are names, TICKET is the number of a ticket.", () -> {
             for (String text : new String[] {"trust 0 b;|6", "trust a 1;|8", "user v 0 7 even;|7", "service t 0 7;|10", "login 0 7;|6",
-                "refer u b;|6", "request a s;|8", "renew a;|6", "cheese s;|7", "drop u;|5", "login u 7;refer 0 1;|18", "login u 7;request 0 0;|20"}) {
+                "refer u b;|6", "request a s;|8", "renew a;|6", "cheese s;|7", "drop u;|5",
+                "login u 7;refer 0 1;|18", "login u 7;request 0 0;|20"}) {
                 rest(text, 1);
             }
             Check.same("the number of a ticket is no index", Check.loaded(HEAD + "login u 7;login u 7;drop 0;drop 1;").ticketCount(), 0);
@@ -133,7 +134,8 @@ final class TextEdges {
         String sentence = "CLOCK is the word even (the offset 0), or the word fast or slow and a number from 1 to 9 "
                 + "(the offset is the number or minus the number).";
         Edge.of("Section 5", sentence, () -> {
-            Gate gate = Check.loaded("gate 9 0;realm a 1 0 even;realm b 1 0 fast 1;realm c 1 0 fast 9;realm d 1 0 slow 1;realm e 1 0 slow 9;"
+            Gate gate = Check.loaded("gate 9 0;realm a 1 0 even;realm b 1 0 fast 1;realm c 1 0 fast 9;realm d 1 0 slow 1;"
+                    + "realm e 1 0 slow 9;"
                     + "user u a 7 even;user v a 7 fast 1;user w a 7 fast 9;user x a 7 slow 1;user y a 7 slow 0009;");
             int[] offsets = {0, 1, 9, -1, -9};
             for (int i = 0; i < offsets.length; i++) {
@@ -162,7 +164,8 @@ final class TextEdges {
     }
 
     private static void statementsOfAdding() {
-        Edge.of("Section 5", "gate TOLERANCE SEED ;                the tolerance and the seed; this is the first statement, and it occurs only there", () -> {
+        Edge.of("Section 5", "gate TOLERANCE SEED ;                the tolerance and the seed; this is the first statement, and "
+                + "it occurs only there", () -> {
             Check.same("alone", Check.loaded("gate 2 5;").seed(), 5);
             Check.error("sweep;", 1, 0);
             Check.error("realm a 1 1 even;gate 2 5;", 1, 0);
@@ -246,7 +249,8 @@ final class TextEdges {
     }
 
     private static void positions() {
-        String sentence = "The error position is the offset of the first byte of the token; it is the length of the text if the text ends too early.";
+        String sentence = "The error position is the offset of the first byte of the token; it is the length of the text if the "
+                + "text ends too early.";
         Edge.of("Section 5", sentence, () -> {
             Check.error("?", 1, 0);
             Check.error("gate 2 5;   sweeps;", 1, 12);
@@ -359,7 +363,8 @@ final class TextEdges {
     }
 
     private static void lateCodes() {
-        Edge.of("Section 5 code 5", "the word realm when there are 5 realms, user when there are 6 users, service when there are 6 services", () -> {
+        Edge.of("Section 5 code 5", "the word realm when there are 5 realms, user when there are 6 users, service when there "
+                + "are 6 services", () -> {
             String realms = "gate 2 5;realm a 1 1 even;realm b 1 1 even;realm c 1 1 even;realm d 1 1 even;";
             Check.same("the fifth realm", Check.loaded(realms + "realm e 1 1 even;").realmCount(), 5);
             realms = realms + "realm e 1 1 even;";
@@ -377,9 +382,10 @@ final class TextEdges {
         String sentence = "the semicolon of a login, refer, request, renew or cheese statement that is refused, or of a trust statement "
                 + "if the first realm trusts the second one already";
         Edge.of("Section 5 code 6", sentence, () -> {
-            for (String text : new String[] {"login u 8 ;|10", "login u 6 renewable;|19", "login u 7;refer 0 b;|19", "login u 7;pass 10;request 0 s;|29",
-                "login u 7;renew 0;|17", "login u 7 renewable;renew 0;|27", "login u 7;cheese 0;|18", "login u 7;request 0 s;cheese 1;cheese 1;|39",
-                "trust a b;trust a b;|19", "trust a b;trust b a;trust b a;|29"}) {
+            for (String text : new String[] {"login u 8 ;|10", "login u 6 renewable;|19", "login u 7;refer 0 b;|19",
+                "login u 7;pass 10;request 0 s;|29", "login u 7;renew 0;|17", "login u 7 renewable;renew 0;|27",
+                "login u 7;cheese 0;|18", "login u 7;request 0 s;cheese 1;cheese 1;|39", "trust a b;trust a b;|19",
+                "trust a b;trust b a;trust b a;|29"}) {
                 rest(text, 6);
             }
             Check.same("drop is not refused", Check.loaded(HEAD + "login u 7;pass 10;drop 0;").ticketCount(), 0);

@@ -3,7 +3,8 @@ import java.util.Map;
 
 /** The promises 23 to 35: how many tickets there are, and what is told of one. */
 final class TicketEdges {
-    private static final String HEAD = "gate 9 5;realm a 10 20 even;realm b 999 9999 even;trust a b;trust b a;user u a 7 even;user v b 7 even;"
+    private static final String HEAD = "gate 9 5;realm a 10 20 even;realm b 999 9999 even;trust a b;trust b a;user u a 7 even;"
+            + "user v b 7 even;"
             + "service s a 2;service t b 99;";
 
     private TicketEdges() {

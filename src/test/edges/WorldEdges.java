@@ -2,8 +2,10 @@ import java.util.function.Supplier;
 
 /** The promises 7 to 11 and 13 to 22: time, seed, realms, users and services. */
 final class WorldEdges {
-    private static final String FIVE = "gate 9 5;realm a 1 0 slow 9;realm b 999 0 fast 9;realm c 2 0 even;realm d 3 0 even;realm e 4 0 even;";
-    private static final String FULL = FIVE + "user f a 1 even;user g b 1 fast 9;user h c 1 slow 9;user i d 1 even;user j e 1 even;user k e 1 even;"
+    private static final String FIVE = "gate 9 5;realm a 1 0 slow 9;realm b 999 0 fast 9;realm c 2 0 even;realm d 3 0 even;"
+            + "realm e 4 0 even;";
+    private static final String FULL = FIVE + "user f a 1 even;user g b 1 fast 9;user h c 1 slow 9;user i d 1 even;"
+            + "user j e 1 even;user k e 1 even;"
             + "service l a 0;service m b 99;service n c 1;service o d 1;service p e 1;service q d 1;";
 
     private WorldEdges() {
@@ -158,7 +160,8 @@ final class WorldEdges {
     }
 
     private static void nextRealm() {
-        String sentence = "Returns the first realm to which a way with the fewest referrals leads, the smallest number if there are several; "
+        String sentence = "Returns the first realm to which a way with the fewest referrals leads, the smallest number if there "
+                + "are several; "
                 + "NONE if both are the same or if there is no way.";
         Edge.of("Promise 17", sentence, () -> {
             Gate several = Check.loaded(FIVE + "trust a d;trust a c;trust a b;trust b e;trust c e;trust d e;");
@@ -233,7 +236,8 @@ final class WorldEdges {
             Check.same("the last realm", full().realmOfService(4), 4);
             Check.same("of the last service", full().realmOfService(5), 3);
         });
-        Edge.of("Promise 21", "Throws `IndexOutOfBoundsException` if the service does not exist", () -> userOrServiceExists(Gate::realmOfService));
+        Edge.of("Promise 21", "Throws `IndexOutOfBoundsException` if the service does not exist",
+            () -> userOrServiceExists(Gate::realmOfService));
         Edge.of("Promise 22", "Returns the number of cheeses of the service.", () -> {
             Check.same("the least", full().cheesesLeft(0), 0);
             Check.same("the greatest", full().cheesesLeft(1), 99);
@@ -243,6 +247,7 @@ final class WorldEdges {
             gate.undo();
             Check.same("and back", gate.cheesesLeft(0), 2);
         });
-        Edge.of("Promise 22", "Throws `IndexOutOfBoundsException` if the service does not exist", () -> userOrServiceExists(Gate::cheesesLeft));
+        Edge.of("Promise 22", "Throws `IndexOutOfBoundsException` if the service does not exist",
+            () -> userOrServiceExists(Gate::cheesesLeft));
     }
 }
